@@ -11,15 +11,14 @@ public final class TimeMachine {
     private static final int PROGRAMS = 4;
     private static final int BREAKS = 8;
 
-    // What a statement's name is, as bits: a line that texts are made of; a branch that can become eight bytes; one that
-    // begins with two bytes if its register is one of the short ones; a jump that begins with two bytes; and the rest.
+    // What a statement's name is, as bits: a line that texts are made of; a branch that can become eight bytes; one
+    // that begins with two bytes if its register is one of the short ones; a jump that begins with two bytes; la; li.
     private static final int LINE = 1;
     private static final int BRANCH = 2;
     private static final int SHORT_BRANCH = 4;
     private static final int JUMP = 8;
     private static final int LA = 16;
     private static final int LI = 32;
-    private static final int DIRECTIVE = 64;
 
     private final byte[] tape = new byte[TAPE];
     private int taped;
@@ -137,10 +136,9 @@ public final class TimeMachine {
         if (programs[p] == null) {
             throw new IllegalStateException();
         }
-        Events read = timeline.unusedEvents();
-        int answer = read.readLog(tape, useTape());
+        int answer = timeline.spareEvents.readLog(tape, useTape());
         if (answer >= 0) {
-            timeline.startWith(programs, p, read);
+            timeline.startWith(programs, p);
         }
         return answer;
     }
@@ -222,10 +220,10 @@ public final class TimeMachine {
         int here = timeline.now;
         if (it.olds > 0) {
             timeline.moveTo(Math.max(0, here - 1));
-            timeline.remember(it);
+            it.remember(timeline.machine, timeline.now);
             timeline.moveTo(here);
         }
-        return timeline.worth(it);
+        return it.worth(timeline.machine, here);
     }
 
     public int backTo(int k) throws IllegalArgumentException, IllegalStateException {
@@ -263,7 +261,8 @@ public final class TimeMachine {
     }
 
     public int peek(int p, int address) {
-        return isThere(p) && timeline.machine.may(p, address, Machine.ANY) ? timeline.machine.byteAt(p, address) : -1;
+        Machine machine = timeline.machine;
+        return isThere(p) && machine.may(p, address, Machine.ANY) ? machine.byteAt(p, address) : -1;
     }
 
     public int text(int p, int address, int i) {
@@ -443,8 +442,8 @@ public final class TimeMachine {
     }
 
     /**
-     * The names of statements. A form has a letter for each operand: a small one for a register, a capital one for an e,
-     * each saying which bits the operand has and what it may be.
+     * The names of statements. A form has a letter for each operand: a small one for a register, a capital one for an
+     * e, each saying which bits the operand has and what it may be.
      */
     private enum Op {
         ADD("add", "d,a,b", 51, LINE),
@@ -565,25 +564,26 @@ public final class TimeMachine {
         BGTU("bgtu", "b,a,T", 99 | 6 << 12, BRANCH),
         BLEU("bleu", "b,a,T", 99 | 7 << 12, BRANCH),
         LOAD_ADDRESS("la", "d,A", 23, LA),
-        LOAD_NUMBER("li", "d,", 0, LI),
-        D_TEXT(".text", "", 0, DIRECTIVE),
-        D_DATA(".data", "", 1, DIRECTIVE),
-        D_EQU(".equ", "", 2, DIRECTIVE),
-        D_BYTE(".byte", "", 3, DIRECTIVE),
-        D_HALF(".half", "", 4, DIRECTIVE),
-        D_WORD(".word", "", 5, DIRECTIVE),
-        D_ASCII(".ascii", "", 6, DIRECTIVE),
-        D_ASCIZ(".asciz", "", 7, DIRECTIVE),
-        D_SPACE(".space", "", 8, DIRECTIVE),
-        D_ALIGN(".align", "", 9, DIRECTIVE);
+        LOAD_NUMBER("li", "d,A", 0, LI),
+        D_TEXT(".text", "", 0, 0),
+        D_DATA(".data", "", 1, 0),
+        D_EQU(".equ", "", 0, 0),
+        D_BYTE(".byte", "", 1, 0),
+        D_HALF(".half", "", 2, 0),
+        D_WORD(".word", "", 4, 0),
+        D_ASCII(".ascii", "", 0, 0),
+        D_ASCIZ(".asciz", "", 1, 0),
+        D_SPACE(".space", "", 0, 0),
+        D_ALIGN(".align", "", 0, 0);
 
         static final int ATOMIC = 47;
         static final int AQ = 1 << 26;
         static final int RL = 1 << 25;
         private static final Op[] ALL = values();
-        private static final int NAME_WIDTH = 4;
+        // The registers' names from 1 on, so many characters for each.
+        private static final int NAME_WIDTH = 3;
         private static final String NAMES =
-                "zerora  sp  gp  tp  t0  t1  t2  s0  s1  a0  a1  a2  a3  a4  a5  a6  a7  s2  s3  s4  s5  s6  s7  s8  s9  s10 s11 t3  t4  t5  t6  ";
+                "ra sp gp tp t0 t1 t2 s0 s1 a0 a1 a2 a3 a4 a5 a6 a7 s2 s3 s4 s5 s6 s7 s8 s9 s10s11t3 t4 t5 t6 ";
 
         final String word;
         final String form;
@@ -632,16 +632,19 @@ public final class TimeMachine {
 
         /** The register whose name stands there, or -1. */
         static int registerAt(byte[] source, int from, int length) {
-            if (length < 2 || length > NAME_WIDTH || from < 0 || from + length > source.length) {
-                return -1;
-            }
-            if (source[from] == 'x' && length <= 3) {
-                return numbered(source, from + 1, length - 1);
+            if (stands("zero", source, from, length)) {
+                return 0;
             }
             if (stands("fp", source, from, length)) {
                 return 8;
             }
-            for (int r = 0; r < 32; r++) {
+            if (length < 2 || length > NAME_WIDTH || from < 0 || from + length > source.length) {
+                return -1;
+            }
+            if (source[from] == 'x') {
+                return numbered(source, from + 1, length - 1);
+            }
+            for (int r = 1; r < 32; r++) {
                 if (isNamed(r, source, from, length)) {
                     return r;
                 }
@@ -663,7 +666,7 @@ public final class TimeMachine {
 
         private static boolean isNamed(int r, byte[] source, int from, int length) {
             for (int i = 0; i < NAME_WIDTH; i++) {
-                char due = NAMES.charAt(r * NAME_WIDTH + i);
+                char due = NAMES.charAt((r - 1) * NAME_WIDTH + i);
                 if (due != (i < length ? source[from + i] : ' ')) {
                     return false;
                 }
@@ -838,11 +841,11 @@ public final class TimeMachine {
             }
             out.append((all & 3) == 3 ? ".word " : ".half ");
             // The bits are unsigned, and only an int can be appended.
-            int tens = Integer.divideUnsigned(all, 10);
-            if (tens != 0) {
-                out.append(tens);
+            long unsigned = all & 0xffffffffL;
+            if (unsigned > 9) {
+                out.append((int) (unsigned / 10));
             }
-            out.append(Integer.remainderUnsigned(all, 10));
+            out.append((int) (unsigned % 10));
         }
 
         private boolean makes(int all) {
@@ -886,8 +889,11 @@ public final class TimeMachine {
         }
 
         private static void writeRegister(StringBuilder out, int r) {
-            for (int i = 0; i < NAME_WIDTH; i++) {
-                char c = NAMES.charAt((r & 31) * NAME_WIDTH + i);
+            if (r == 0) {
+                out.append("zero");
+            }
+            for (int i = 0; i < NAME_WIDTH && r > 0 && r < 32; i++) {
+                char c = NAMES.charAt((r - 1) * NAME_WIDTH + i);
                 if (c != ' ') {
                     out.append(c);
                 }
@@ -958,9 +964,10 @@ public final class TimeMachine {
         private static final int OPERAND = 0;
         private static final int OPERATOR = 1;
         private static final int HALF_NAME = 2;
-        private static final int HALF_OPEN = 3;
-        private static final int DONE = 4;
-        private static final int WRONG = 5;
+        private static final int HIGH_OPEN = 3;
+        private static final int LOW_OPEN = 4;
+        private static final int DONE = 5;
+        private static final int WRONG = 6;
 
         byte[] source = new byte[0];
         int at;
@@ -974,7 +981,6 @@ public final class TimeMachine {
         private final int[] stack = new int[TAPE + 64];
         private int top;
         private int state;
-        private int half;
         final int[] name = new int[MOST * NAME_ROW];
         private int names;
         private final int[] bucket = new int[256];
@@ -1010,33 +1016,29 @@ public final class TimeMachine {
                 return;
             }
             int c = source[at];
-            if (c == '"') {
+            while (at < stop && isInName(source[at])) {
+                at++;
+            }
+            if (c >= '0' && c <= '9') {
+                readNumber();
+            } else if (at > from) {
+                kind = at - from <= LONGEST_NAME ? NAME : BAD;
+            } else if (c == '"') {
                 readText();
             } else if (c == '\'') {
                 readCharacter();
-            } else if (c >= '0' && c <= '9') {
-                readNumber();
-            } else if (isInName(c)) {
-                passName();
-                kind = at - from <= LONGEST_NAME ? NAME : BAD;
             } else {
                 readSign(c);
             }
         }
 
         private static boolean isInName(int c) {
-            return c >= 'a' && c <= 'z' || c >= 'A' && c <= 'Z' || c >= '0' && c <= '9' || c == '_' || c == '.' || c == '$';
-        }
-
-        private void passName() {
-            while (at < stop && isInName(source[at])) {
-                at++;
-            }
+            return c >= 'a' && c <= 'z' || c >= 'A' && c <= 'Z' || c >= '0' && c <= '9'
+                    || c == '_' || c == '.' || c == '$';
         }
 
         /** All characters of names that stand together must be of the number. */
         private void readNumber() {
-            passName();
             int length = at - from;
             int second = length > 1 ? source[from + 1] : 0;
             if (length == 2 && (second == 'f' || second == 'b')) {
@@ -1051,7 +1053,12 @@ public final class TimeMachine {
             kind = NUMBER;
             for (int i = hex || binary ? from + 2 : from; i < at; i++) {
                 int c = source[i];
-                int digit = c <= '9' ? c - '0' : c >= 'a' && c <= 'f' ? c - 'a' + 10 : c >= 'A' && c <= 'F' ? c - 'A' + 10 : 99;
+                int digit = c - '0';
+                if (c > '9') {
+                    // A capital letter and its small one differ in this bit alone.
+                    int letter = c | 32;
+                    digit = letter >= 'a' && letter <= 'f' ? letter - 'a' + 10 : base;
+                }
                 n = n * base + digit;
                 if (digit < 0 || digit >= base || n > 0xffffffffL) {
                     kind = BAD;
@@ -1136,7 +1143,12 @@ public final class TimeMachine {
             hash = (hash ^ hash >> 8) & 255;
             int id = bucket[hash] - 1;
             for (int left = names; left > 0 && id >= 0; left--) {
-                if (isName(id, begin, length)) {
+                int other = name[id * NAME_ROW + STARTS];
+                boolean same = name[id * NAME_ROW + LENGTH] == length;
+                for (int i = 0; same && i < length; i++) {
+                    same = source[other + i] == source[begin + i];
+                }
+                if (same) {
                     return id;
                 }
                 id = name[id * NAME_ROW + CHAIN] - 1;
@@ -1151,15 +1163,6 @@ public final class TimeMachine {
             name[id * NAME_ROW + CHAIN] = bucket[hash];
             bucket[hash] = id + 1;
             return id;
-        }
-
-        private boolean isName(int id, int begin, int length) {
-            int other = name[id * NAME_ROW + STARTS];
-            boolean same = name[id * NAME_ROW + LENGTH] == length;
-            for (int i = 0; same && i < length; i++) {
-                same = source[other + i] == source[begin + i];
-            }
-            return same;
         }
 
         boolean isDefined(int id) {
@@ -1192,6 +1195,15 @@ public final class TimeMachine {
             return n;
         }
 
+        boolean standsBefore(int n, int statement) {
+            return label[n * LABEL_ROW + STATEMENT] == statement;
+        }
+
+        /** A label's address, by where its section goes on. */
+        void place(int n, int text, int data) {
+            label[n * LABEL_ROW + PLACE] = label[n * LABEL_ROW + SECTION] == 0 ? text : data;
+        }
+
         /** Reads an e from the current token on: where its code begins, or -1 where a token can't be. */
         int sum() {
             int start = codes;
@@ -1218,8 +1230,13 @@ public final class TimeMachine {
             state = OPERATOR;
             if (kind == NUMBER) {
                 emit(LITERAL, number);
+            } else if (kind == NAME && at - from == 1 && source[from] == '.') {
+                fixed = false;
+                emit(HERE, 0);
             } else if (kind == NAME) {
-                takeName();
+                int id = nameAt(from, at - from);
+                fixed = fixed && name[id * NAME_ROW + MEANS] == CONSTANT;
+                emit(NAMED_VALUE, id);
             } else if (kind == NEAR) {
                 takeNear();
             } else if (kind == SIGN && (number == '-' || number == '~' || number == '(')) {
@@ -1228,17 +1245,6 @@ public final class TimeMachine {
             } else {
                 state = isSign('%') ? HALF_NAME : WRONG;
             }
-        }
-
-        private void takeName() {
-            if (at - from == 1 && source[from] == '.') {
-                fixed = false;
-                emit(HERE, 0);
-                return;
-            }
-            int id = nameAt(from, at - from);
-            fixed = fixed && name[id * NAME_ROW + MEANS] == CONSTANT;
-            emit(NAMED_VALUE, id);
         }
 
         private void takeNear() {
@@ -1254,15 +1260,14 @@ public final class TimeMachine {
 
         /** %hi and %lo are two tokens, and a ( must be behind them. */
         private void takeHalf() {
-            if (state == HALF_OPEN) {
-                push(half);
+            if (state != HALF_NAME) {
+                push(state == HIGH_OPEN ? HI : LO);
                 state = isSign('(') ? OPERAND : WRONG;
-                return;
+            } else if (kind == NAME && Op.stands("hi", source, from, at - from)) {
+                state = HIGH_OPEN;
+            } else {
+                state = kind == NAME && Op.stands("lo", source, from, at - from) ? LOW_OPEN : WRONG;
             }
-            boolean high = kind == NAME && Op.stands("hi", source, from, at - from);
-            boolean low = kind == NAME && Op.stands("lo", source, from, at - from);
-            half = high ? HI : LO;
-            state = high || low ? HALF_OPEN : WRONG;
         }
 
         private void takeOperator() {
@@ -1596,44 +1601,41 @@ public final class TimeMachine {
         }
 
         private void readStatement(Op op) {
-            if ((op.sort & DIRECTIVE) != 0) {
-                readDirective(op.bits);
-            } else if (op == Op.JAL && !isRegister()) {
-                readInstruction(Op.CALL);
-            } else if (op == Op.JALR) {
-                readJump();
-            } else {
-                readInstruction(op);
+            switch (op) {
+                case D_TEXT:
+                case D_DATA:
+                    section = op.bits;
+                    break;
+                case D_EQU:
+                    readConstant();
+                    break;
+                case D_BYTE:
+                case D_HALF:
+                case D_WORD:
+                    readList(op.bits);
+                    break;
+                case D_ASCII:
+                case D_ASCIZ:
+                    readTexts(op.bits == 1);
+                    break;
+                case D_SPACE:
+                    add(SPACE, fixed(reader.sum(), 0, LARGEST_SPACE), 0, -1);
+                    break;
+                case D_ALIGN:
+                    add(ALIGN, 0, 1 << fixed(reader.sum(), 0, LARGEST_ALIGN), -1);
+                    break;
+                case JAL:
+                    readInstruction(isRegister() ? op : Op.CALL);
+                    break;
+                case JALR:
+                    readJump();
+                    break;
+                default:
+                    readInstruction(op);
+                    break;
             }
             if (fault == 0 && reader.kind != Reader.END) {
                 blame(1);
-            }
-        }
-
-        private void readDirective(int which) {
-            switch (which) {
-                case 0:
-                case 1:
-                    section = which;
-                    break;
-                case 2:
-                    readConstant();
-                    break;
-                case 3:
-                case 4:
-                case 5:
-                    readList(1 << which - 3);
-                    break;
-                case 6:
-                case 7:
-                    readTexts(which == 7);
-                    break;
-                case 8:
-                    add(SPACE, fixedSum(0, LARGEST_SPACE), 0, -1);
-                    break;
-                default:
-                    add(ALIGN, 0, 1 << fixedSum(0, LARGEST_ALIGN), -1);
-                    break;
             }
         }
 
@@ -1650,7 +1652,8 @@ public final class TimeMachine {
             }
             reader.next();
             expect(',');
-            int worth = fixedSum(Integer.MIN_VALUE, Integer.MAX_VALUE);
+            int start = fault == 0 ? reader.sum() : 0;
+            int worth = fixed(start, Integer.MIN_VALUE, Integer.MAX_VALUE);
             if (fault == 0) {
                 reader.define(id, Reader.CONSTANT, worth);
                 constants++;
@@ -1708,12 +1711,11 @@ public final class TimeMachine {
             }
         }
 
-        /** An e that must be fixed, and from least to most. */
-        private int fixedSum(int least, int most) {
+        /** The value of the e that was read just now, which must be fixed, and from least to most. */
+        private int fixed(int start, int least, int most) {
             if (fault != 0) {
                 return 0;
             }
-            int start = reader.sum();
             if (start < 0 || !reader.fixed) {
                 blame(start < 0 ? 1 : 5);
                 return 0;
@@ -1759,7 +1761,7 @@ public final class TimeMachine {
                 }
             }
             if ((op.sort & LI) != 0) {
-                addNumber(bits >> 7 & 31, fixedSum(Integer.MIN_VALUE, Integer.MAX_VALUE));
+                addNumber(bits >> 7 & 31, fixed(code, Integer.MIN_VALUE, Integer.MAX_VALUE));
             } else if (fault == 0) {
                 addInstruction(op, bits, code, letter);
             }
@@ -1793,7 +1795,8 @@ public final class TimeMachine {
                 blame(1);
                 return 0;
             }
-            int r = reader.kind == Reader.NAME ? Op.registerAt(reader.source, reader.from, reader.at - reader.from) : -1;
+            int length = reader.at - reader.from;
+            int r = reader.kind == Reader.NAME ? Op.registerAt(reader.source, reader.from, length) : -1;
             if (r < 0 || !Op.fits(letter, r)) {
                 blame(3);
                 return 0;
@@ -1862,9 +1865,8 @@ public final class TimeMachine {
             int data = 0;
             int labelled = 0;
             for (int i = 0; i <= statements; i++) {
-                while (labelled < reader.labels && reader.label[labelled * Reader.LABEL_ROW + Reader.STATEMENT] == i) {
-                    int l = labelled * Reader.LABEL_ROW;
-                    reader.label[l + Reader.PLACE] = reader.label[l + Reader.SECTION] == 0 ? text : data;
+                while (labelled < reader.labels && reader.standsBefore(labelled, i)) {
+                    reader.place(labelled, text, data);
                     labelled++;
                 }
                 if (i < statements) {
@@ -2132,6 +2134,7 @@ public final class TimeMachine {
         private final int[] random = new int[RANDOMS];
         int randoms;
         final Things things = new Things();
+        int waiting;
         int current;
         int last;
         int ticked;
@@ -2151,6 +2154,7 @@ public final class TimeMachine {
                 self[p * ROW + PARENT] = NOTHING;
             }
             randoms = 0;
+            waiting = 0;
             current = NOTHING;
             last = PROCESSES - 1;
             ticked = NOTHING;
@@ -2180,6 +2184,7 @@ public final class TimeMachine {
             System.arraycopy(it.random, 0, random, 0, random.length);
             randoms = it.randoms;
             things.become(it.things);
+            waiting = it.waiting;
             current = it.current;
             last = it.last;
             ticked = it.ticked;
@@ -2200,26 +2205,25 @@ public final class TimeMachine {
             return n <= 0 || may(p, address, right) && may(p, address + n - 1, right);
         }
 
-        private int index(int p, int address) {
-            return (page[p << 6 | address >>> 10 & 63] >> 3) << 8 | address >>> 2 & 255;
-        }
-
         int wordAt(int p, int address) {
-            return word[index(p, address)];
+            int frame = page[p << 6 | address >>> 10 & 63] >> 3;
+            return word[frame << 8 | address >>> 2 & 255];
         }
 
         int halfAt(int p, int address) {
-            return word[index(p, address)] >>> 8 * (address & 2) & 0xffff;
+            int frame = page[p << 6 | address >>> 10 & 63] >> 3;
+            return word[frame << 8 | address >>> 2 & 255] >>> 8 * (address & 2) & 0xffff;
         }
 
         int byteAt(int p, int address) {
-            return word[index(p, address)] >>> 8 * (address & 3) & 255;
+            int frame = page[p << 6 | address >>> 10 & 63] >> 3;
+            return word[frame << 8 | address >>> 2 & 255] >>> 8 * (address & 3) & 255;
         }
 
         /** The bytes of a mask's bits, in the word of an address, become those of v. */
         void put(int p, int address, int mask, int v) {
             int shift = 8 * (address & 3);
-            int i = index(p, address);
+            int i = page[p << 6 | address >>> 10 & 63] >> 3 << 8 | address >>> 2 & 255;
             word[i] = word[i] & ~(mask << shift) | (v & mask) << shift;
         }
 
@@ -2245,35 +2249,30 @@ public final class TimeMachine {
             if (users[frame] <= 1) {
                 return true;
             }
-            int free = freeFrame();
-            if (free < 0) {
-                return false;
-            }
-            System.arraycopy(word, frame * PAGE_WORDS, word, free * PAGE_WORDS, PAGE_WORDS);
-            users[frame]--;
-            users[free] = 1;
-            framesUsed++;
-            page[k] = free << 3 | page[k] & ANY;
-            return true;
-        }
-
-        private int freeFrame() {
             for (int f = 0; f < FRAMES; f++) {
                 if (users[f] == 0) {
-                    return f;
+                    System.arraycopy(word, frame * PAGE_WORDS, word, f * PAGE_WORDS, PAGE_WORDS);
+                    users[frame]--;
+                    users[f] = 1;
+                    framesUsed++;
+                    page[k] = f << 3 | page[k] & ANY;
+                    return true;
                 }
             }
-            return -1;
+            return false;
         }
 
-        /** A new page with 0, where there was none. */
-        void addPage(int p, int k, int rights) {
-            int free = freeFrame();
-            if (free >= 0 && k >= 0 && k < PAGES) {
-                Arrays.fill(word, free * PAGE_WORDS, (free + 1) * PAGE_WORDS, 0);
-                users[free] = 1;
-                framesUsed++;
-                page[p << 6 | k] = free << 3 | rights;
+        /** New pages with 0, from one on and so many, where there were none. */
+        void addPages(int p, int from, int n, int rights) {
+            int k = from;
+            for (int f = 0; f < FRAMES && k < from + n && k < PAGES; f++) {
+                if (users[f] == 0) {
+                    Arrays.fill(word, f * PAGE_WORDS, (f + 1) * PAGE_WORDS, 0);
+                    users[f] = 1;
+                    framesUsed++;
+                    page[p << 6 | k] = f << 3 | rights;
+                    k++;
+                }
             }
         }
 
@@ -2310,15 +2309,9 @@ public final class TimeMachine {
 
         /** The space, registers and place of a program, for a process that has no pages; without handlers. */
         void load(int p, Program program) {
-            for (int k = 0; k < program.textPages(); k++) {
-                addPage(p, k, READ | RUN);
-            }
-            for (int k = 0; k < program.dataPages(); k++) {
-                addPage(p, program.dataStart / Program.PAGE + k, READ | WRITE);
-            }
-            for (int k = 0; k < STACK_PAGES; k++) {
-                addPage(p, STACK_PAGE + k, READ | WRITE);
-            }
+            addPages(p, 0, program.textPages(), READ | RUN);
+            addPages(p, program.dataStart / Program.PAGE, program.dataPages(), READ | WRITE);
+            addPages(p, STACK_PAGE, STACK_PAGES, READ | WRITE);
             for (int a = 0; a < program.size; a++) {
                 if (program.image[a] != 0) {
                     put(p, a, 255, program.image[a]);
@@ -2385,10 +2378,10 @@ public final class TimeMachine {
             }
         }
 
-        int withStatus(int wanted) {
+        private int processesThere() {
             int n = 0;
             for (int p = 0; p < PROCESSES; p++) {
-                if (status(p) == wanted) {
+                if (status(p) != ABSENT) {
                     n++;
                 }
             }
@@ -2398,7 +2391,7 @@ public final class TimeMachine {
         /** The least child that has ENDED, or -1; with any, the least child of all. */
         int leastChild(int p, boolean any) {
             for (int q = 0; q < PROCESSES; q++) {
-                int status = status(q);
+                int status = self[q * ROW + STATUS];
                 if (status != ABSENT && self[q * ROW + PARENT] == p && (any || status == ENDED)) {
                     return q;
                 }
@@ -2412,7 +2405,9 @@ public final class TimeMachine {
         }
 
         void finish(int p, int code) {
-            things.closeAll(p);
+            for (int d = 0; d < Things.LINKS; d++) {
+                things.close(p, d);
+            }
             dropPages(p);
             for (int q = 0; q < PROCESSES; q++) {
                 if (status(q) != ABSENT && self[q * ROW + PARENT] == p) {
@@ -2432,6 +2427,7 @@ public final class TimeMachine {
             }
         }
 
+        /** All of a child but its descriptors. */
         void fork(int p, int child) {
             makeAbsent(child);
             System.arraycopy(reg, p * REGISTERS, reg, child * REGISTERS, REGISTERS);
@@ -2443,7 +2439,6 @@ public final class TimeMachine {
                     users[page[p << 6 | k] >> 3]++;
                 }
             }
-            things.share(p, child);
             self[child * ROW + STATUS] = READY;
             self[child * ROW + PARENT] = p;
             self[child * ROW + WITHIN] = self[p * ROW + WITHIN];
@@ -2503,7 +2498,7 @@ public final class TimeMachine {
                 case 10:
                     return framesUsed;
                 case 11:
-                    return PROCESSES - withStatus(ABSENT);
+                    return processesThere();
                 case 12:
                     return things.namedFiles();
                 case 13:
@@ -2539,12 +2534,14 @@ public final class TimeMachine {
         static final int POSITION = 3;
         static final int RIGHTS = 4;
         private static final int OPENING_ROW = 5;
-        // Of a pipe and a file: how many bytes, how many openings; where a pipe's oldest byte is, whether a file has a name.
+        // Of a pipe: how many bytes, how many openings of the kinds READS and WRITES, and where the oldest byte is.
         private static final int LENGTH = 0;
+        private static final int OLDEST = 3;
+        private static final int PIPE_ROW = 4;
+        // Of a file: how many bytes, how many openings, and whether it has a name.
         private static final int HOLDERS = 1;
-        private static final int OLDEST = 2;
         private static final int NAMED = 2;
-        private static final int THING_ROW = 3;
+        private static final int FILE_ROW = 3;
 
         // Rights of openings.
         static final int READ = 1;
@@ -2554,9 +2551,9 @@ public final class TimeMachine {
         // A descriptor's opening and 1; 0 for none.
         private final int[] link = new int[Machine.PROCESSES * LINKS];
         final int[] opening = new int[OPENINGS * OPENING_ROW];
-        private final int[] pipe = new int[PIPES * THING_ROW];
+        private final int[] pipe = new int[PIPES * PIPE_ROW];
         private final byte[] piped = new byte[PIPES * ROOM];
-        private final int[] file = new int[FILES * THING_ROW];
+        private final int[] file = new int[FILES * FILE_ROW];
         private final byte[] filed = new byte[FILES * ROOM];
         private final byte[] names = new byte[FILES * NAME];
         private final byte[] typed = new byte[ROOM];
@@ -2639,9 +2636,9 @@ public final class TimeMachine {
 
         private void hold(int kind, int thing, int more) {
             if (kind == FILE) {
-                file[thing * THING_ROW + HOLDERS] += more;
+                file[thing * FILE_ROW + HOLDERS] += more;
             } else if (kind != CONSOLE) {
-                pipe[thing * THING_ROW + HOLDERS] += more;
+                pipe[thing * PIPE_ROW + kind] += more;
             }
         }
 
@@ -2662,12 +2659,6 @@ public final class TimeMachine {
             }
         }
 
-        void closeAll(int p) {
-            for (int d = 0; d < LINKS; d++) {
-                close(p, d);
-            }
-        }
-
         /** A child has its parent's descriptors. */
         void share(int p, int child) {
             for (int d = 0; d < LINKS; d++) {
@@ -2682,7 +2673,7 @@ public final class TimeMachine {
 
         int freePipe() {
             for (int k = 0; k < PIPES; k++) {
-                if (pipe[k * THING_ROW + HOLDERS] == 0) {
+                if (pipe[k * PIPE_ROW + READS] + pipe[k * PIPE_ROW + WRITES] == 0) {
                     return k;
                 }
             }
@@ -2690,24 +2681,19 @@ public final class TimeMachine {
         }
 
         void emptyPipe(int k) {
-            pipe[k * THING_ROW + LENGTH] = 0;
-            pipe[k * THING_ROW + OLDEST] = 0;
+            pipe[k * PIPE_ROW + LENGTH] = 0;
+            pipe[k * PIPE_ROW + OLDEST] = 0;
         }
 
-        /** Whether the pipe of an opening has an end of a kind. */
-        boolean hasEnd(int o, int kind) {
-            for (int k = 0; k < OPENINGS; k++) {
-                if (of(k, KIND) == kind && of(k, THING) == of(o, THING)) {
-                    return true;
-                }
-            }
-            return false;
+        /** Whether no opening reads the pipe that an opening writes into. */
+        boolean isBroken(int o) {
+            return of(o, KIND) == WRITES && pipe[of(o, THING) * PIPE_ROW + READS] == 0;
         }
 
         /** The file with a name (of 16 bytes, 0 behind it), or -1. */
         int fileNamed(byte[] name) {
             for (int k = 0; k < FILES; k++) {
-                boolean same = file[k * THING_ROW + NAMED] != 0;
+                boolean same = file[k * FILE_ROW + NAMED] != 0;
                 for (int i = 0; same && i < NAME; i++) {
                     same = names[k * NAME + i] == name[i];
                 }
@@ -2720,7 +2706,7 @@ public final class TimeMachine {
 
         int freeFile() {
             for (int k = 0; k < FILES; k++) {
-                if (file[k * THING_ROW + NAMED] == 0 && file[k * THING_ROW + HOLDERS] == 0) {
+                if (file[k * FILE_ROW + NAMED] == 0 && file[k * FILE_ROW + HOLDERS] == 0) {
                     return k;
                 }
             }
@@ -2728,44 +2714,45 @@ public final class TimeMachine {
         }
 
         void giveName(int k, byte[] name) {
-            file[k * THING_ROW + NAMED] = 1;
+            file[k * FILE_ROW + NAMED] = 1;
             System.arraycopy(name, 0, names, k * NAME, NAME);
         }
 
         void loseName(int k) {
-            file[k * THING_ROW + NAMED] = 0;
+            file[k * FILE_ROW + NAMED] = 0;
         }
 
         void emptyFile(int k) {
-            file[k * THING_ROW + LENGTH] = 0;
+            file[k * FILE_ROW + LENGTH] = 0;
         }
 
         int namedFiles() {
             int n = 0;
             for (int k = 0; k < FILES; k++) {
-                n += file[k * THING_ROW + NAMED];
+                n += file[k * FILE_ROW + NAMED];
             }
             return n;
         }
 
         /** How many bytes there are in a pipe or file, or typed. */
         int amount(int o) {
-            int kind = of(o, KIND);
+            int kind = opening[o * OPENING_ROW + KIND];
+            int thing = opening[o * OPENING_ROW + THING];
             if (kind == CONSOLE) {
                 return typedBytes;
             }
-            return kind == FILE ? file[of(o, THING) * THING_ROW + LENGTH] : pipe[of(o, THING) * THING_ROW + LENGTH];
+            return kind == FILE ? file[thing * FILE_ROW + LENGTH] : pipe[thing * PIPE_ROW + LENGTH];
         }
 
         int byteOf(int o, int i) {
-            int thing = of(o, THING);
-            switch (of(o, KIND)) {
+            int thing = opening[o * OPENING_ROW + THING];
+            switch (opening[o * OPENING_ROW + KIND]) {
                 case CONSOLE:
                     return typed[i & ROOM - 1] & 255;
                 case FILE:
                     return filed[thing * ROOM + (i & ROOM - 1)] & 255;
                 default:
-                    return piped[thing * ROOM + (pipe[thing * THING_ROW + OLDEST] + i & ROOM - 1)] & 255;
+                    return piped[thing * ROOM + (pipe[thing * PIPE_ROW + OLDEST] + i & ROOM - 1)] & 255;
             }
         }
 
@@ -2783,14 +2770,23 @@ public final class TimeMachine {
         // ---- reading and writing
 
         boolean readWaits(int o, int n) {
-            if (n == 0 || o < 0 || amount(o) > 0) {
+            if (n == 0 || o < 0) {
                 return false;
             }
-            return of(o, KIND) == CONSOLE || of(o, KIND) == READS && hasEnd(o, WRITES);
+            int kind = opening[o * OPENING_ROW + KIND];
+            int k = opening[o * OPENING_ROW + THING] * PIPE_ROW;
+            if (kind == CONSOLE) {
+                return typedBytes == 0;
+            }
+            return kind == READS && pipe[k + LENGTH] == 0 && pipe[k + WRITES] > 0;
         }
 
         boolean writeWaits(int o, int n) {
-            return n > 0 && o >= 0 && of(o, KIND) == WRITES && ROOM - amount(o) < n && hasEnd(o, READS);
+            if (n == 0 || o < 0 || opening[o * OPENING_ROW + KIND] != WRITES) {
+                return false;
+            }
+            int k = opening[o * OPENING_ROW + THING] * PIPE_ROW;
+            return ROOM - pipe[k + LENGTH] < n && pipe[k + READS] > 0;
         }
 
         /** How many bytes reading n would give. */
@@ -2829,8 +2825,8 @@ public final class TimeMachine {
                     typedBytes -= gone;
                     break;
                 default:
-                    pipe[thing * THING_ROW + LENGTH] -= given;
-                    pipe[thing * THING_ROW + OLDEST] = pipe[thing * THING_ROW + OLDEST] + given & ROOM - 1;
+                    pipe[thing * PIPE_ROW + LENGTH] -= given;
+                    pipe[thing * PIPE_ROW + OLDEST] = pipe[thing * PIPE_ROW + OLDEST] + given & ROOM - 1;
                     break;
             }
         }
@@ -2840,15 +2836,14 @@ public final class TimeMachine {
             return (of(o, RIGHTS) & APPEND) != 0 ? amount(o) : of(o, POSITION);
         }
 
-        /** Makes room for n bytes in a file that is open: it is as long as they need, with 0 up to them. */
-        void stretch(int o, int n) {
+        /** Makes room for n bytes at a place of a file that is open: it is as long as they need, with 0 up to them. */
+        void stretch(int o, int place, int n) {
             int k = of(o, THING);
-            int place = writingPlace(o);
-            int length = file[k * THING_ROW + LENGTH];
+            int length = file[k * FILE_ROW + LENGTH];
             for (int i = length; i < place && i < ROOM; i++) {
                 filed[k * ROOM + i] = 0;
             }
-            file[k * THING_ROW + LENGTH] = Math.max(length, place + n);
+            file[k * FILE_ROW + LENGTH] = Math.max(length, place + n);
             opening[o * OPENING_ROW + POSITION] = place + n;
         }
 
@@ -2858,9 +2853,9 @@ public final class TimeMachine {
 
         void putPiped(int o, int v) {
             int k = of(o, THING);
-            int length = pipe[k * THING_ROW + LENGTH];
-            piped[k * ROOM + (pipe[k * THING_ROW + OLDEST] + length & ROOM - 1)] = (byte) v;
-            pipe[k * THING_ROW + LENGTH] = length + 1;
+            int length = pipe[k * PIPE_ROW + LENGTH];
+            piped[k * ROOM + (pipe[k * PIPE_ROW + OLDEST] + length & ROOM - 1)] = (byte) v;
+            pipe[k * PIPE_ROW + LENGTH] = length + 1;
         }
 
         void show(int v) {
@@ -3155,7 +3150,8 @@ public final class TimeMachine {
             if ((address & 3) != 0) {
                 return MISALIGNED;
             }
-            if (!reserves && !machine.may(process, address, Machine.WRITE) || !machine.may(process, address, Machine.READ)) {
+            if (!reserves && !machine.may(process, address, Machine.WRITE)
+                    || !machine.may(process, address, Machine.READ)) {
                 return NO_MEMORY;
             }
             if (reserves) {
@@ -3262,6 +3258,14 @@ public final class TimeMachine {
             return offset >> 5 << 25 | b << 20 | a << 15 | 2 << 12 | (offset & 31) << 7 | 0x23;
         }
 
+        private static int jumping(int offset) {
+            return offset & 1 << 31 | (offset & 0x7fe) << 20 | (offset & 0x800) << 9 | offset & 0xff000;
+        }
+
+        private static int branching(int offset) {
+            return offset & 1 << 31 | (offset & 0x7e0) << 20 | (offset & 0x1e) << 7 | (offset & 0x800) >> 4;
+        }
+
         private static int expandedFirst(int half) {
             int d = 8 + (half >> 2 & 7);
             int a = 8 + (half >> 7 & 7);
@@ -3293,7 +3297,7 @@ public final class TimeMachine {
                 case 5:
                     int offset = half << 19 >> 31 << 11 | half >> 7 & 0x10 | half >> 1 & 0x300 | half << 2 & 0x400
                             | half >> 1 & 0x40 | half << 1 & 0x80 | half >> 2 & 0xe | half << 3 & 0x20;
-                    return 0x6f | (half >> 13 == 1 ? 1 << 7 : 0) | Op.placed('J', offset);
+                    return 0x6f | (half >> 13 == 1 ? 1 << 7 : 0) | jumping(offset);
                 case 2:
                     return number(n, 0, 0, d);
                 case 3:
@@ -3304,8 +3308,9 @@ public final class TimeMachine {
                             | half << 3 & 0x20;
                     return more == 0 ? 0 : number(more, 2, 0, 2);
                 default:
-                    int to = half << 19 >> 31 << 8 | half >> 7 & 0x18 | half << 1 & 0xc0 | half >> 2 & 6 | half << 3 & 0x20;
-                    return 0x63 | half >> 13 << 12 & 1 << 12 | 8 + (half >> 7 & 7) << 15 | Op.placed('T', to);
+                    int to = half << 19 >> 31 << 8 | half >> 7 & 0x18 | half << 1 & 0xc0 | half >> 2 & 6
+                            | half << 3 & 0x20;
+                    return 0x63 | half >> 13 << 12 & 1 << 12 | 8 + (half >> 7 & 7) << 15 | branching(to);
             }
         }
 
@@ -3422,22 +3427,23 @@ public final class TimeMachine {
             int signal = machine.takeable(p);
             if (signal != 0) {
                 self[p * Machine.ROW + Machine.PENDING] &= ~(1 << signal);
-                take(p, signal);
+                take(p, signal, false);
             } else {
                 int trap = hart.step(p);
                 if (trap == Hart.CALL) {
                     trap = answer(p, answerOf(p));
                 }
                 if (trap != 0) {
-                    fail(p, trap);
+                    take(p, trap, self[p * Machine.ROW + Machine.WITHIN] != 0);
                 }
             }
             settle();
         }
 
-        private void take(int p, int signal) {
+        /** The process ends without a handler, or if it must. */
+        private void take(int p, int signal, boolean ends) {
             int handler = machine.handler[p * Machine.SIGNALS + signal];
-            if (handler == 0) {
+            if (handler == 0 || ends) {
                 machine.finish(p, FAILED + signal);
                 return;
             }
@@ -3447,20 +3453,12 @@ public final class TimeMachine {
             reg[p * Machine.REGISTERS + Machine.PLACE] = handler;
         }
 
-        private void fail(int p, int signal) {
-            if (self[p * Machine.ROW + Machine.WITHIN] != 0) {
-                machine.finish(p, FAILED + signal);
-            } else {
-                take(p, signal);
-            }
-        }
-
         /** Those that need not wait any more are READY, and there is a current one if one is READY. */
         private void settle() {
-            for (int p = 0; p < Machine.PROCESSES; p++) {
-                if (self[p * Machine.ROW + Machine.STATUS] == Machine.WAITING
-                        && (machine.takeable(p) != 0 || !mustWait(p))) {
+            for (int p = 0; p < Machine.PROCESSES && machine.waiting > 0; p++) {
+                if (machine.status(p) == Machine.WAITING && (machine.takeable(p) != 0 || !mustWait(p))) {
                     self[p * Machine.ROW + Machine.STATUS] = Machine.READY;
+                    machine.waiting--;
                 }
             }
             machine.chooseCurrent();
@@ -3500,7 +3498,8 @@ public final class TimeMachine {
                     taken = things.type(a, b);
                     break;
                 case Events.SIGNAL:
-                    taken = b < Machine.SIGNALS && (machine.status(p) == Machine.READY || machine.status(p) == Machine.WAITING);
+                    int status = machine.status(p);
+                    taken = b < Machine.SIGNALS && (status == Machine.READY || status == Machine.WAITING);
                     if (taken) {
                         self[p * Machine.ROW + Machine.PENDING] |= 1 << b;
                     }
@@ -3530,6 +3529,7 @@ public final class TimeMachine {
             }
             if (it == WAITS) {
                 self[p * Machine.ROW + Machine.STATUS] = Machine.WAITING;
+                machine.waiting++;
             } else if (it != SILENT) {
                 reg[p * Machine.REGISTERS + 10] = (int) it;
                 reg[p * Machine.REGISTERS + Machine.PLACE] += 4;
@@ -3598,6 +3598,7 @@ public final class TimeMachine {
             for (int child = 0; child < Machine.PROCESSES; child++) {
                 if (machine.status(child) == Machine.ABSENT) {
                     machine.fork(p, child);
+                    things.share(p, child);
                     return child;
                 }
             }
@@ -3699,7 +3700,7 @@ public final class TimeMachine {
                 return BAD;
             }
             int kind = things.of(o, Things.KIND);
-            if (kind == Things.WRITES && !things.hasEnd(o, Things.READS)) {
+            if (things.isBroken(o)) {
                 return BROKEN;
             }
             int place = kind == Things.FILE ? things.writingPlace(o) : 0;
@@ -3710,7 +3711,7 @@ public final class TimeMachine {
                 return WAITS;
             }
             if (kind == Things.FILE && n > 0) {
-                things.stretch(o, n);
+                things.stretch(o, place, n);
             }
             for (int i = 0; i < n; i++) {
                 int v = machine.byteAt(p, address + i);
@@ -3870,9 +3871,7 @@ public final class TimeMachine {
             if (has - had > machine.framesFree()) {
                 return FULL;
             }
-            for (int k = had; k < has; k++) {
-                machine.addPage(p, k, Machine.READ | Machine.WRITE);
-            }
+            machine.addPages(p, had, has - had, Machine.READ | Machine.WRITE);
             for (int k = has; k < had; k++) {
                 machine.dropPage(p, k);
             }
@@ -3937,10 +3936,10 @@ public final class TimeMachine {
         private static final int LARGEST_SIGNAL = 31;
         private static final int MOST_TYPED = 8;
 
-        private final int[] kind = new int[MOST];
+        final int[] kind = new int[MOST];
         private final long[] at = new long[MOST];
-        private final long[] a = new long[MOST];
-        private final int[] b = new int[MOST];
+        final long[] a = new long[MOST];
+        final int[] b = new int[MOST];
         // The first of these are the recording; those behind, up to total, are scheduled.
         int recorded;
         int total;
@@ -4001,10 +4000,6 @@ public final class TimeMachine {
             return i >= 0 && i < total && at[i] == count;
         }
 
-        boolean comesTo(int i, Kernel kernel) {
-            return i >= 0 && i < total && kernel.come(kind[i], a[i], b[i]);
-        }
-
         int recordedBefore(int count) {
             int n = 0;
             while (n < recorded && at[n] < count) {
@@ -4060,7 +4055,6 @@ public final class TimeMachine {
                     i += n;
                 }
             }
-            row = new byte[0];
             return place;
         }
 
@@ -4175,7 +4169,6 @@ public final class TimeMachine {
             if (place < stop) {
                 blame(7, place);
             }
-            row = new byte[0];
             return fault == 0 ? total : -1 - (fault + 8 * faultPlace);
         }
 
@@ -4328,11 +4321,13 @@ public final class TimeMachine {
         private static final int FIRST_SPACING = 256;
 
         final Program[] programs = new Program[PROGRAMS];
-        private Events spareEvents;
         Events events = new Events();
-        Machine machine;
-        private Kernel kernel;
-        private int[] writes;
+        // A log is read into these; they are those of the recording then.
+        Events spareEvents = new Events();
+        final Machine machine = new Machine();
+        private final Kernel kernel = new Kernel(machine, programs);
+        // What the tick from each count wrote.
+        private final int[] writes = new int[LAST];
         boolean booted;
         // A copy is the machine as a tick left it, before the events of its count.
         private final Machine[] copy = new Machine[COPIES];
@@ -4349,33 +4344,24 @@ public final class TimeMachine {
 
         // ---- starting
 
-        Events unusedEvents() {
-            if (spareEvents == null) {
-                spareEvents = new Events();
-            }
-            return spareEvents;
-        }
-
         void startWithout(Program[] from, int p) {
             events.clear();
             start(from, p);
         }
 
-        /** With events that are scheduled; they take the place of those that were. */
-        void startWith(Program[] from, int p, Events scheduled) {
-            spareEvents = events;
-            events = scheduled;
+        /** With the spare events, which are scheduled. */
+        void startWith(Program[] from, int p) {
+            Events old = events;
+            events = spareEvents;
+            spareEvents = old;
             start(from, p);
             takeScheduled();
         }
 
         private void start(Program[] from, int p) {
-            if (machine == null) {
-                machine = new Machine();
-                kernel = new Kernel(machine, programs);
-                writes = new int[LAST];
+            for (int i = 0; i < programs.length; i++) {
+                programs[i] = from[i];
             }
-            System.arraycopy(from, 0, programs, 0, programs.length);
             machine.start(programs[p]);
             booted = true;
             now = 0;
@@ -4436,14 +4422,15 @@ public final class TimeMachine {
 
         private void takeRecorded() {
             while (came < events.recorded && events.isAt(came, now)) {
-                events.comesTo(came, kernel);
+                kernel.come(events.kind[came], events.a[came], events.b[came]);
                 came++;
             }
         }
 
         private void takeScheduled() {
             while (events.recorded < events.total && events.isAt(events.recorded, end)) {
-                if (events.comesTo(events.recorded, kernel)) {
+                int i = events.recorded;
+                if (kernel.come(events.kind[i], events.a[i], events.b[i])) {
                     events.recorded++;
                     came++;
                 } else {
@@ -4500,12 +4487,12 @@ public final class TimeMachine {
             if (machine.current >= 0) {
                 return 0;
             }
-            return machine.withStatus(Machine.WAITING) > 0 ? 1 : 2;
+            return machine.waiting > 0 ? 1 : 2;
         }
 
         private int hit(Condition[] breaks) {
             for (int k = 0; k < breaks.length; k++) {
-                if (breaks[k] != null && worth(breaks[k]) != 0) {
+                if (breaks[k] != null && breaks[k].worth(machine, now) != 0) {
                     return 3 + 8 * k;
                 }
             }
@@ -4515,18 +4502,9 @@ public final class TimeMachine {
         private void rememberAll(Condition[] breaks) {
             for (int k = 0; k < breaks.length; k++) {
                 if (breaks[k] != null) {
-                    remember(breaks[k]);
+                    breaks[k].remember(machine, now);
                 }
             }
-        }
-
-        /** The count now is the one before, for what a condition asks of old. */
-        void remember(Condition it) {
-            it.remember(machine, now);
-        }
-
-        long worth(Condition it) {
-            return it.worth(machine, now);
         }
 
         // ---- going to a count
@@ -4551,7 +4529,9 @@ public final class TimeMachine {
         }
 
         private void restore(int i) {
-            machine.become(copy[i]);
+            if (copy[i] != null) {
+                machine.become(copy[i]);
+            }
             now = copyAt[i];
             came = events.recordedBefore(now);
             takeRecorded();
@@ -4577,9 +4557,9 @@ public final class TimeMachine {
                 int first = now;
                 int found = first == 0 && holdsAtFirst(it) ? 0 : -1;
                 for (int more = upper - now; more > 0; more--) {
-                    remember(it);
+                    it.remember(machine, now);
                     advance();
-                    if (worth(it) != 0) {
+                    if (it.worth(machine, now) != 0) {
                         found = now;
                     }
                 }
@@ -4592,8 +4572,8 @@ public final class TimeMachine {
         }
 
         private boolean holdsAtFirst(Condition it) {
-            remember(it);
-            return worth(it) != 0;
+            it.remember(machine, now);
+            return it.worth(machine, now) != 0;
         }
 
         int latestWrite(int p, int address) {
@@ -4702,8 +4682,6 @@ public final class TimeMachine {
         private long number;
         private int fault;
         private int parts;
-        private int opened;
-        private boolean inOld;
 
         /** 0, or a fault + 8 * its place. */
         int compile(byte[] row, int length) {
@@ -4719,11 +4697,8 @@ public final class TimeMachine {
             top = 0;
             olds = 0;
             parts = 0;
-            opened = 0;
-            inOld = false;
             fault = 0;
             read();
-            source = new byte[0];
             return fault;
         }
 
@@ -4893,11 +4868,24 @@ public final class TimeMachine {
             }
         }
 
-        private void deepen() {
-            if (opened >= DEEPEST) {
+        /** How many signs from least to most wait. */
+        private int waiting(int least, int most) {
+            int n = 0;
+            for (int i = 0; i < top; i++) {
+                if (sign[i] >= least && sign[i] <= most) {
+                    n++;
+                }
+            }
+            return n;
+        }
+
+        /** A ( or [ opens: what is said there waits for its end. */
+        private void opens(int what, int where) {
+            part();
+            if (waiting(OPEN, BYTE_AT) >= DEEPEST) {
                 blame(4);
             }
-            opened++;
+            push(what, where);
         }
 
         private void push(int what, int where) {
@@ -4929,9 +4917,7 @@ public final class TimeMachine {
                 push(number == SUBTRACT ? NEGATE : (int) number, 0);
                 more = true;
             } else if (kind == SIGN && (number == OPEN || number == WORD_AT)) {
-                part();
-                deepen();
-                push((int) number, 0);
+                opens((int) number, 0);
                 more = true;
             } else {
                 blame(1);
@@ -4943,7 +4929,7 @@ public final class TimeMachine {
         private boolean takeWord() {
             int what = meaning();
             boolean remembers = what == OLD || what == CHANGED;
-            if (what == UNKNOWN || remembers && inOld) {
+            if (what == UNKNOWN || remembers && waiting(OLD, CHANGED) > 0) {
                 blame(what == UNKNOWN ? 2 : 1);
                 return false;
             }
@@ -4959,17 +4945,14 @@ public final class TimeMachine {
             if (kind != SIGN || number != (remembers ? OPEN : WORD_AT)) {
                 blame(1);
             }
-            part();
-            deepen();
-            if (fault == 0 && remembers) {
+            opens(what, olds);
+            if (fault == 0 && remembers && olds < oldFrom.length) {
                 if (what == OLD) {
                     emit(OLD, olds);
                 }
                 oldFrom[olds] = codes;
-                inOld = true;
                 olds++;
             }
-            push(what, olds - 1);
             return true;
         }
 
@@ -5001,11 +4984,9 @@ public final class TimeMachine {
                 return;
             }
             top--;
-            opened--;
             int what = sign[top];
             if (what == OLD || what == CHANGED) {
                 oldTo[signAt[top]] = codes;
-                inOld = false;
             }
             if (what != OPEN && what != OLD) {
                 emit(what, signAt[top]);
@@ -5033,6 +5014,7 @@ public final class TimeMachine {
             return failed ? 0 : v;
         }
 
+        /** The machine is as at the count before, for what is asked of old. */
         void remember(Machine machine, int count) {
             for (int j = 0; j < olds; j++) {
                 long v = evaluate(machine, count, oldFrom[j], oldTo[j]);
@@ -5050,13 +5032,13 @@ public final class TimeMachine {
                 } else if (what == OLD) {
                     int j = (int) argument[i];
                     put(oldValue[j]);
-                    i = oldTo[j] - 1;
-                } else if (top < 1) {
+                    i = Math.max(i, oldTo[j] - 1);
+                } else if (top < 1 || what < NOT && top < 2) {
                     failed = true;
                 } else if (what == IF || what == IF_NOT) {
                     if (stack[top - 1] != 0 == (what == IF)) {
                         stack[top - 1] = what == IF ? 1 : 0;
-                        i = (int) argument[i] - 1;
+                        i = Math.max(i, (int) argument[i] - 1);
                     } else {
                         top--;
                     }
