@@ -2358,8 +2358,9 @@ public final class TimeMachine {
         /** The next READY process behind one in the ring, which may be itself; -1 without one. */
         int nextReady(int p) {
             for (int k = 1; k <= PROCESSES; k++) {
-                if (status(p + k & 15) == READY) {
-                    return p + k & 15;
+                int q = p + k & 15;
+                if (self[q * ROW + STATUS] == READY) {
+                    return q;
                 }
             }
             return NOTHING;

@@ -15,7 +15,7 @@ final class Checks {
         asked++;
         if (got != due) {
             wrong++;
-            System.out.println(part + ": " + what + " answered " + got + ", due is " + due);
+            System.out.println(part + ": " + brief(what) + " answered " + got + ", due is " + due);
         }
     }
 
@@ -25,6 +25,10 @@ final class Checks {
             wrong++;
             System.out.println(part + ": " + what + " answered <" + got + ">, due is <" + due + ">");
         }
+    }
+
+    private static String brief(String what) {
+        return what.length() <= 100 ? what : what.substring(0, 100) + "..";
     }
 
     void refused(String what, Runnable call, Class<? extends RuntimeException> due) {
