@@ -266,37 +266,6 @@ public final class TimeTest {
         }
     }
 
-    /** All that is told of a machine, but for END and the events of the recording. */
-    static List<Long> seen(TimeMachine x) {
-        List<Long> all = new ArrayList<>();
-        for (int what : new int[] {0, 2, 4, 6, 7, 8, 9, 10, 11, 12, 13, 14}) {
-            all.add(x.count(what));
-        }
-        for (int p = 0; p < 6; p++) {
-            for (int r = 0; r <= 32; r++) {
-                all.add((long) x.register(p, r));
-            }
-            for (int what = 0; what <= 7; what++) {
-                all.add((long) x.process(p, what));
-            }
-            for (int a = 1024; a < 1100; a++) {
-                all.add((long) x.peek(p, a));
-                all.add((long) x.wrote(p, a));
-            }
-            for (int d = 0; d < 6; d++) {
-                for (int what = 0; what <= 4; what++) {
-                    all.add((long) x.descriptor(p, d, what));
-                }
-                all.add((long) x.held(p, d, 0));
-                all.add((long) x.held(p, d, 2));
-            }
-        }
-        for (int k = 0; k < 20; k++) {
-            all.add((long) x.shown(k));
-        }
-        return all;
-    }
-
     /** Every count shows the machine as it was when it was first there, whichever way it is gone to. */
     private static void everyCount() {
         c.about("promise 15, every count");
@@ -309,7 +278,7 @@ public final class TimeTest {
         s.add("h: la t0, p\nlw t1, 0(t0)\naddi t1, t1, 0\nsw t1, 0(t0)").call(Script.BACK);
         TimeMachine x = s.booted(c);
         List<List<Long>> was = new ArrayList<>();
-        was.add(seen(x));
+        was.add(TimeSeen.of(x));
         for (int i = 1; i <= 900; i++) {
             x.run(1);
             if (i % 7 == 0) {
@@ -328,9 +297,9 @@ public final class TimeTest {
                 x.outside(0, i % 4, 0);
             }
             if (x.count(0) == was.size()) {
-                was.add(seen(x));
+                was.add(TimeSeen.of(x));
             } else {
-                was.set((int) x.count(0), seen(x));
+                was.set((int) x.count(0), TimeSeen.of(x));
             }
         }
         int end = (int) x.count(1);
@@ -338,11 +307,11 @@ public final class TimeTest {
         for (int i = 0; i < 300; i++) {
             int at = (int) (i * 7919L % (end + 1));
             x.go(at);
-            c.same("what is seen at " + at, seen(x).equals(was.get(at)) ? 1 : 0, 1);
+            c.same("what is seen at " + at, TimeSeen.of(x).equals(was.get(at)) ? 1 : 0, 1);
             if (i % 3 == 0 && at < end) {
                 int more = Math.min(end - at, i % 50);
                 c.same("run on", x.run(more), more);
-                c.same("what is seen then", seen(x).equals(was.get(at + more)) ? 1 : 0, 1);
+                c.same("what is seen then", TimeSeen.of(x).equals(was.get(at + more)) ? 1 : 0, 1);
             }
         }
     }
