@@ -2149,9 +2149,8 @@ public final class TimeMachine {
             Arrays.fill(users, 0);
             Arrays.fill(page, 0);
             framesUsed = 0;
-            Arrays.fill(self, 0);
             for (int p = 0; p < PROCESSES; p++) {
-                self[p * ROW + PARENT] = NOTHING;
+                makeAbsent(p);
             }
             randoms = 0;
             waiting = 0;
@@ -2267,7 +2266,9 @@ public final class TimeMachine {
             int k = from;
             for (int f = 0; f < FRAMES && k < from + n && k < PAGES; f++) {
                 if (users[f] == 0) {
-                    Arrays.fill(word, f * PAGE_WORDS, (f + 1) * PAGE_WORDS, 0);
+                    for (int i = 0; i < PAGE_WORDS; i++) {
+                        word[f * PAGE_WORDS + i] = 0;
+                    }
                     users[f] = 1;
                     framesUsed++;
                     page[p << 6 | k] = f << 3 | rights;
@@ -2317,9 +2318,12 @@ public final class TimeMachine {
                     put(p, a, 255, program.image[a]);
                 }
             }
-            Arrays.fill(reg, p * REGISTERS, (p + 1) * REGISTERS, 0);
-            reg[p * REGISTERS + 2] = SPACE;
-            Arrays.fill(handler, p * SIGNALS, (p + 1) * SIGNALS, 0);
+            for (int r = 0; r < REGISTERS; r++) {
+                reg[p * REGISTERS + r] = r == 2 ? SPACE : 0;
+            }
+            for (int signal = 0; signal < SIGNALS; signal++) {
+                handler[p * SIGNALS + signal] = 0;
+            }
             self[p * ROW + WITHIN] = 0;
             self[p * ROW + HEAP] = program.heapStart();
             self[p * ROW + HEAP_END] = program.heapStart();
@@ -2401,8 +2405,9 @@ public final class TimeMachine {
         }
 
         void makeAbsent(int p) {
-            Arrays.fill(self, p * ROW, (p + 1) * ROW, 0);
-            self[p * ROW + PARENT] = NOTHING;
+            for (int what = 0; what < ROW; what++) {
+                self[p * ROW + what] = what == PARENT ? NOTHING : 0;
+            }
         }
 
         void finish(int p, int code) {
