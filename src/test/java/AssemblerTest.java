@@ -197,7 +197,8 @@ public final class AssemblerTest {
         c.same("data begins", x.program(0, 1), 2048);
         c.same("size, with no data", x.program(0, 2), 1025);
         c.same("label of no data", x.label(0, 0), 2048);
-        c.same("fault", Checks.assemble(x, 0, "t: .data\nd: .text\nnop\ne:"), 0);
+        c.same("fault", Checks.assemble(x, 0, "t: .data\n0: d: .text\n9: nop\ne:"), 0);
+        c.same("labels with names", x.program(0, 3), 3);
         c.same("label before a section", x.label(0, 0), 0);
         c.same("label before a section", x.label(0, 1), 1024);
         c.same("label", x.label(0, 2), 4);
@@ -342,6 +343,7 @@ public final class AssemblerTest {
         fault("nop nop", 1, 1);
         fault("5", 1, 1);
         fault("5 nop", 1, 1);
+        fault("0 nop", 1, 1);
         fault(": nop", 1, 1);
         fault("a b: nop", 2, 1);
         fault("foo", 2, 1);
@@ -540,5 +542,20 @@ public final class AssemblerTest {
             many.append("n").append(i).append(": ");
         }
         fine(many.toString());
+        manyNames();
+    }
+
+    private static void manyNames() {
+        StringBuilder many = new StringBuilder();
+        for (int i = 0; i < 1200; i++) {
+            many.append("n").append(i).append(": .half n").append(1199 - i).append('\n');
+        }
+        TimeMachine x = new TimeMachine();
+        c.same("fault", Checks.assemble(x, 0, many.toString()), 0);
+        for (int i = 0; i < 1200; i++) {
+            c.same("a name's address", x.image(0, 2 * i) | x.image(0, 2 * i + 1) << 8, 2 * (1199 - i));
+            c.same("its label", x.label(0, i), 2 * i);
+        }
+        fault(many + "n77:", 4, 1201);
     }
 }

@@ -197,6 +197,9 @@ public final class BreakTest {
         fault("x01", 2, 0);
         fault("x", 2, 0);
         fault("X1", 2, 0);
+        fault("AZ", 2, 0);
+        fault("az09", 2, 0);
+        fault("\u0007", 1, 0);
         fault("pc2", 2, 0);
         fault("1 = 1", 1, 2);
         fault("1 @ 1", 1, 2);

@@ -102,6 +102,7 @@ public final class HartTest {
     private static void jumps() {
         gives("jal a2, 1f\nnop\n1: nop", 4);
         gives("c.nop\nla a0, 1f\njalr a2, 1(a0)\nli a2, 0\n1: nop", 14);
+        gives("la a0, 1f\njalr a2, -4(a0)\nli a2, 5\nnop\n1: nop", 12);
         gives("li a2, 1\nbeq a2, a2, 1f\nli a2, 0\n1: nop", 1);
         gives("li a2, 1\nbne a2, a2, 1f\nli a2, 0\n1: nop", 0);
         gives("li a2, -1\nblt a2, zero, 1f\nli a2, 0\n1: nop", -1);

@@ -223,6 +223,9 @@ public final class TimeTest {
         c.same("no address", x.wrote(0, 65536), -1);
         x.boot(0);
         c.same("booted anew", x.wrote(0, w), -1);
+        x = c.booted("sw sp, -4(sp)\nnop");
+        x.run(2);
+        c.same("the first tick", x.wrote(0, 65532), 0);
     }
 
     private static void writesOfCalls() {
