@@ -108,6 +108,12 @@ public final class HartTest {
         gives("li a2, -1\nblt a2, zero, 1f\nli a2, 0\n1: nop", -1);
         gives("li a2, -1\nbltu a2, zero, 1f\nli a2, 0\n1: nop", 0);
         gives("li a2, -1\nbge a2, zero, 1f\nli a2, 0\n1: nop", 0);
+        for (String equal : new String[] {"blt", "bltu", "bne"}) {
+            gives("li a2, 5\nli a0, 5\n" + equal + " a2, a0, 1f\nli a2, 0\n1: nop", 0);
+        }
+        for (String equal : new String[] {"bge", "bgeu", "beq"}) {
+            gives("li a2, 5\nli a0, 5\n" + equal + " a2, a0, 1f\nli a2, 0\n1: nop", 5);
+        }
         gives("li a2, -1\nbgeu a2, zero, 1f\nli a2, 0\n1: nop", -1);
         gives("li a2, 3\nli a0, 2\n1: addi a2, a2, 5\naddi a0, a0, -1\nbnez a0, 1b", 13);
     }

@@ -103,6 +103,16 @@ public final class LogTest {
         for (int i = 0; i < 200; i++) {
             x.outside(3, 7, 0);
         }
+        TimeMachine y = c.booted(LOOP);
+        for (int i = 0; i < 4; i++) {
+            y.run(1);
+            y.outside(3, 7, 0);
+        }
+        packs("before a cut", y, "04" + "030107" + "35");
+        y.go(3);
+        packs("all, up to END", y, "04" + "030107" + "35");
+        y.cut();
+        packs("behind a cut", y, "03" + "030107" + "25");
         packs("many", x, "de01" + "0b07" + "0510" + "1302" + "25" + "030008" + "0b07" + "05c801");
     }
 
