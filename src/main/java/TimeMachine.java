@@ -25,16 +25,24 @@ public final class TimeMachine {
     private boolean fresh;
     private final Program[] programs = new Program[PROGRAMS];
     // Four that are assembled, four that the booted machine has, and one to assemble into.
-    private final Program[] pool = new Program[2 * PROGRAMS + 1];
-    private Assembler assembler;
+    private final Program[] programPool = new Program[2 * PROGRAMS + 1];
+    private final Assembler assembler = new Assembler();
     private final Timeline timeline = new Timeline();
     private final Condition[] breaks = new Condition[BREAKS];
-    private Condition spare;
-    private byte[] log;
+    // Those of the breaks, and one to compile into.
+    private final Condition[] conditionPool = new Condition[BREAKS + 1];
+    private final byte[] log = new byte[TAPE];
     private int logged;
     private final StringBuilder letters = new StringBuilder();
 
+    /** Makes all that the calls need and keep, so that a call makes nothing large. */
     public TimeMachine() {
+        for (int i = 0; i < programPool.length; i++) {
+            programPool[i] = new Program();
+        }
+        for (int i = 0; i < conditionPool.length; i++) {
+            conditionPool[i] = new Condition();
+        }
     }
 
     // ---- the tape and programs
@@ -65,9 +73,6 @@ public final class TimeMachine {
         if (p < 0 || p >= PROGRAMS) {
             throw new IllegalArgumentException();
         }
-        if (assembler == null) {
-            assembler = new Assembler();
-        }
         Program made = unusedProgram();
         int fault = assembler.make(tape, useTape(), made);
         if (fault == 0) {
@@ -89,7 +94,7 @@ public final class TimeMachine {
             case 2:
                 return it.size;
             case 3:
-                return it.labels.length;
+                return it.labels;
             case 4:
                 return it.constants;
             default:
@@ -104,7 +109,7 @@ public final class TimeMachine {
 
     public int label(int p, int k) {
         Program it = programOf(p);
-        return it == null || k < 0 || k >= it.labels.length ? -1 : it.labels[k];
+        return it == null || k < 0 || k >= it.labels ? -1 : it.label[k];
     }
 
     public int before(int p, int a) {
@@ -184,14 +189,10 @@ public final class TimeMachine {
         if (k < 0 || k >= BREAKS) {
             throw new IllegalArgumentException();
         }
-        if (spare == null) {
-            spare = new Condition();
-        }
-        int fault = spare.compile(tape, useTape());
+        Condition made = unusedCondition();
+        int fault = made.compile(tape, useTape());
         if (fault == 0) {
-            Condition old = breaks[k];
-            breaks[k] = spare;
-            spare = old;
+            breaks[k] = made;
         }
         return fault;
     }
@@ -200,13 +201,9 @@ public final class TimeMachine {
         if (k < 0 || k >= BREAKS) {
             throw new IllegalArgumentException();
         }
-        Condition gone = breaks[k];
-        if (gone == null) {
-            return false;
-        }
+        boolean was = breaks[k] != null;
         breaks[k] = null;
-        spare = gone;
-        return true;
+        return was;
     }
 
     public long value(int k) throws IllegalArgumentException, IllegalStateException {
@@ -324,15 +321,12 @@ public final class TimeMachine {
     // ---- the recording
 
     public int pack() {
-        if (log == null) {
-            log = new byte[TAPE];
-        }
         logged = timeline.events.writeLog(log);
         return logged;
     }
 
     public int logByte(int k) {
-        return log == null || k < 0 || k >= logged ? -1 : log[k] & 255;
+        return k < 0 || k >= logged ? -1 : log[k] & 255;
     }
 
     public long event(int k, int what) {
@@ -361,20 +355,33 @@ public final class TimeMachine {
     }
 
     private Program unusedProgram() {
-        for (int i = 0; i < pool.length; i++) {
-            if (pool[i] == null) {
-                pool[i] = new Program();
-            }
-            if (!isUsed(pool[i])) {
-                return pool[i];
-            }
+        int i = 0;
+        while (i < programPool.length - 1 && isUsedProgram(programPool[i])) {
+            i++;
         }
-        return new Program();
+        return programPool[i];
     }
 
-    private boolean isUsed(Program it) {
+    private boolean isUsedProgram(Program it) {
         for (int p = 0; p < PROGRAMS; p++) {
             if (programs[p] == it || timeline.programs[p] == it) {
+                return true;
+            }
+        }
+        return false;
+    }
+
+    private Condition unusedCondition() {
+        int i = 0;
+        while (i < conditionPool.length - 1 && isBreak(conditionPool[i])) {
+            i++;
+        }
+        return conditionPool[i];
+    }
+
+    private boolean isBreak(Condition it) {
+        for (int k = 0; k < BREAKS; k++) {
+            if (breaks[k] == it) {
                 return true;
             }
         }
@@ -398,16 +405,43 @@ public final class TimeMachine {
     /** A program that was assembled. */
     private static final class Program {
         static final int PAGE = 1024;
-        // Of each statement that has bytes: where it begins, where it ends, its line.
-        static final int RECORD = 3;
+        // One letter and its : are two bytes of the text, but there are fewer than 64 such names.
+        private static final int MOST_LABELS = TAPE / 3 + 64;
 
         final byte[] image = new byte[TAPE];
         int textSize;
         int dataStart;
         int size;
         int constants;
-        int[] labels = new int[0];
-        int[] statements = new int[0];
+        final int[] label = new int[MOST_LABELS];
+        int labels;
+        // Of each statement that has bytes.
+        private final int[] start = new int[Assembler.MOST];
+        private final int[] line = new int[Assembler.MOST];
+        private int statements;
+
+        void startDescription(int text, int data, int all) {
+            textSize = text;
+            dataStart = data;
+            size = all;
+            labels = 0;
+            statements = 0;
+        }
+
+        void addLabel(int address) {
+            if (labels < label.length) {
+                label[labels] = address;
+                labels++;
+            }
+        }
+
+        void addStatement(int address, int lineOf) {
+            if (statements < start.length) {
+                start[statements] = address;
+                line[statements] = lineOf;
+                statements++;
+            }
+        }
 
         int textPages() {
             return (textSize + PAGE - 1) / PAGE;
@@ -423,21 +457,26 @@ public final class TimeMachine {
 
         int labelUpTo(int a) {
             int best = -1;
-            for (int k = 0; k < labels.length; k++) {
-                if (labels[k] <= a && (best < 0 || labels[k] >= labels[best])) {
+            for (int k = 0; k < labels; k++) {
+                if (label[k] <= a && (best < 0 || label[k] >= label[best])) {
                     best = k;
                 }
             }
             return best;
         }
 
+        /** A statement's bytes go up to the next one of its section, or to the section's end. */
         int lineOf(int k) {
-            for (int i = 0; i + 2 < statements.length; i += RECORD) {
-                if (statements[i] <= k && k < statements[i + 1]) {
-                    return statements[i + 2];
+            if (k < 0 || k >= size || k >= textSize && k < dataStart) {
+                return 0;
+            }
+            int best = -1;
+            for (int i = 0; i < statements; i++) {
+                if (start[i] <= k && (best < 0 || start[i] > start[best])) {
+                    best = i;
                 }
             }
-            return 0;
+            return best < 0 ? 0 : line[best];
         }
     }
 
@@ -1454,7 +1493,7 @@ public final class TimeMachine {
         private static final int LETTER = 7;
         private static final int ROW = 8;
         // The shortest statements have three characters, and the end of their line.
-        private static final int MOST = TAPE / 4 + 2;
+        static final int MOST = TAPE / 4 + 2;
 
         // Kinds of statements: with a fixed length, with one that grows, and the rest.
         private static final int PLAIN = 0;
@@ -2059,26 +2098,16 @@ public final class TimeMachine {
         }
 
         private void describe(Program out) {
-            out.textSize = textSize;
-            out.dataStart = dataStart;
-            out.size = size;
+            out.startDescription(textSize, dataStart, size);
             out.constants = constants;
-            out.statements = new int[statements * Program.RECORD];
-            for (int i = 0; i < statements; i++) {
-                out.statements[i * Program.RECORD] = statement[i * ROW + PLACE];
-                out.statements[i * Program.RECORD + 1] = statement[i * ROW + PLACE] + statement[i * ROW + LENGTH];
-                out.statements[i * Program.RECORD + 2] = statement[i * ROW + LINE_OF];
+            for (int s = 0; s < statements * ROW; s += ROW) {
+                if (statement[s + LENGTH] > 0) {
+                    out.addStatement(statement[s + PLACE], statement[s + LINE_OF]);
+                }
             }
-            int named = 0;
-            for (int i = 0; i < reader.labels; i++) {
-                named += reader.label[i * Reader.LABEL_ROW + Reader.NAMED];
-            }
-            out.labels = new int[named];
-            int k = 0;
-            for (int i = 0; i < reader.labels && k < named; i++) {
-                if (reader.label[i * Reader.LABEL_ROW + Reader.NAMED] == 1) {
-                    out.labels[k] = reader.label[i * Reader.LABEL_ROW + Reader.PLACE];
-                    k++;
+            for (int i = 0; i < reader.labels * Reader.LABEL_ROW; i += Reader.LABEL_ROW) {
+                if (reader.label[i + Reader.NAMED] == 1) {
+                    out.addLabel(reader.label[i + Reader.PLACE]);
                 }
             }
         }
@@ -4348,6 +4377,12 @@ public final class TimeMachine {
         private boolean missed;
         int why;
 
+        Timeline() {
+            for (int i = 0; i < COPIES; i++) {
+                copy[i] = new Machine();
+            }
+        }
+
         // ---- starting
 
         void startWithout(Program[] from, int p) {
@@ -4381,9 +4416,6 @@ public final class TimeMachine {
 
         private void keepCopy() {
             if (copies < COPIES) {
-                if (copy[copies] == null) {
-                    copy[copies] = new Machine();
-                }
                 copy[copies].become(machine);
                 copyAt[copies] = now;
                 copies++;
@@ -4535,9 +4567,7 @@ public final class TimeMachine {
         }
 
         private void restore(int i) {
-            if (copy[i] != null) {
-                machine.become(copy[i]);
-            }
+            machine.become(copy[i]);
             now = copyAt[i];
             came = events.recordedBefore(now);
             takeRecorded();
