@@ -4352,7 +4352,7 @@ public final class TimeMachine {
     private static final class Timeline {
         static final int LAST = 60000;
         // Copies stand at multiples of a spacing that doubles when there is no room for more of them.
-        private static final int COPIES = 16;
+        private static final int COPIES = 8;
         private static final int FIRST_SPACING = 256;
 
         final Program[] programs = new Program[PROGRAMS];

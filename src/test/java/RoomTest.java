@@ -12,8 +12,8 @@ import java.util.Set;
 public final class RoomTest {
     // A thrown exception with its trace, or a text's characters, but no row that is kept.
     private static final long SMALL = 2048;
-    // Of the 7.3 million fields and elements that all calls of a run have, with room for a second object.
-    private static final long MOST_KEPT = 3_000_000;
+    // Of the 7.3 million fields and elements that all calls of a run have, with room for two objects more.
+    private static final long MOST_KEPT = 2_000_000;
     private static final Checks c = new Checks();
     private static final com.sun.management.ThreadMXBean THREADS =
             (com.sun.management.ThreadMXBean) ManagementFactory.getThreadMXBean();
