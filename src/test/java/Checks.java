@@ -11,6 +11,11 @@ final class Checks {
         part = what;
     }
 
+    /** The sentence of the document that the checks that follow hold to, and where it stands. */
+    void sentence(String where, String words) {
+        about(where + ", \"" + words + "\"");
+    }
+
     void same(String what, long got, long due) {
         asked++;
         if (got != due) {
@@ -55,6 +60,13 @@ final class Checks {
         refused(what, call, IllegalStateException.class);
     }
 
+    /** The answers that a script of a process has kept, from one on. */
+    void answers(String what, TimeMachine x, int p, int first, int... due) {
+        for (int i = 0; i < due.length; i++) {
+            same(what + ", answer " + (first + i), Script.answer(x, p, first + i), due[i]);
+        }
+    }
+
     /** Ends the test: exit code 1 if something was wrong. */
     void finish() {
         System.out.println(asked + " checks, " + wrong + " wrong");
@@ -63,13 +75,20 @@ final class Checks {
         }
     }
 
+    /** The part that is less than twenty bytes comes first, so that a whole tape can be fed. */
     static void feed(TimeMachine x, byte[] bytes) {
-        for (int i = 0; i < bytes.length; i += 20) {
-            x.feed(four(bytes, i), four(bytes, i + 4), four(bytes, i + 8), four(bytes, i + 12), four(bytes, i + 16));
+        int first = bytes.length % 20;
+        if (first != 0) {
+            feedTwenty(x, bytes, 0);
+            x.end(first);
         }
-        if (bytes.length % 20 != 0) {
-            x.end(bytes.length % 20);
+        for (int i = first; i < bytes.length; i += 20) {
+            feedTwenty(x, bytes, i);
         }
+    }
+
+    private static void feedTwenty(TimeMachine x, byte[] bytes, int i) {
+        x.feed(four(bytes, i), four(bytes, i + 4), four(bytes, i + 8), four(bytes, i + 12), four(bytes, i + 16));
     }
 
     private static int four(byte[] bytes, int from) {
@@ -92,6 +111,15 @@ final class Checks {
     static int watch(TimeMachine x, int k, String text) {
         feed(x, text);
         return x.watch(k);
+    }
+
+    /** The recording, packed. */
+    static byte[] logOf(TimeMachine x) {
+        byte[] row = new byte[x.pack()];
+        for (int k = 0; k < row.length; k++) {
+            row[k] = (byte) x.logByte(k);
+        }
+        return row;
     }
 
     static byte[] bytes(int... values) {

@@ -35,12 +35,6 @@ public final class KernelTest {
         c.finish();
     }
 
-    private static void answers(String what, TimeMachine x, int p, int... due) {
-        for (int i = 0; i < due.length; i++) {
-            c.same(what + ", answer " + i, Script.answer(x, p, i), due[i]);
-        }
-    }
-
     private static void wrongBoots() {
         c.about("promise 10");
         TimeMachine x = new TimeMachine();
@@ -143,8 +137,8 @@ public final class KernelTest {
         c.same("its bytes", x.peek(1, x.label(0, 1)), 6);
         c.same("its console", x.descriptor(1, 1, 1), 4);
         x.run(100);
-        answers("the parent", x, 0, 1, 0);
-        answers("the child", x, 1, 0, 1);
+        c.answers("the parent", x, 0, 0, 1, 0);
+        c.answers("the child", x, 1, 0, 0, 1);
         c.same("frames, as both wrote", x.count(10), 7);
     }
 
@@ -161,7 +155,7 @@ public final class KernelTest {
         s.add("2: ").call(Script.EXIT, 7);
         TimeMachine x = s.booted(c);
         x.run(1000);
-        answers("answers", x, 0, NONE, 2 + 256 * 7, 1 + 256 * 0x34, NONE);
+        c.answers("answers", x, 0, 0, NONE, 2 + 256 * 7, 1 + 256 * 0x34, NONE);
         c.same("processes", x.count(11), 1);
         c.same("waiting for a random word", x.process(0, 7), 21);
     }
@@ -179,7 +173,7 @@ public final class KernelTest {
         c.same("1 waits for it", x.process(1, 7), 3);
         x.outside(3, 5, 0);
         x.run(1000);
-        answers("answers", x, 1, 256 * 4, NONE);
+        c.answers("answers", x, 1, 0, 256 * 4, NONE);
         c.same("0 is absent", x.process(0, 0), 0);
     }
 
@@ -224,7 +218,7 @@ public final class KernelTest {
         Checks.assemble(x, 2, "ebreak");
         x.run(30);
         c.same("pages", x.process(0, 5), 12);
-        answers("answers", x, 0, MISSING, MISSING);
+        c.answers("answers", x, 0, 0, MISSING, MISSING);
         x.run(1000);
         c.same("waits", x.process(0, 7), 21);
         c.same("pages", x.process(0, 5), 5);
@@ -285,7 +279,7 @@ public final class KernelTest {
         c.same("the other one", x.count(2), 1);
         x.run(2);
         c.same("and back", x.count(2), 0);
-        answers("answers 0", x, 0, 0);
+        c.answers("answers 0", x, 0, 0, 0);
         c.same("place", x.register(0, 32), x.register(1, 32));
     }
 
@@ -316,7 +310,7 @@ public final class KernelTest {
         c.same("frames", x.count(10), 7 + 56);
         c.same("no page above the heap", x.peek(0, 60416), -1);
         x.run(1000);
-        answers("answers", x, 0, INVALID, 2048, 2048, INVALID, INVALID, 2049, 60416, 2050, 2048);
+        c.answers("answers", x, 0, 0, INVALID, 2048, 2048, INVALID, INVALID, 2049, 60416, 2050, 2048);
         c.same("a page that stays", x.register(0, 18), 9);
         c.same("a page that is new", x.register(0, 19), 0);
         c.same("heap ends", x.process(0, 6), 3072);
@@ -342,7 +336,7 @@ public final class KernelTest {
         s.kept(Script.BACK);
         TimeMachine x = s.stay().booted(c);
         x.run(1000);
-        answers("answers", x, 0, INVALID, INVALID, INVALID, INVALID, 0, 8, 12, INVALID, INVALID, INVALID, INVALID, NONE,
+        c.answers("answers", x, 0, 0, INVALID, INVALID, INVALID, INVALID, 0, 8, 12, INVALID, INVALID, INVALID, INVALID, NONE,
                 INVALID, INVALID);
     }
 
@@ -411,7 +405,7 @@ public final class KernelTest {
         c.same("it ends", x.process(1, 0), 3);
         c.same("its code", x.process(1, 2), 128 + 9);
         x.run(1000);
-        answers("the parent", x, 0, 1 + 256 * (128 + 9));
+        c.answers("the parent", x, 0, 0, 1 + 256 * (128 + 9));
         TimeMachine y = t.booted(c);
         y.run(1000);
         y.outside(3, 9, 0);
@@ -458,7 +452,7 @@ public final class KernelTest {
         x.outside(3, 1, 0);
         c.same("now", x.process(0, 0), 1);
         x.run(1000);
-        answers("answers", x, 0, 0, 0);
+        c.answers("answers", x, 0, 0, 0, 0);
         c.same("unsigned", x.process(0, 7), 19);
         x.outside(3, 0xfffffffeL, 0);
         c.same("not yet", x.process(0, 0), 2);
@@ -503,7 +497,7 @@ public final class KernelTest {
         c.same("random", x.outside(4, 17, 0), 0);
         c.same("wait", x.count(7), 2);
         x.run(1000);
-        answers("answers", x, 0, 0xfffffff0, -1, 17);
+        c.answers("answers", x, 0, 0, 0xfffffff0, -1, 17);
         c.same("none wait", x.count(7), 0);
         TimeMachine y = c.booted("1: j 1b");
         for (int i = 0; i < 16; i++) {
@@ -521,7 +515,7 @@ public final class KernelTest {
         s.kept(1 << 20);
         TimeMachine x = s.stay().booted(c);
         x.run(1000);
-        answers("answers", x, 0, -38, -38, -38);
+        c.answers("answers", x, 0, 0, -38, -38, -38);
     }
 
     private static void sharedFrames() {

@@ -31,12 +31,6 @@ public final class ThingsTest {
         c.finish();
     }
 
-    private static void answers(String what, TimeMachine x, int first, int... due) {
-        for (int i = 0; i < due.length; i++) {
-            c.same(what + ", answer " + i, Script.answer(x, 0, first + i), due[i]);
-        }
-    }
-
     private static void atFirst() {
         c.about("promise 26, at first");
         TimeMachine x = c.booted("nop");
@@ -93,7 +87,7 @@ public final class ThingsTest {
         c.same("read", x.descriptor(0, 0, 2), 3);
         c.same("held", Checks.held(x, 0, 0), "fgh");
         x.run(1000);
-        answers("answers", x, 0, 0, 3, 0, 5, 3, 0, BAD, 0, BAD);
+        c.answers("answers", x, 0, 0, 0, 3, 0, 5, 3, 0, BAD, 0, BAD);
         c.same("openings", x.count(13), 0);
         c.same("closed", x.descriptor(0, 0, 0), 0);
         c.same("typed without a descriptor", x.outside(1, 'z', 1), 0);
@@ -111,7 +105,7 @@ public final class ThingsTest {
         // a b 4 | 0 bytes asked | 4 first | c, then 4 stays for the next | 4 alone | d e
         x.outside(1, 0x6162040463046465L, 8);
         x.run(1000);
-        answers("answers", x, 0, 2, 0, 0, 1, 0, 2);
+        c.answers("answers", x, 0, 0, 2, 0, 0, 1, 0, 2);
         c.same("all is taken", x.count(9), 0);
         c.same("room for 512", fill(x), 0);
     }
@@ -159,7 +153,7 @@ public final class ThingsTest {
         s.kept(Script.CLOSE, 2);
         TimeMachine x = s.stay().booted(c);
         x.run(8);
-        answers("the pipe", x, 0, 0);
+        c.answers("the pipe", x, 0, 0, 0);
         c.same("kind", x.descriptor(0, 2, 0), 1);
         c.same("kind", x.descriptor(0, 3, 0), 2);
         c.same("rights", x.descriptor(0, 2, 4), 1);
@@ -175,7 +169,7 @@ public final class ThingsTest {
         c.same("held by the other end", Checks.held(x, 0, 3), "abcdef");
         c.same("bytes", x.descriptor(0, 2, 2), 6);
         x.run(1000);
-        answers("answers", x, 0, 0, 6, 4, 0, BAD, BAD, 3, 5, 0, 0, 0);
+        c.answers("answers", x, 0, 0, 0, 6, 4, 0, BAD, BAD, 3, 5, 0, 0, 0);
         c.same("what was read", x.peek(0, b), 'e');
         c.same("what was read", x.peek(0, b + 4), 'c');
         c.same("openings", x.count(13), 1);
@@ -200,7 +194,7 @@ public final class ThingsTest {
         x.run(1000);
         c.same("the parent waits for room, or for a reader that goes", x.process(0, 7), 21);
         c.same("the child sleeps", x.process(1, 7), 19);
-        answers("the child reads still", x, 0, 512, 0, 1, 1, 0);
+        c.answers("the child reads still", x, 0, 0, 512, 0, 1, 1, 0);
     }
 
     private static void pipesFull() {
@@ -221,11 +215,11 @@ public final class ThingsTest {
         x.outside(3, 5, 0);
         x.run(1000);
         c.same("there was room", x.process(0, 7), 7);
-        answers("answers", x, 0, 500, 13, 0, 0);
+        c.answers("answers", x, 0, 0, 500, 13, 0, 0);
         c.same("bytes", x.descriptor(0, 3, 2), 512);
         x.outside(3, 5, 0);
         x.run(1000);
-        answers("answers", x, 0, 500, 13, BROKEN, BROKEN);
+        c.answers("answers", x, 0, 0, 500, 13, BROKEN, BROKEN);
         c.same("the child has ended", x.process(1, 0), 3);
     }
 
@@ -249,7 +243,7 @@ public final class ThingsTest {
         s.kept(Script.WRITE, 2, "m", 0);
         TimeMachine x = s.stay().booted(c);
         x.run(8);
-        answers("missing", x, 0, MISSING);
+        c.answers("missing", x, 0, 0, MISSING);
         c.same("files", x.count(12), 0);
         x.run(8);
         c.same("files", x.count(12), 1);
@@ -260,7 +254,7 @@ public final class ThingsTest {
         c.same("bytes", x.descriptor(0, 2, 2), 6);
         c.same("held", Checks.held(x, 0, 2), "abcdef");
         x.run(1000);
-        answers("answers", x, 0, MISSING, 2, 6, 0, 1, 3, 0, 8, 0, 2, 510, ROOM, 2, ROOM, 0);
+        c.answers("answers", x, 0, 0, MISSING, 2, 6, 0, 1, 3, 0, 8, 0, 2, 510, ROOM, 2, ROOM, 0);
         c.same("bytes", x.descriptor(0, 2, 2), 512);
         c.same("position", x.descriptor(0, 2, 3), 512);
         c.same("0 between", x.held(0, 2, 7), 0);
@@ -296,7 +290,7 @@ public final class ThingsTest {
         for (int i = 0; i < wrong.length; i++) {
             c.same("how " + wrong[i], Script.answer(x, 0, i), INVALID);
         }
-        answers("answers", x, wrong.length, 2, THERE, 3, BAD, 3, BAD, 3, 4, 0, 1, 0, 4, 5);
+        c.answers("answers", x, 0, wrong.length, 2, THERE, 3, BAD, 3, BAD, 3, 4, 0, 1, 0, 4, 5);
         c.same("rights", x.descriptor(0, 2, 4), 2);
         c.same("rights", x.descriptor(0, 3, 4), 1);
         c.same("rights", x.descriptor(0, 5, 4), 7);
@@ -330,7 +324,7 @@ public final class ThingsTest {
         s.kept(Script.UNLINK, 4096);
         TimeMachine x = s.stay().booted(c);
         x.run(1000);
-        answers("answers", x, 0, INVALID, INVALID, 2, INVALID, INVALID, 3, INVALID, ADDRESS, INVALID, ADDRESS, ADDRESS,
+        c.answers("answers", x, 0, 0, INVALID, INVALID, 2, INVALID, INVALID, 3, INVALID, ADDRESS, INVALID, ADDRESS, ADDRESS,
                 INVALID, 4, INVALID, ADDRESS, INVALID, ADDRESS);
     }
 
@@ -356,7 +350,7 @@ public final class ThingsTest {
         s.kept(Script.SEEK, -1, 0, 0);
         TimeMachine x = s.stay().booted(c);
         x.run(1000);
-        answers("answers", x, 0, 6, 4, BAD, 8, BAD, 512, BAD, BAD, BAD, INVALID, INVALID, INVALID, BAD, BAD, BAD, BAD);
+        c.answers("answers", x, 0, 0, 6, 4, BAD, 8, BAD, 512, BAD, BAD, BAD, INVALID, INVALID, INVALID, BAD, BAD, BAD, BAD);
         c.same("position", x.descriptor(0, 2, 3), 512);
     }
 
@@ -376,7 +370,7 @@ public final class ThingsTest {
         s.kept(Script.SEEK, 2, 0, 1);
         TimeMachine x = s.stay().booted(c);
         x.run(1000);
-        answers("answers", x, 0, 2, 3, 2, 3, 0, 1, ROOM, 0, 1, 507, 512);
+        c.answers("answers", x, 0, 0, 2, 3, 2, 3, 0, 1, ROOM, 0, 1, 507, 512);
         c.same("bytes", Checks.held(x, 0, 3).substring(0, 5), "ababc");
     }
 
@@ -398,7 +392,7 @@ public final class ThingsTest {
         s.kept(Script.DUP, 16, 1);
         TimeMachine x = s.stay().booted(c);
         x.run(1000);
-        answers("answers", x, 0, BAD, INVALID, INVALID, 2, 15, 3, 0, 3, 2, 2, 3, 0, BAD);
+        c.answers("answers", x, 0, 0, BAD, INVALID, INVALID, 2, 15, 3, 0, 3, 2, 2, 3, 0, BAD);
         c.same("console's users", x.descriptor(0, 1, 1), 4);
         c.same("files", x.count(12), 1);
         c.same("openings", x.count(13), 1);
@@ -419,7 +413,7 @@ public final class ThingsTest {
         s.kept(Script.UNLINK, "n");
         TimeMachine x = s.stay().booted(c);
         x.run(1000);
-        answers("descriptors", x, 0, 0, 0, 0, 0, 0, 0, 0, FULL, FULL, FULL, 0, FULL, 15, 0);
+        c.answers("descriptors", x, 0, 0, 0, 0, 0, 0, 0, 0, 0, FULL, FULL, FULL, 0, FULL, 15, 0);
         c.same("openings", x.count(13), 15);
         filesFull();
         openingsFull();
@@ -464,7 +458,7 @@ public final class ThingsTest {
         s.kept(Script.READ, 3, "b", 8);
         TimeMachine x = s.stay().booted(c);
         x.run(1000);
-        answers("answers", x, 0, MISSING, 2, 6, 0, MISSING, 0, 6, 3, 0);
+        c.answers("answers", x, 0, 0, MISSING, 2, 6, 0, MISSING, 0, 6, 3, 0);
         c.same("files with names", x.count(12), 1);
         c.same("the one without a name", Checks.held(x, 0, 2), "abcdef");
     }
@@ -488,7 +482,7 @@ public final class ThingsTest {
         s.kept(Script.OPEN, "k", 1);
         TimeMachine x = s.stay().booted(c);
         x.run(1000);
-        answers("answers", x, 0, MISSING, INVALID, ADDRESS, INVALID, ADDRESS, 2, 3, 3, 5, 0, 0, MISSING, 4);
+        c.answers("answers", x, 0, 0, MISSING, INVALID, ADDRESS, INVALID, ADDRESS, 2, 3, 3, 5, 0, 0, MISSING, 4);
         c.same("the renamed one", Checks.held(x, 0, 4), "abc");
         c.same("the one that lost its name", Checks.held(x, 0, 3), "abcde");
         c.same("files with names", x.count(12), 1);
@@ -514,7 +508,7 @@ public final class ThingsTest {
         s.kept(Script.PIPE, 65528);
         TimeMachine x = s.stay().booted(c);
         x.run(1000);
-        answers("answers", x, 0, INVALID, INVALID, ADDRESS, BAD, ADDRESS, 512, INVALID, 1, ADDRESS, ADDRESS, BAD, INVALID,
+        c.answers("answers", x, 0, 0, INVALID, INVALID, ADDRESS, BAD, ADDRESS, 512, INVALID, 1, ADDRESS, ADDRESS, BAD, INVALID,
                 ADDRESS, ADDRESS, 0);
         c.same("shown", x.count(8), 513);
         c.same("the pipe's words", Checks.word(x, 0, 65528), 2);
