@@ -122,6 +122,14 @@ final class Checks {
         return row;
     }
 
+    /** Runs till the current process is at a place. */
+    void runTo(TimeMachine x, int place) {
+        watch(x, 7, "pc == " + place + " && pid >= 0");
+        x.run(60000);
+        same("it comes to its place", x.reason(), 3 + 8 * 7);
+        x.drop(7);
+    }
+
     static byte[] bytes(int... values) {
         byte[] row = new byte[values.length];
         for (int i = 0; i < row.length; i++) {

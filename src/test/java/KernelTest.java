@@ -1,6 +1,7 @@
 /** Booting, processes, ticks, signals and the calls that are not of open things: promises 10, 12, 22 to 24 and 29. */
 public final class KernelTest {
     private static final Checks c = new Checks();
+    private static final Crowd crowd = new Crowd(c);
     private static final int INVALID = -22;
     private static final int MISSING = -2;
     private static final int FULL = -4;
@@ -579,40 +580,23 @@ public final class KernelTest {
         c.same("the bytes are still there", x.descriptor(0, 2, 2), 8);
     }
 
-    /** The code of a child that writes so many of seven frames that are free, and then makes a call. */
-    private static int codeWithFrames(int taken, int number, Object... arguments) {
-        Script s = new Script().data(".align 2").data("p: .word 0, 0").data(".space 988").data("b: .space 1000");
-        s.call(Script.PIPE, "p").call(Script.WRITE, 3, "p", 8);
-        s.call(Script.GROW, 60416).add("li s4, 4\n1: ").call(Script.FORK).add("beqz a0, 2f\naddi s4, s4, -1\nbnez s4, 1b");
-        s.call(Script.WAIT).add("srli s5, a0, 8").stay();
-        s.add("2: li t3, 1\nbeq s4, t3, 5f");
-        s.add("li t0, 1024\nli t2, 60416\n3: sb t0, 0(t0)\naddi t0, t0, 1024\nbne t0, t2, 3b");
-        s.add("li t0, 61440\nli t2, 65536\n4: sb t0, 0(t0)\naddi t0, t0, 1024\nbne t0, t2, 4b").stay();
-        s.add("5: li t0, 8192\nli t2, " + (8192 + 1024 * taken) + "\nj 7f\n6: sb t0, 0(t0)\naddi t0, t0, 1024\n7: bne t0, t2, 6b");
-        s.call(number, arguments).add("li a7, 0\necall");
-        TimeMachine x = s.booted(c);
-        x.run(60000);
-        c.same("the parent stays", x.process(0, 7), 21);
-        return x.register(0, 21);
-    }
-
     private static void lastFrames() {
         c.about("the last frames that are free");
-        c.same("READ to one page, the last frame", codeWithFrames(6, Script.READ, 2, "b", 8), 8);
-        c.same("READ to one page, none", codeWithFrames(7, Script.READ, 2, "b", 8), 128 + 7);
-        c.same("READ to two pages, two frames", codeWithFrames(5, Script.READ, 2, 2044, 8), 8);
-        c.same("READ to two pages, one frame", codeWithFrames(6, Script.READ, 2, 2044, 8), 128 + 7);
-        c.same("of the bytes that come", codeWithFrames(6, Script.READ, 2, 2040, 512), 8);
-        c.same("READ to two pages, one is its own", codeWithFrames(6, Script.READ, 2, 8188, 8), 8);
-        c.same("READ to a page of its own", codeWithFrames(7, Script.READ, 2, 8192, 8), 8);
-        c.same("PIPE, the last frame", codeWithFrames(6, Script.PIPE, "b"), 0);
-        c.same("PIPE, none", codeWithFrames(7, Script.PIPE, "b"), 128 + 7);
-        c.same("PIPE to two pages, two frames", codeWithFrames(5, Script.PIPE, 2044), 0);
-        c.same("PIPE to two pages, one frame", codeWithFrames(6, Script.PIPE, 2044), 128 + 7);
-        c.same("WRITE needs none", codeWithFrames(7, Script.WRITE, 1, "b", 5), 5);
-        c.same("GROW, smaller", codeWithFrames(7, Script.GROW, 60000), 60416 & 255);
-        c.same("FORK needs none", codeWithFrames(7, Script.FORK), 5);
-        c.same("EXEC", codeWithFrames(7, Script.EXEC, 0), -4 & 255);
+        c.same("READ to one page, the last frame", crowd.code(6, Script.READ, 2, "b", 8), 8);
+        c.same("READ to one page, none", crowd.code(7, Script.READ, 2, "b", 8), 128 + 7);
+        c.same("READ to two pages, two frames", crowd.code(5, Script.READ, 2, 2044, 8), 8);
+        c.same("READ to two pages, one frame", crowd.code(6, Script.READ, 2, 2044, 8), 128 + 7);
+        c.same("of the bytes that come", crowd.code(6, Script.READ, 2, 2040, 512), 8);
+        c.same("READ to two pages, one is its own", crowd.code(6, Script.READ, 2, 8188, 8), 8);
+        c.same("READ to a page of its own", crowd.code(7, Script.READ, 2, 8192, 8), 8);
+        c.same("PIPE, the last frame", crowd.code(6, Script.PIPE, "b"), 0);
+        c.same("PIPE, none", crowd.code(7, Script.PIPE, "b"), 128 + 7);
+        c.same("PIPE to two pages, two frames", crowd.code(5, Script.PIPE, 2044), 0);
+        c.same("PIPE to two pages, one frame", crowd.code(6, Script.PIPE, 2044), 128 + 7);
+        c.same("WRITE needs none", crowd.code(7, Script.WRITE, 1, "b", 5), 5);
+        c.same("GROW, smaller", crowd.code(7, Script.GROW, 60000), 60416 & 255);
+        c.same("FORK needs none", crowd.code(7, Script.FORK), 5);
+        c.same("EXEC", crowd.code(7, Script.EXEC, 0), -4 & 255);
     }
 
     private static void manyProcesses() {

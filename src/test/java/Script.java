@@ -67,6 +67,11 @@ final class Script {
         return c.booted(source());
     }
 
+    /** The lines so far, without the data. */
+    String lines() {
+        return text.toString();
+    }
+
     String source() {
         return text + "\n.data\nanswers: .space " + 4 * Math.max(1, answers) + "\n" + data;
     }

@@ -24,10 +24,15 @@ final class Steps {
         gives("li a0, " + a + "\nli a1, " + b + "\n" + op + " a2, a0, a1", due);
     }
 
-    /** A child carries out the lines; its parent tells the signal by which it ended, 0 for none. */
+    /** A child carries out the lines, and then ends; its parent tells the signal by which it ended, 0 for none. */
     int signal(String lines) {
+        return lastSignal(lines + "\nli a7, 0\nli a0, 0\necall", "d: .word 1");
+    }
+
+    /** Likewise, with nothing of the text behind the lines. */
+    int lastSignal(String lines, String data) {
         TimeMachine x = c.booted("li a7, 1\necall\nbeqz a0, 1f\nli a7, 3\necall\nmv s0, a0\nli a7, 21\necall\n1: " + lines
-                + "\nli a7, 0\nli a0, 0\necall\n.data\nd: .word 1\n");
+                + "\n.data\n" + data);
         x.run(2000);
         c.same("the parent waits for a random word", x.process(0, 7), 21);
         int code = x.register(0, 8) >> 8;
