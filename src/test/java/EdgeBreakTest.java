@@ -286,6 +286,10 @@ public final class EdgeBreakTest {
         is("3 == 1 | 2", 1);
         is("4 | 1 ^ 1", 4);
         is("1 ^ 1 | 4", 4);
+        is("1 | 1 ^ 1", 1);
+        is("1 ^ 1 | 1", 1);
+        is("1 ^ 1 & 2", 1);
+        is("2 & 1 ^ 1", 1);
         is("1 ^ 3 & 2", 3);
         is("2 & 3 ^ 1", 3);
         is("3 & 1 << 1", 2);
@@ -307,7 +311,11 @@ public final class EdgeBreakTest {
         is("10 - 4 + 3", 9);
         is("100 / 10 / 5", 2);
         is("100 / 10 * 5", 50);
+        is("7 * 3 / 2", 10);
+        is("7 / 2 * 3", 9);
         is("7 * 7 % 10", 9);
+        is("17 % 10 / 2", 3);
+        is("100 / 7 % 4", 2);
         is("1 << 2 << 3", 32);
         is("256 >> 4 << 1", 32);
         is("3 > 2 > 1", 0);
@@ -690,6 +698,7 @@ public final class EdgeBreakTest {
             c.same("watch(" + k + ")", Checks.watch(x, k, "old(count) + " + k + " == 8"), 0);
         }
         c.same("breaks", x.count(16), 8);
+        c.same("a fault, with all there", Checks.watch(x, 3, "old(count) * 7 + foo"), 2 + 8 * 17);
         for (int k = 7; k >= 0; k--) {
             c.same("run", x.run(100), k == 7 ? 2 : 1);
             c.same("reason", x.reason(), 3 + 8 * k);

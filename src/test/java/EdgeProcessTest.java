@@ -43,6 +43,7 @@ public final class EdgeProcessTest {
         execNumbers();
         execFrames();
         waits();
+        selves();
         heapBounds();
         heapPages();
         heapFrames();
@@ -55,6 +56,7 @@ public final class EdgeProcessTest {
         clocks();
         randoms();
         noFrames();
+        framesLast();
         wrongBoots();
         boots();
         registers();
@@ -754,6 +756,16 @@ public final class EdgeProcessTest {
         c.same("processes", x.count(11), 1);
     }
 
+    private static void selves() {
+        c.sentence("calls", "4 SELF: its number.");
+        TimeMachine x = c.booted(MANY.replace("2: j 2b", "li a7, 4\necall\nli a7, 21\necall"));
+        x.run(1000);
+        for (int p = 0; p < 16; p++) {
+            c.same("process " + p + " waits", x.process(p, 7), 21);
+            c.same("its number", x.register(p, 10), p);
+        }
+    }
+
     private static void heapBounds() {
         c.sentence("calls", "if this is not below its beginning nor above 61440 - 1024 (else INVALID)");
         Script s = new Script();
@@ -992,6 +1004,24 @@ public final class EdgeProcessTest {
         c.same("nothing else is done", crowd.code(7, handled + "li a0, 16384\nli a7, 5\necall" + dup), 4);
     }
 
+    private static void framesLast() {
+        c.sentence("calls", "(of READ the bytes that come), which are asked for when nothing else is wrong");
+        String end = "\nli a7, 0\necall";
+        String read = "li a7, 6\nli a2, ";
+        c.same("READ of eight that come, to one page", crowd.code(6, "li a0, 2\nli a1, 16376\n" + read + "512\necall" + end), 8);
+        c.same("READ of eight that come, to two pages", crowd.code(6, "li a0, 2\nli a1, 16380\n" + read + "8\necall" + end), 128 + 7);
+        c.same("READ of four, to the first of these", crowd.code(6, "li a0, 2\nli a1, 16380\n" + read + "4\necall" + end), 4);
+        c.same("BAD first", crowd.code(7, "li a0, 9\nli a1, 16384\n" + read + "8\necall" + end), -1 & 255);
+        c.same("ADDRESS first", crowd.code(7, "li a0, 2\nli a1, 0\n" + read + "8\necall" + end), -14 & 255);
+        c.same("INVALID first", crowd.code(7, "li a0, 2\nli a1, 16384\n" + read + "513\necall" + end), INVALID & 255);
+        c.same("a wrong place of PIPE first", crowd.code(7, "li a0, 16386\nli a7, 5\necall" + end), INVALID & 255);
+        String fill = "li s6, 12\n8: li a0, 0\nli a1, -1\nli a7, 9\necall\naddi s6, s6, -1\nbnez s6, 8b\n";
+        c.same("FULL first", crowd.code(7, fill + "li a0, 16384\nli a7, 5\necall" + end), FULL & 255);
+        c.same("PIPE over two pages, the second its own", crowd.code(6, "li a0, 8188\nli a7, 5\necall" + end), 0);
+        c.same("PIPE over two pages, with one frame", crowd.code(6, "li a0, 16380\nli a7, 5\necall" + end), 128 + 7);
+        c.same("PIPE over two pages, with two", crowd.code(5, "li a0, 16380\nli a7, 5\necall" + end), 0);
+    }
+
     private static void wrongBoots() {
         c.sentence("promise 10", "IllegalArgumentException when p is not 0 .. 3; else IllegalStateException when it is not assembled.");
         TimeMachine x = new TimeMachine();
@@ -1056,6 +1086,11 @@ public final class EdgeProcessTest {
         c.same("x17", x.register(1, 17), 0);
         c.same("the place", x.register(1, 32), 0);
         c.same("nothing booted", new TimeMachine().register(0, 2), 0);
+        TimeMachine all = c.booted(MANY);
+        all.run(200);
+        c.same("the last process's x2", all.register(15, 2), 65536);
+        c.same("behind its last register", all.register(15, 33), 0);
+        c.same("before its first", all.register(15, -1), 0);
     }
 
     private static void told() {

@@ -413,6 +413,33 @@ public final class EdgeProgramTest {
         y.go(0);
         y.run(100);
         c.same("one that there was not then", y.register(0, 8), -2);
+        allAnew();
+    }
+
+    /** All four that the booted machine has are other ones now, and one more has a fault. */
+    private static void allAnew() {
+        TimeMachine x = new TimeMachine();
+        for (int p = 0; p < 4; p++) {
+            Checks.assemble(x, p, "li s1, " + (10 + p) + "\nli a0, " + (p + 1) + "\nli a7, 2\necall");
+        }
+        x.boot(0);
+        for (int p = 0; p < 4; p++) {
+            Checks.assemble(x, p, "li s1, " + (20 + p) + "\nli a0, " + (p + 1) + "\nli a7, 2\necall\n.data\n.byte " + p);
+        }
+        c.same("a fault", Checks.assemble(x, 2, ".byte 1, 2, 3, 4, 5, 6, 7, 8\n.byte foo"), 8 + 16 * 2);
+        for (int p = 0; p < 4; p++) {
+            c.same("what is assembled", x.image(p, 1024), p);
+            x.run(1);
+            c.same("what was booted", x.register(0, 9), 10 + p);
+            x.run(3);
+        }
+        c.same("there is no program 4", x.register(0, 10), -2);
+        x.boot(0);
+        for (int p = 0; p < 4; p++) {
+            x.run(1);
+            c.same("booted anew", x.register(0, 9), 20 + p);
+            x.run(3);
+        }
     }
 
     private static void wrongPrograms() {

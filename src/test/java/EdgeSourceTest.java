@@ -368,6 +368,10 @@ public final class EdgeSourceTest {
         t.word("7 & 8 >> 1", 4);
         t.word("1 ^ 3 & 2", 3);
         t.word("1 | 3 ^ 2", 1);
+        t.word("1 | 1 ^ 1", 1);
+        t.word("1 ^ 1 | 1", 1);
+        t.word("1 ^ 1 & 2", 1);
+        t.word("2 & 1 ^ 1", 1);
         t.word("6 | 1 & 6", 6);
         t.word("2 * 3 + 4", 10);
         t.word("1 + 1 << 1", 4);
@@ -385,7 +389,11 @@ public final class EdgeSourceTest {
         t.word("10 - 4 + 3", 9);
         t.word("100 / 10 / 5", 2);
         t.word("100 / 10 * 5", 50);
+        t.word("7 * 3 / 2", 10);
+        t.word("7 / 2 * 3", 9);
         t.word("7 * 7 % 10", 9);
+        t.word("17 % 10 / 2", 3);
+        t.word("100 / 7 % 4", 2);
         t.word("7 % 4 * 3", 9);
         t.word("1 << 2 << 3", 32);
         t.word("256 >> 2 >> 1", 32);
