@@ -20,6 +20,7 @@ public final class EdgeBreakTest {
         longestSigns();
         ranks();
         sameRank();
+        allPairs();
         signsBefore();
         registers();
         bytes();
@@ -325,6 +326,18 @@ public final class EdgeBreakTest {
         is("1 <= 0 >= 0", 1);
         is("0 || 0 || 3", 1);
         is("1 && 1 && 0", 0);
+    }
+
+    private static void allPairs() {
+        c.sentence("a condition", "from those that bind least on");
+        Ranks all = new Ranks(true, "* / %", "+ -", "<< >>", "&", "^", "|", "== != < <= > >=", "&&", "||");
+        TimeMachine x = machine();
+        for (int i = 0; i < all.texts.size(); i++) {
+            if (i % 80 == 79) {
+                x = machine();
+            }
+            is(x, all.texts.get(i), all.due.get(i));
+        }
     }
 
     private static void signsBefore() {

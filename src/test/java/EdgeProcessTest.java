@@ -275,6 +275,13 @@ public final class EdgeProcessTest {
         c.same("it is as at first", TimeSeen.of(x).equals(first) ? 1 : 0, 1);
         x.run(100);
         c.same("the same bytes are shown", Checks.shown(x), "f\0");
+        TimeMachine y = c.booted("li a7, 21\necall\nli a7, 0\necall");
+        y.run(9);
+        c.same("one waits", y.reason(), 1);
+        y.boot(0);
+        y.outside(4, 1, 0);
+        y.run(9);
+        c.same("none that waited before is left", y.reason(), 2);
     }
 
     private static void ticks() {
@@ -626,6 +633,12 @@ public final class EdgeProcessTest {
         c.same("heap", x.process(1, 6), 5000);
         c.same("pages", x.process(1, 5), x.process(0, 5));
         c.same("descriptors", x.descriptor(1, 0, 1), 4);
+        Script h = new Script().call(Script.GROW, 5000).call(Script.FORK);
+        h.kept(Script.GROW, 2047);
+        h.kept(Script.GROW, 2048);
+        TimeMachine heap = h.stay().booted(c);
+        heap.run(100);
+        c.answers("where the child's heap begins and ended", heap, 1, 0, INVALID, 5000);
         x.outside(0, 1, 0);
         x.run(3);
         c.same("what was saved", x.register(1, 8), 40);

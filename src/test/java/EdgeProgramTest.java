@@ -237,6 +237,7 @@ public final class EdgeProgramTest {
         c.same("none grows", t.size(chain.toString()), 200 + 1846 + 200);
         String pushed = chain.toString().replace("l99: c.nop", "c.nop\nl99: c.nop");
         c.same("all grow", t.size(pushed), 400 + 1846 + 202);
+        c.same("two steps of one alone", t.size("beqz a0, . + 5000"), 8);
         c.same("two steps of one", t.size("beqz a0, a\n" + zeros(4090) + "j b\na:\n" + zeros(2046) + "b:"), 8 + 4090 + 4 + 2046);
     }
 

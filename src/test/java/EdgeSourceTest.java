@@ -32,6 +32,7 @@ public final class EdgeSourceTest {
         halves();
         ranks();
         sameRank();
+        allPairs();
         wrapAround();
         quotients();
         shifts();
@@ -399,6 +400,20 @@ public final class EdgeSourceTest {
         t.word("256 >> 2 >> 1", 32);
         t.word("256 >> 4 << 2", 64);
         t.word("1 << 4 >> 2", 4);
+    }
+
+    private static void allPairs() {
+        c.sentence("expressions", "from those that are done first to the last");
+        Ranks all = new Ranks(false, "* / %", "+ -", "<< >>", "&", "^", "|");
+        StringBuilder text = new StringBuilder();
+        for (String e : all.texts) {
+            text.append(".word ").append(e).append('\n');
+        }
+        TimeMachine x = t.fine(text.toString());
+        for (int i = 0; i < all.texts.size(); i++) {
+            int got = x.image(0, 4 * i) | x.image(0, 4 * i + 1) << 8 | x.image(0, 4 * i + 2) << 16 | x.image(0, 4 * i + 3) << 24;
+            c.same(all.texts.get(i), got, all.due.get(i));
+        }
     }
 
     private static void wrapAround() {

@@ -1,0 +1,153 @@
+import java.util.Random;
+
+/** What an object was used for before makes no difference: programs, breaks and machines that come in place of others. */
+public final class AgainTest {
+    private static final Checks c = new Checks();
+    private static final String[] TEXTS = {"a: .equ k, 1\n.equ l, 2\n1: addi a0, a0, k\nj 1b\n.data\nb: .byte l, 1f - 1b\n1:", "jalr a1\nnop\nret",
+        "foo", ".byte 1f\n1: .byte 1b, 1f\n.asciz \"abc\"\n1:", "1: j 1f\n.space 3000\n1: beqz a0, 1b\n.equ k, 7", "", ".data\nd: .word d, e\n.text\ne: la a0, d",
+        "addi a0, a0, k", ".space 32768\nnop", "j a\n.align 4\na: lw a0, a(a1)\n.ascii \"x\", \"y\"", "li a0, 5\nc.nop\nl: k: j l", "1:1:1: .half 1b\n.word 1 / 0",
+        ".byte k\n.equ k, 3\nb: a:", "x0:", "bnez s0, . + 2000\nbeq a0, a1, . + 5000\ncall . - 8\n0:"};
+    /** Four processes that reserve words, sleep, yield and wait, with a handler that sleeps, too. */
+    private static final String BUSY = "li a7, 17\nli a0, 3\nla a1, h\necall\nli a7, 1\necall\necall\n1: la s0, w\nlr.w t0, (s0)\naddi t0, t0, 1\n"
+            + "sc.w t1, t0, (s0)\nsw t1, 4(s0)\nli a7, 19\nli a0, 2\necall\nlr.w t0, (s0)\nli a7, 15\necall\nsc.w t1, t0, (s0)\nadd s2, s2, t1\nlr.w t0, (s0)\n"
+            + "addi s1, s1, 1\nsc.w t1, t0, (s0)\nadd s2, s2, t1\nli a7, 21\necall\nsw a0, 12(s0)\nj 1b\n"
+            + "h: la t0, w\nlw t1, 16(t0)\naddi t1, t1, 1\nsw t1, 16(t0)\nli a7, 19\nli a0, 1\necall\nli a7, 18\necall\n.data\nw: .word 0, 0, 0, 0, 0";
+
+    public static void main(String[] args) {
+        programs();
+        breaks();
+        boots();
+        branches();
+        c.finish();
+    }
+
+    private static String told(TimeMachine x, int p) {
+        StringBuilder out = new StringBuilder(Checks.image(x, p));
+        for (int what = 0; what <= 4; what++) {
+            out.append(' ').append(x.program(p, what));
+        }
+        for (int k = 0; x.label(p, k) >= 0; k++) {
+            out.append(" l").append(x.label(p, k));
+        }
+        for (int k = 0; k < Math.min(40, x.program(p, 2)); k++) {
+            out.append(" n").append(x.line(p, k));
+        }
+        return out.toString();
+    }
+
+    private static void programs() {
+        c.about("a text behind others");
+        for (int seed = 0; seed < 30; seed++) {
+            Random random = new Random(seed);
+            TimeMachine x = new TimeMachine();
+            for (int i = 0; i < 12; i++) {
+                String text = TEXTS[random.nextInt(TEXTS.length)];
+                int p = random.nextInt(4);
+                String was = told(x, p);
+                TimeMachine fresh = new TimeMachine();
+                int fault = Checks.assemble(fresh, p, text);
+                c.same("fault of <" + text + ">", Checks.assemble(x, p, text), fault);
+                c.same("what is told of <" + text + ">", told(x, p), fault == 0 ? told(fresh, p) : was);
+                if (random.nextInt(4) == 0 && x.program(p, 0) >= 0) {
+                    x.boot(p);
+                }
+            }
+        }
+    }
+
+    private static void breaks() {
+        c.about("a condition behind others");
+        TimeMachine x = c.booted("1: addi s0, s0, 3\nj 1b");
+        x.run(7);
+        for (int i = 0; i < 60; i++) {
+            Checks.watch(x, i % 3, "old(count) * " + i + " + changed(x8) + old(x8)");
+            c.same("value", x.value(i % 3), 6L * i + 1 + 9);
+            Checks.watch(x, i % 3, "old(1 + (2 || changed(x1");
+            c.same("value", x.value(i % 3), 6L * i + 1 + 9);
+        }
+    }
+
+    /** Something comes from outside, or some ticks are made. */
+    private static void act(TimeMachine x, Random random) {
+        int it = random.nextInt(16);
+        if (it < 8) {
+            x.run(random.nextInt(12));
+        } else if (it < 10) {
+            x.outside(0, random.nextInt(4), 0);
+        } else if (it < 12) {
+            x.outside(3, random.nextInt(4), 0);
+        } else if (it < 14) {
+            x.outside(4, random.nextInt(100), 0);
+        } else if (it == 14) {
+            x.outside(2, random.nextInt(4), 3);
+        } else {
+            x.outside(1, random.nextInt(1000), 2);
+        }
+    }
+
+    private static void bothAct(TimeMachine x, TimeMachine y, int seed, int times) {
+        Random one = new Random(5000 + seed);
+        Random other = new Random(5000 + seed);
+        for (int i = 0; i < times; i++) {
+            act(x, one);
+            act(y, other);
+        }
+    }
+
+    private static void boots() {
+        c.about("a machine behind others");
+        for (int seed = 0; seed < 20; seed++) {
+            TimeMachine x = c.booted(BUSY);
+            Random before = new Random(1000 + seed);
+            for (int i = 0; i < 30 * seed; i++) {
+                act(x, before);
+            }
+            x.go((int) x.count(1) / 2);
+            x.boot(0);
+            TimeMachine fresh = c.booted(BUSY);
+            bothAct(x, fresh, seed, 200);
+            same("at last", x, fresh);
+            x.go((int) x.count(1) / 3);
+            fresh.go((int) fresh.count(1) / 3);
+            same("before", x, fresh);
+        }
+    }
+
+    private static void same(String what, TimeMachine x, TimeMachine y) {
+        c.same(what + ": END", x.count(1), y.count(1));
+        c.same(what + ": what is seen", TimeSeen.of(x).equals(TimeSeen.of(y)) ? 1 : 0, 1);
+        x.pack();
+        y.pack();
+        c.same(what + ": the recording", Checks.log(x), Checks.log(y));
+        c.same(what + ": why the latest run stopped", x.reason(), y.reason());
+    }
+
+    /** What comes behind a cut is the same as in a machine that was never beyond it. */
+    private static void branches() {
+        c.about("behind a cut");
+        for (int seed = 0; seed < 150; seed++) {
+            Random random = new Random(seed);
+            TimeMachine x = c.booted(BUSY);
+            for (int i = 0; i < 300 + seed; i++) {
+                act(x, random);
+            }
+            int end = (int) x.count(1);
+            int near = 256 * (1 + random.nextInt(3)) + random.nextInt(3) - 1;
+            int at = seed % 2 == 0 && near <= end ? near : random.nextInt(end + 1);
+            x.go(at);
+            c.same("cut", x.cut(), end - at);
+            TimeMachine y = c.booted(BUSY);
+            Checks.feed(y, Checks.logOf(x));
+            c.same("replay", y.replay(0), x.count(3));
+            c.same("run", y.run(at), at);
+            x.run(0);
+            y.run(0);
+            same("where it was cut", x, y);
+            bothAct(x, y, seed, 80);
+            same("behind", x, y);
+            x.go(at / 2);
+            y.go(at / 2);
+            same("before", x, y);
+        }
+    }
+}
