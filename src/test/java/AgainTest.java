@@ -1,17 +1,23 @@
 import java.util.Random;
 
-/** What an object was used for before makes no difference: programs, breaks and machines that come in place of others. */
+/** What an object was used for before makes no difference to programs, breaks and machines that come then. */
 public final class AgainTest {
     private static final Checks c = new Checks();
-    private static final String[] TEXTS = {"a: .equ k, 1\n.equ l, 2\n1: addi a0, a0, k\nj 1b\n.data\nb: .byte l, 1f - 1b\n1:", "jalr a1\nnop\nret",
-        "foo", ".byte 1f\n1: .byte 1b, 1f\n.asciz \"abc\"\n1:", "1: j 1f\n.space 3000\n1: beqz a0, 1b\n.equ k, 7", "", ".data\nd: .word d, e\n.text\ne: la a0, d",
-        "addi a0, a0, k", ".space 32768\nnop", "j a\n.align 4\na: lw a0, a(a1)\n.ascii \"x\", \"y\"", "li a0, 5\nc.nop\nl: k: j l", "1:1:1: .half 1b\n.word 1 / 0",
+    private static final String[] TEXTS = {"a: .equ k, 1\n.equ l, 2\n1: addi a0, a0, k\nj 1b\n.data\n"
+        + "b: .byte l, 1f - 1b\n1:", "jalr a1\nnop\nret",
+        "foo", ".byte 1f\n1: .byte 1b, 1f\n.asciz \"abc\"\n1:", "1: j 1f\n.space 3000\n1: beqz a0, 1b\n.equ k, 7", "",
+        ".data\nd: .word d, e\n.text\ne: la a0, d",
+        "addi a0, a0, k", ".space 32768\nnop", "j a\n.align 4\na: lw a0, a(a1)\n.ascii \"x\", \"y\"",
+        "li a0, 5\nc.nop\nl: k: j l", "1:1:1: .half 1b\n.word 1 / 0",
         ".byte k\n.equ k, 3\nb: a:", "x0:", "bnez s0, . + 2000\nbeq a0, a1, . + 5000\ncall . - 8\n0:"};
     /** Four processes that reserve words, sleep, yield and wait, with a handler that sleeps, too. */
-    private static final String BUSY = "li a7, 17\nli a0, 3\nla a1, h\necall\nli a7, 1\necall\necall\n1: la s0, w\nlr.w t0, (s0)\naddi t0, t0, 1\n"
-            + "sc.w t1, t0, (s0)\nsw t1, 4(s0)\nli a7, 19\nli a0, 2\necall\nlr.w t0, (s0)\nli a7, 15\necall\nsc.w t1, t0, (s0)\nadd s2, s2, t1\nlr.w t0, (s0)\n"
+    private static final String BUSY = "li a7, 17\nli a0, 3\nla a1, h\necall\nli a7, 1\necall\necall\n1: la s0, w\n"
+            + "lr.w t0, (s0)\naddi t0, t0, 1\n"
+            + "sc.w t1, t0, (s0)\nsw t1, 4(s0)\nli a7, 19\nli a0, 2\necall\nlr.w t0, (s0)\nli a7, 15\necall\n"
+            + "sc.w t1, t0, (s0)\nadd s2, s2, t1\nlr.w t0, (s0)\n"
             + "addi s1, s1, 1\nsc.w t1, t0, (s0)\nadd s2, s2, t1\nli a7, 21\necall\nsw a0, 12(s0)\nj 1b\n"
-            + "h: la t0, w\nlw t1, 16(t0)\naddi t1, t1, 1\nsw t1, 16(t0)\nli a7, 19\nli a0, 1\necall\nli a7, 18\necall\n.data\nw: .word 0, 0, 0, 0, 0";
+            + "h: la t0, w\nlw t1, 16(t0)\naddi t1, t1, 1\nsw t1, 16(t0)\nli a7, 19\nli a0, 1\necall\nli a7, 18\n"
+            + "ecall\n.data\nw: .word 0, 0, 0, 0, 0";
 
     public static void main(String[] args) {
         programs();

@@ -18,12 +18,14 @@ final class Crowd {
         // 0 has 63 pages, and so have three children, all of them but the text's being their own: 63 + 3 * 62 frames.
         Script s = new Script().data(".align 2").data("p: .word 0, 0").data(".space 988").data("b: .space 1000");
         s.call(Script.PIPE, "p").call(Script.WRITE, 3, "p", 8);
-        s.call(Script.GROW, 60416).add("li s4, 4\n1: ").call(Script.FORK).add("beqz a0, 2f\naddi s4, s4, -1\nbnez s4, 1b");
+        s.call(Script.GROW, 60416).add("li s4, 4\n1: ").call(Script.FORK)
+                .add("beqz a0, 2f\naddi s4, s4, -1\nbnez s4, 1b");
         s.call(Script.WAIT).add("srli s5, a0, 8").stay();
         s.add("2: li t3, 1\nbeq s4, t3, 5f");
         s.add("li t0, 1024\nli t2, 60416\n3: sb t0, 0(t0)\naddi t0, t0, 1024\nbne t0, t2, 3b");
         s.add("li t0, 61440\nli t2, 65536\n4: sb t0, 0(t0)\naddi t0, t0, 1024\nbne t0, t2, 4b").stay();
-        s.add("5: li t0, 8192\nli t2, " + (8192 + 1024 * taken) + "\nj 7f\n6: sb t0, 0(t0)\naddi t0, t0, 1024\n7: bne t0, t2, 6b");
+        s.add("5: li t0, 8192\nli t2, " + (8192 + 1024 * taken) + "\nj 7f\n6: sb t0, 0(t0)\naddi t0, t0, 1024\n"
+                + "7: bne t0, t2, 6b");
         s.add(lines);
         TimeMachine x = new TimeMachine();
         c.same("fault of a crowd", Checks.assemble(x, 0, s.source()), 0);

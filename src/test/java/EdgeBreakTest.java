@@ -3,7 +3,8 @@ public final class EdgeBreakTest {
     private static final Checks c = new Checks();
     private static final long LEAST = Long.MIN_VALUE;
     private static final long MOST = Long.MAX_VALUE;
-    private static final String PROGRAM = "li s0, -1\nli s1, 0x80000000\nli t6, 31\nli sp, 61444\nla t0, w\n1: lw t1, 0(t0)\naddi t1, t1, 1\n"
+    private static final String PROGRAM = "li s0, -1\nli s1, 0x80000000\nli t6, 31\nli sp, 61444\nla t0, w\n"
+            + "1: lw t1, 0(t0)\naddi t1, t1, 1\n"
             + "sw t1, 0(t0)\nj 1b\n.data\nw: .word 7, 0x80ff8102, 0x7fffffff";
 
     public static void main(String[] args) {
@@ -117,8 +118,8 @@ public final class EdgeBreakTest {
     }
 
     private static void current() {
-        c.sentence("breaks", "They are asked of the registers x0 .. x31 and the place of the current process (signed; all 0 without one), of its number (-1 without one),"
-                + " of the COUNT");
+        c.sentence("breaks", "They are asked of the registers x0 .. x31 and the place of the current process (signed;"
+                + " all 0 without one), of its number (-1 without one), of the COUNT");
         is("x0", 0);
         is("x2", 61444);
         is("x8", -1);
@@ -181,7 +182,8 @@ public final class EdgeBreakTest {
     }
 
     private static void characters() {
-        c.sentence("a condition's text", "a byte of the tape that is none of these, or the 121st, is fault 1 at its place, before all others.");
+        c.sentence("a condition's text", "a byte of the tape that is none of these, or the 121st, is fault 1 at its"
+                + " place, before all others.");
         for (int it = 0; it < 256; it++) {
             if (it < 32 || it > 126) {
                 TimeMachine x = new TimeMachine();
@@ -215,7 +217,8 @@ public final class EdgeBreakTest {
     }
 
     private static void numbers() {
-        c.sentence("a condition's text", "NUMBERS: digits, or 0x and digits 0 .. 9 a .. f, below 2^32 (no letter, digit behind it)");
+        c.sentence("a condition's text", "NUMBERS: digits, or 0x and digits 0 .. 9 a .. f, below 2^32 (no letter,"
+                + " digit behind it)");
         is("0", 0);
         is("00012", 12);
         is("4294967295", 4294967295L);
@@ -224,7 +227,8 @@ public final class EdgeBreakTest {
         is("0x0123456", 0x123456);
         is("0x789abcde", 0x789abcdeL);
         is("0xf", 15);
-        for (String text : new String[] {"4294967296", "0x100000000", "99999999999999999999", "18446744073709551617", "0x", "0xA", "0xF", "0xg", "0X1", "1a",
+        for (String text : new String[] {"4294967296", "0x100000000", "99999999999999999999", "18446744073709551617",
+            "0x", "0xA", "0xF", "0xg", "0X1", "1a",
             "1x", "12pc", "0b1", "0x1g", "0x1G", "1Z", "1z", "0xfffffffff"}) {
             fault(1, 0, text);
             fault(1, 4, "1 + " + text);
@@ -233,7 +237,8 @@ public final class EdgeBreakTest {
 
     private static void words() {
         c.sentence("a condition's text", "WORDS: letters and digits, the first a letter");
-        for (String text : new String[] {"a", "z", "A", "Z", "a0", "z9", "Zz9", "PC", "Count", "x32", "x00", "x01", "x", "xx", "x1x", "x100", "pcs", "pi", "counts",
+        for (String text : new String[] {"a", "z", "A", "Z", "a0", "z9", "Zz9", "PC", "Count", "x32", "x00", "x01", "x",
+            "xx", "x1x", "x100", "pcs", "pi", "counts",
             "bytes", "word", "halfs", "olds", "change", "zero", "ra", "sp", "fp"}) {
             fault(2, 0, text);
             fault(2, 3, "1 +" + text);
@@ -278,7 +283,8 @@ public final class EdgeBreakTest {
     }
 
     private static void ranks() {
-        c.sentence("a condition", "from those that bind least on: ||, &&, then == != < <= > >=, |, ^, &, << >>, + -, * / %");
+        c.sentence("a condition", "from those that bind least on: ||, &&, then == != < <= > >=, |, ^, &, << >>, + -,"
+                + " * / %");
         is("1 || 0 && 0", 1);
         is("0 && 0 || 1", 1);
         is("1 && 2 == 3", 0);
@@ -417,7 +423,8 @@ public final class EdgeBreakTest {
     }
 
     private static void notWorked() {
-        c.sentence("a condition", "a || b is 1, and b is not worked, if a is true; a && b 0 likewise, if it is not; else the truth of b.");
+        c.sentence("a condition", "a || b is 1, and b is not worked, if a is true; a && b 0 likewise, if it is not;"
+                + " else the truth of b.");
         is("1 || 1 / 0", 1);
         is("5 || [1]", 1);
         is("0 || 1 / 0", 0);
@@ -437,7 +444,8 @@ public final class EdgeBreakTest {
     }
 
     private static void olds() {
-        c.sentence("a condition", "old ( e ) is the value that e had at the count before (at count 0: at 0), 0 if it failed there.");
+        c.sentence("a condition", "old ( e ) is the value that e had at the count before (at count 0: at 0), 0 if it"
+                + " failed there.");
         TimeMachine x = c.booted(PROGRAM);
         is(x, "old(count)", 0);
         is(x, "old(x2)", 65536);
@@ -558,7 +566,8 @@ public final class EdgeBreakTest {
     }
 
     private static void atTheEnd() {
-        c.sentence("faults of a condition", "(at the end, if a token must come: at the place behind the last character)");
+        c.sentence("faults of a condition", "(at the end, if a token must come: at the place behind the last"
+                + " character)");
         fault(1, 0, "");
         fault(1, 1, " ");
         fault(1, 3, "   ");
@@ -591,8 +600,8 @@ public final class EdgeBreakTest {
     }
 
     private static void faultThree() {
-        c.sentence("faults of a condition", "3 a part too many: each number, word (old and changed, too), sign before or between, [ and ( is one (byte [ and old ( are two"
-                + " each); at most 40.");
+        c.sentence("faults of a condition", "3 a part too many: each number, word (old and changed, too), sign before"
+                + " or between, [ and ( is one (byte [ and old ( are two each); at most 40.");
         is("1" + "+1".repeat(19), 20);
         is("-1" + "+1".repeat(19), 18);
         fault(3, 40, "-1" + "+1".repeat(20));
@@ -663,13 +672,17 @@ public final class EdgeBreakTest {
     }
 
     private static void addresses() {
-        c.sentence("breaks", "or an address whose bytes are not all on pages that are there, or for words and halves no multiple of 4 or 2.");
-        for (String text : new String[] {"[65536]", "[-4]", "[2048]", "[61436]", "[1 << 32]", "[1 << 62]", "half[65536]", "half[-2]", "half[2048]", "half[61438]",
-            "byte[65536]", "byte[-1]", "byte[2048]", "byte[61439]", "byte[1 << 40]", "[4294967295]", "[65536 + 1024]", "byte[4294967295 + 1025]", "[1025]",
+        c.sentence("breaks", "or an address whose bytes are not all on pages that are there, or for words and halves"
+                + " no multiple of 4 or 2.");
+        for (String text : new String[] {"[65536]", "[-4]", "[2048]", "[61436]", "[1 << 32]", "[1 << 62]",
+            "half[65536]", "half[-2]", "half[2048]", "half[61438]",
+            "byte[65536]", "byte[-1]", "byte[2048]", "byte[61439]", "byte[1 << 40]", "[4294967295]", "[65536 + 1024]",
+            "byte[4294967295 + 1025]", "[1025]",
             "[1026]", "[1027]", "half[1025]", "half[1027]", "[-1]", "half[-1]", "[1 << 63]"}) {
             is("1 + " + text, 0);
         }
-        for (String text : new String[] {"[0]", "[1020]", "[2044]", "[61440]", "[65532]", "half[0]", "half[2046]", "half[61440]", "half[65534]", "byte[0]",
+        for (String text : new String[] {"[0]", "[1020]", "[2044]", "[61440]", "[65532]", "half[0]", "half[2046]",
+            "half[61440]", "half[65534]", "byte[0]",
             "byte[2047]", "byte[61440]", "byte[65535]", "[1028]", "half[1026]", "byte[1025]"}) {
             is("0 * " + text + " + 1", 1);
         }
@@ -719,8 +732,8 @@ public final class EdgeBreakTest {
     }
 
     private static void watches() {
-        c.sentence("promise 17", "The tape becomes break k (0 .. 7), in place of one that was there, and is empty then: 0, or the fault + 8 * its place: the break that was"
-                + " stays.");
+        c.sentence("promise 17", "The tape becomes break k (0 .. 7), in place of one that was there, and is empty"
+                + " then: 0, or the fault + 8 * its place: the break that was stays.");
         TimeMachine x = machine();
         c.same("watch", Checks.watch(x, 3, "5"), 0);
         c.same("the tape", x.count(15), 0);
@@ -783,7 +796,8 @@ public final class EdgeBreakTest {
     }
 
     private static void wrongValues() {
-        c.sentence("promise 19", "IllegalArgumentException when k is not 0 .. 7; else IllegalStateException when it is not there, or nothing is booted.");
+        c.sentence("promise 19", "IllegalArgumentException when k is not 0 .. 7; else IllegalStateException when it"
+                + " is not there, or nothing is booted.");
         TimeMachine none = new TimeMachine();
         TimeMachine x = machine();
         for (int k : new int[] {-1, 8, Integer.MIN_VALUE, Integer.MAX_VALUE}) {
@@ -804,7 +818,8 @@ public final class EdgeBreakTest {
     }
 
     private static void backs() {
-        c.sentence("promise 20", "The greatest count below NOW at which break k holds is NOW then, and is answered; -1, changing nothing, without one.");
+        c.sentence("promise 20", "The greatest count below NOW at which break k holds is NOW then, and is answered;"
+                + " -1, changing nothing, without one.");
         TimeMachine x = c.booted(PROGRAM);
         Checks.watch(x, 0, "1");
         Checks.watch(x, 1, "count == 0");

@@ -58,9 +58,10 @@ public final class EdgeEncodingTest {
     }
 
     private static void threeRegisters() {
-        c.sentence("instructions", "d, a, b: 51, by F and G: add 0 0, sub 0 32, sll 1 0, slt 2 0, sltu 3 0, xor 4 0, srl 5 0, sra 5 32,"
-                + " or 6 0, and 7 0; mul mulh mulhsu mulhu div divu rem remu F 0 .. 7, G 1.");
-        String[] names = {"add", "sub", "sll", "slt", "sltu", "xor", "srl", "sra", "or", "and", "mul", "mulh", "mulhsu", "mulhu", "div",
+        c.sentence("instructions", "d, a, b: 51, by F and G: add 0 0, sub 0 32, sll 1 0, slt 2 0, sltu 3 0, xor 4 0,"
+                + " srl 5 0, sra 5 32, or 6 0, and 7 0; mul mulh mulhsu mulhu div divu rem remu F 0 .. 7, G 1.");
+        String[] names = {"add", "sub", "sll", "slt", "sltu", "xor", "srl", "sra", "or", "and", "mul", "mulh", "mulhsu",
+            "mulhu", "div",
             "divu", "rem", "remu"};
         int[] f = {0, 0, 1, 2, 3, 4, 5, 5, 6, 7, 0, 1, 2, 3, 4, 5, 6, 7};
         int[] g = {0, 32, 0, 0, 0, 0, 0, 32, 0, 0, 1, 1, 1, 1, 1, 1, 1, 1};
@@ -98,12 +99,14 @@ public final class EdgeEncodingTest {
     }
 
     private static void loads() {
-        c.sentence("instructions", "d, e(a): e -2048 .. 2047 in bits 20 .. 31: 3: lb F 0, lh 1, lw 2, lbu 4, lhu 5; 103: jalr 0.");
+        c.sentence("instructions", "d, e(a): e -2048 .. 2047 in bits 20 .. 31: 3: lb F 0, lh 1, lw 2, lbu 4, lhu 5;"
+                + " 103: jalr 0.");
         String[] names = {"lb", "lh", "lw", "lbu", "lhu", "jalr"};
         int[] f = {0, 1, 2, 4, 5, 0};
         for (int i = 0; i < names.length; i++) {
             for (int e : new int[] {-2048, -1, 0, 2047}) {
-                is(names[i] + " x31, " + e + "(x30)", 4, (i == 5 ? 103 : 3) | 31 << 7 | f[i] << 12 | 30 << 15 | (e & 0xfffL) << 20);
+                int opcode = i == 5 ? 103 : 3;
+                is(names[i] + " x31, " + e + "(x30)", 4, opcode | 31 << 7 | f[i] << 12 | 30 << 15 | (e & 0xfffL) << 20);
             }
             t.faults(10, names[i] + " a0, -2049(a0)", names[i] + " a0, 2048(a0)");
             t.faults(1, names[i] + " a0, (a0)", names[i] + " a0, 0", names[i] + " a0, 0(a0", names[i] + " a0, 0 a0");
@@ -111,7 +114,8 @@ public final class EdgeEncodingTest {
     }
 
     private static void stores() {
-        c.sentence("instructions", "b, e(a): 35: sb 0, sh 1, sw 2: e likewise, its bits 5 .. 11 in G, 0 .. 4 in 7 .. 11.");
+        c.sentence("instructions", "b, e(a): 35: sb 0, sh 1, sw 2: e likewise, its bits 5 .. 11 in G, 0 .. 4 in 7 .."
+                + " 11.");
         String[] names = {"sb", "sh", "sw"};
         for (int f = 0; f < names.length; f++) {
             for (int e : new int[] {-2048, -1, 0, 31, 32, 2047}) {
@@ -132,8 +136,8 @@ public final class EdgeEncodingTest {
     }
 
     private static void branches() {
-        c.sentence("instructions", "the offset -4096 .. 4094, even: bits 12, 10 .. 5 of it in 31, 30 .. 25, 4 .. 1 and 11 in 11 .. 8 and"
-                + " 7.");
+        c.sentence("instructions", "the offset -4096 .. 4094, even: bits 12, 10 .. 5 of it in 31, 30 .. 25, 4 .. 1"
+                + " and 11 in 11 .. 8 and 7.");
         String[] names = {"beq", "bne", "blt", "bge", "bltu", "bgeu"};
         int[] f = {0, 1, 4, 5, 6, 7};
         for (int i = 0; i < names.length; i++) {
@@ -149,20 +153,23 @@ public final class EdgeEncodingTest {
     }
 
     private static void jumps() {
-        c.sentence("instructions", "d, t: jal 111: -1048576 .. 1048574, even: bits 20, 10 .. 1, 11, 19 .. 12 of it in 31, 30 .. 21, 20,"
-                + " 19 .. 12.");
+        c.sentence("instructions", "d, t: jal 111: -1048576 .. 1048574, even: bits 20, 10 .. 1, 11, 19 .. 12 of it in"
+                + " 31, 30 .. 21, 20, 19 .. 12.");
         for (int e : new int[] {-1048576, -1048574, -2048, -2, 0, 2, 2046, 2048, 4096, 524288, 1048574}) {
             long offset = (e >> 20 & 1L) << 31 | (e >> 1 & 1023) << 21 | (e >> 11 & 1) << 20 | (e >> 12 & 255) << 12;
             is("jal x31, . + " + e, 4, 111 | 31 << 7 | offset);
             is("jal x0, . + " + e, 4, 111 | offset);
         }
-        t.faults(10, "jal ra, . - 1048578", "jal ra, . + 1048576", "jal ra, . + 1", "jal ra, . - 1048575", "jal ra, 0x7ffffffe");
+        t.faults(10, "jal ra, . - 1048578", "jal ra, . + 1048576", "jal ra, . + 1", "jal ra, . - 1048575",
+                "jal ra, 0x7ffffffe");
     }
 
     private static void atomics() {
-        c.sentence("instructions", "d, b, (a): 47, F 2, by the upper five bits of G: sc.w 3, amoswap.w 1, amoadd.w 0, amoxor.w 4, amoand.w 12,"
-                + " amoor.w 8, amomin.w 16, amomax.w 20, amominu.w 24, amomaxu.w 28; d, (a): lr.w 2");
-        String[] names = {"sc.w", "amoswap.w", "amoadd.w", "amoxor.w", "amoand.w", "amoor.w", "amomin.w", "amomax.w", "amominu.w",
+        c.sentence("instructions", "d, b, (a): 47, F 2, by the upper five bits of G: sc.w 3, amoswap.w 1, amoadd.w 0,"
+                + " amoxor.w 4, amoand.w 12, amoor.w 8, amomin.w 16, amomax.w 20, amominu.w 24, amomaxu.w 28; d, (a):"
+                + " lr.w 2");
+        String[] names = {"sc.w", "amoswap.w", "amoadd.w", "amoxor.w", "amoand.w", "amoor.w", "amomin.w", "amomax.w",
+            "amominu.w",
             "amomaxu.w"};
         int[] k = {3, 1, 0, 4, 12, 8, 16, 20, 24, 28};
         for (int i = 0; i < names.length; i++) {
@@ -176,7 +183,8 @@ public final class EdgeEncodingTest {
 
     private static void orders() {
         c.sentence("instructions", "the name may have .aq (bit 26), .rl (25) or .aqrl (both) behind it.");
-        String[] names = {"lr.w", "sc.w", "amoswap.w", "amoadd.w", "amoxor.w", "amoand.w", "amoor.w", "amomin.w", "amomax.w",
+        String[] names = {"lr.w", "sc.w", "amoswap.w", "amoadd.w", "amoxor.w", "amoand.w", "amoor.w", "amomin.w",
+            "amomax.w",
             "amominu.w", "amomaxu.w"};
         int[] k = {2, 3, 1, 0, 4, 12, 8, 16, 20, 24, 28};
         for (int i = 0; i < names.length; i++) {
@@ -186,14 +194,16 @@ public final class EdgeEncodingTest {
             is(names[i] + ".rl" + operands, 4, bits | 1 << 25);
             is(names[i] + ".aqrl" + operands, 4, bits | 3 << 25);
             t.faults(2, names[i] + ".rlaq" + operands, names[i] + ".aq.rl" + operands, names[i] + "." + operands,
-                    names[i] + ".a" + operands, names[i] + ".AQ" + operands, names[i] + "aq" + operands, names[i] + ".aq.aq" + operands);
+                    names[i] + ".a" + operands, names[i] + ".AQ" + operands, names[i] + "aq" + operands, names[i]
+                    + ".aq.aq" + operands);
         }
-        t.faults(2, "add.aq a0, a0, a0", "lw.aq a0, 0(a0)", "nop.rl", ".word.aq 1", "fence.aq", ".aq", ".aqrl", ".rl", "amoadd.aq a0, a0, (a0)");
+        t.faults(2, "add.aq a0, a0, a0", "lw.aq a0, 0(a0)", "nop.rl", ".word.aq 1", "fence.aq", ".aq", ".aqrl", ".rl",
+                "amoadd.aq a0, a0, (a0)");
     }
 
     private static void counters() {
-        c.sentence("instructions", "d: rdcycle rdtime rdinstret rdcycleh rdtimeh rdinstreth: 115, F 2, 3072, 3073, 3074, 3200, 3201, 3202 in"
-                + " bits 20 .. 31.");
+        c.sentence("instructions", "d: rdcycle rdtime rdinstret rdcycleh rdtimeh rdinstreth: 115, F 2, 3072, 3073,"
+                + " 3074, 3200, 3201, 3202 in bits 20 .. 31.");
         String[] names = {"rdcycle", "rdtime", "rdinstret", "rdcycleh", "rdtimeh", "rdinstreth"};
         long[] number = {3072, 3073, 3074, 3200, 3201, 3202};
         for (int i = 0; i < names.length; i++) {
@@ -224,7 +234,8 @@ public final class EdgeEncodingTest {
     }
 
     private static void shortWords() {
-        c.sentence("short ones", "c.lw d', e(a'): F 2, c.sw b', e(a'): F 6, multiples of 4, 0 .. 124: [5:3] in 12 .. 10, [2] in 6, [6] in 5.");
+        c.sentence("short ones", "c.lw d', e(a'): F 2, c.sw b', e(a'): F 6, multiples of 4, 0 .. 124: [5:3] in 12 .."
+                + " 10, [2] in 6, [6] in 5.");
         for (int e = 0; e <= 124; e += 4) {
             int offset = spread(e, "5:3", 12) | spread(e, "2", 6) | spread(e, "6", 5);
             is("c.lw x15, " + e + "(x8)", 2, 2 << 13 | 7 << 2 | offset);
@@ -245,7 +256,8 @@ public final class EdgeEncodingTest {
             is("c.li x31, " + e, 2, 1 | 2 << 13 | 31 << 7 | n);
             is("c.andi x15, " + e, 2, 1 | 4 << 13 | 2 << 10 | 7 << 7 | n);
         }
-        t.faults(10, "c.addi a0, -33", "c.addi a0, 32", "c.li a0, -33", "c.li a0, 32", "c.andi a0, -33", "c.andi a0, 32");
+        t.faults(10, "c.addi a0, -33", "c.addi a0, 32", "c.li a0, -33", "c.li a0, 32", "c.andi a0, -33",
+                "c.andi a0, 32");
         is("c.nop", 2, 1);
         is("c.addi x0, 0", 2, 1);
         is("c.addi x0, 31", 2, 1 | 31 << 2);
@@ -259,11 +271,13 @@ public final class EdgeEncodingTest {
             is("c.jal . + " + e, 2, 1 | 1 << 13 | offset);
             is("c.j . + " + e, 2, 1 | 5 << 13 | offset);
         }
-        t.faults(10, "c.j . - 2050", "c.j . + 2048", "c.j . + 1", "c.j . - 2047", "c.jal . - 2050", "c.jal . + 2048", "c.jal . + 1");
+        t.faults(10, "c.j . - 2050", "c.j . + 2048", "c.j . + 1", "c.j . - 2047", "c.jal . - 2050", "c.jal . + 2048",
+                "c.jal . + 1");
     }
 
     private static void shortStackStep() {
-        c.sentence("short ones", "c.addi16sp e: F 3, d 2, a multiple of 16, -512 .. 496, not 0: [9] in 12, [4|6|8:7|5] in 6 .. 2.");
+        c.sentence("short ones", "c.addi16sp e: F 3, d 2, a multiple of 16, -512 .. 496, not 0: [9] in 12,"
+                + " [4|6|8:7|5] in 6 .. 2.");
         for (int e = -512; e <= 496; e += 16) {
             if (e == 0) {
                 t.faults(10, "c.addi16sp 0");
@@ -311,13 +325,15 @@ public final class EdgeEncodingTest {
     }
 
     private static void shortBranches() {
-        c.sentence("short ones", "c.beqz a', t: F 6, c.bnez a', t: F 7: -256 .. 254, even: [8|4:3] in 12 .. 10, [7:6|2:1|5] in 6 .. 2.");
+        c.sentence("short ones", "c.beqz a', t: F 6, c.bnez a', t: F 7: -256 .. 254, even: [8|4:3] in 12 .. 10,"
+                + " [7:6|2:1|5] in 6 .. 2.");
         for (int e = -256; e <= 254; e += 2) {
             int offset = spread(e, "8|4:3", 12) | spread(e, "7:6|2:1|5", 6);
             is("c.beqz x15, . + " + e, 2, 1 | 6 << 13 | 7 << 7 | offset);
             is("c.bnez x8, . + " + e, 2, 1 | 7 << 13 | offset);
         }
-        t.faults(10, "c.beqz a0, . - 258", "c.beqz a0, . + 256", "c.beqz a0, . + 1", "c.bnez a0, . - 258", "c.bnez a0, . + 256",
+        t.faults(10, "c.beqz a0, . - 258", "c.beqz a0, . + 256", "c.beqz a0, . + 1", "c.bnez a0, . - 258",
+                "c.bnez a0, . + 256",
                 "c.bnez a0, . - 255");
     }
 
@@ -331,7 +347,8 @@ public final class EdgeEncodingTest {
     }
 
     private static void shortStackWords() {
-        c.sentence("short ones", "c.lwsp d, e: F 2, d not 0, a multiple of 4, 0 .. 252: [5] in 12, [4:2|7:6] in 6 .. 2.");
+        c.sentence("short ones", "c.lwsp d, e: F 2, d not 0, a multiple of 4, 0 .. 252: [5] in 12, [4:2|7:6] in 6 .."
+                + " 2.");
         for (int e = 0; e <= 252; e += 4) {
             is("c.lwsp x31, " + e, 2, 2 | 2 << 13 | 31 << 7 | spread(e, "5", 12) | spread(e, "4:2|7:6", 6));
         }
@@ -362,9 +379,12 @@ public final class EdgeEncodingTest {
     private static void registersInPlaces() {
         c.sentence("short ones", "d', a', b' are registers 8 .. 15, as 0 .. 7, in bits 2 .. 4 (d', b') or 7 .. 9 (a')");
         for (int r = 0; r < 32; r++) {
-            String[] lines = {"c.addi4spn x" + r + ", 4", "c.lw x" + r + ", 0(x8)", "c.lw x8, 0(x" + r + ")", "c.sw x" + r + ", 0(x8)",
-                "c.sw x8, 0(x" + r + ")", "c.srli x" + r + ", 1", "c.srai x" + r + ", 1", "c.andi x" + r + ", 1", "c.sub x" + r + ", x8",
-                "c.sub x8, x" + r, "c.and x" + r + ", x8", "c.or x8, x" + r, "c.xor x" + r + ", x9", "c.beqz x" + r + ", .",
+            String[] lines = {"c.addi4spn x" + r + ", 4", "c.lw x" + r + ", 0(x8)", "c.lw x8, 0(x" + r + ")", "c.sw x"
+                + r + ", 0(x8)",
+                "c.sw x8, 0(x" + r + ")", "c.srli x" + r + ", 1", "c.srai x" + r + ", 1", "c.andi x" + r + ", 1",
+                "c.sub x" + r + ", x8",
+                "c.sub x8, x" + r, "c.and x" + r + ", x8", "c.or x8, x" + r, "c.xor x" + r + ", x9", "c.beqz x" + r
+                + ", .",
                 "c.bnez x" + r + ", ."};
             for (String line : lines) {
                 if (r >= 8 && r <= 15) {
@@ -405,7 +425,8 @@ public final class EdgeEncodingTest {
         same("bleu x31, x30, . - 8", "bgeu x30, x31, . - 8");
         same("beqz x31, . - 8", "beq x31, zero, . - 8");
         same("bnez x31, . - 8", "bne x31, zero, . - 8");
-        c.sentence("others", "jal t (one operand, no register's name) and call t: jal ra, t; j t and tail t: jal zero, t.");
+        c.sentence("others", "jal t (one operand, no register's name) and call t: jal ra, t; j t and tail t: jal"
+                + " zero, t.");
         same("jal . + 4096", "jal ra, . + 4096");
         same("call . + 4096", "jal ra, . + 4096");
         same("j . + 4096", "jal zero, . + 4096");
@@ -416,7 +437,8 @@ public final class EdgeEncodingTest {
     }
 
     private static void addresses() {
-        c.sentence("others", "la d, e: auipc d, %hi(offset), addi d, d, %lo(offset), the offset being e minus the address of the first one.");
+        c.sentence("others", "la d, e: auipc d, %hi(offset), addi d, d, %lo(offset), the offset being e minus the"
+                + " address of the first one.");
         for (long offset : new long[] {0, 1, 2047, 2048, 4095, 4096, 0x7fffffffL, 0x80000000L, -1, -2048, -2049}) {
             long high = offset + 2048 >>> 12 & 0xfffff;
             long low = offset & 0xfff;
@@ -428,8 +450,8 @@ public final class EdgeEncodingTest {
     }
 
     private static void loadedNumbers() {
-        c.sentence("others", "li d, e (fixed): c.li, if e is -32 .. 31 and d not 0; else addi d, zero, e, if it is -2048 .. 2047; else lui d,"
-                + " %hi(e), and addi d, d, %lo(e), unless %lo(e) is 0.");
+        c.sentence("others", "li d, e (fixed): c.li, if e is -32 .. 31 and d not 0; else addi d, zero, e, if it is"
+                + " -2048 .. 2047; else lui d, %hi(e), and addi d, d, %lo(e), unless %lo(e) is 0.");
         same("li x31, -32", "c.li x31, -32");
         same("li x1, 31", "c.li x1, 31");
         same("li x1, 0", "c.li x1, 0");

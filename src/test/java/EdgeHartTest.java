@@ -69,8 +69,10 @@ public final class EdgeHartTest {
 
     private static void zero() {
         c.sentence("the hart", "REGISTERS x0 .. x31; x0 is always 0.");
-        String[] writes = {"li zero, 5", "lui zero, 5", "auipc zero, 5", "add zero, sp, sp", "mul zero, sp, sp", "addi zero, sp, 5",
-            "lw zero, 0(a0)", "lbu zero, 0(a0)", "lr.w zero, (a0)", "amoadd.w zero, sp, (a0)", "sc.w zero, sp, (a0)", "rdcycle zero",
+        String[] writes = {"li zero, 5", "lui zero, 5", "auipc zero, 5", "add zero, sp, sp", "mul zero, sp, sp",
+            "addi zero, sp, 5",
+            "lw zero, 0(a0)", "lbu zero, 0(a0)", "lr.w zero, (a0)", "amoadd.w zero, sp, (a0)", "sc.w zero, sp, (a0)",
+            "rdcycle zero",
             "c.li zero, 5", "c.mv zero, sp", "c.add zero, sp", "c.addi zero, 5", "c.lui zero, 5", "jal zero, . + 4",
             "la a1, 1f\njalr zero, 0(a1)\n1: nop", "slli zero, sp, 1", "c.slli zero, 1", "srai zero, sp, 1"};
         for (String line : writes) {
@@ -85,14 +87,17 @@ public final class EdgeHartTest {
         t.gives("li a0, 65532\nli a1, 77\nsw a1, 0(a0)\nlw a2, 0(a0)", 77);
         t.gives("li a0, 61440\nlw a2, 0(a0)\nli a2, 5", 5);
         t.ends(11, "li a0, 65536\nlbu a1, 0(a0)", "li a0, 65536\nlw a1, 0(a0)", "li a0, 61439\nlbu a1, 0(a0)",
-                "li a0, 61436\nlw a1, 0(a0)", "li a0, 65536\nsb a1, 0(a0)", "li a0, 61439\nsb a1, 0(a0)", "li a0, 2048\nlbu a1, 0(a0)");
-        t.ends(0, "li a0, 2047\nlbu a1, 0(a0)", "li a0, 2047\nsb a1, 0(a0)", "li a0, 1023\nlbu a1, 0(a0)", "lbu a1, 0(zero)",
+                "li a0, 61436\nlw a1, 0(a0)", "li a0, 65536\nsb a1, 0(a0)", "li a0, 61439\nsb a1, 0(a0)",
+                "li a0, 2048\nlbu a1, 0(a0)");
+        t.ends(0, "li a0, 2047\nlbu a1, 0(a0)", "li a0, 2047\nsb a1, 0(a0)", "li a0, 1023\nlbu a1, 0(a0)",
+                "lbu a1, 0(zero)",
                 "li a0, 1024\nsb a1, 0(a0)");
     }
 
     private static void unsignedAddresses() {
         c.sentence("the hart", "An address is a number taken unsigned.");
-        t.ends(11, "lbu a0, -1(zero)", "sb a0, -1(zero)", "li a0, 0x80000000\nlw a1, 0(a0)", "li a0, 0xffff0000\nlbu a1, 0(a0)",
+        t.ends(11, "lbu a0, -1(zero)", "sb a0, -1(zero)", "li a0, 0x80000000\nlw a1, 0(a0)",
+                "li a0, 0xffff0000\nlbu a1, 0(a0)",
                 "li a0, 0x10000400\nlw a1, 0(a0)");
         // The sum goes round, so that the address is there.
         t.ends(0, "li a0, -1\nlbu a1, 1(a0)", "li a0, -4\nlw a1, 4(a0)", "li a0, -1000\nlbu a1, 2040(a0)");
@@ -100,7 +105,8 @@ public final class EdgeHartTest {
     }
 
     private static void lengths() {
-        c.sentence("the hart", "if its lowest two bits are 11, the instruction is LONG: the word there; otherwise SHORT: the half.");
+        c.sentence("the hart", "if its lowest two bits are 11, the instruction is LONG: the word there; otherwise"
+                + " SHORT: the half.");
         t.gives("c.nop\naddi a2, zero, 7", 7);
         t.gives("c.li a2, 3\nc.addi a2, 1\naddi a2, a2, 1\nc.addi a2, 1", 6);
         // A long one that begins where a page ends, both of whose pages may be carried out.
@@ -111,7 +117,8 @@ public final class EdgeHartTest {
         c.sentence("the hart", "or TRAPS: then nothing changes but the CAUSE and the VALUE.");
         String begin = "li a7, 17\nli a0, 7\nla a1, h\necall\nli a0, 11\nla a1, h\necall\nla a0, d\nli a2, 5\n";
         String end = "\nh: li a7, 21\necall\n.data\nd: .word 3";
-        for (String line : new String[] {"lw a2, 1(a0)", "lh a2, 3(a0)", "lw a2, -4(zero)", "lr.w a2, (a2)", "amoadd.w a2, a2, (zero)",
+        for (String line : new String[] {"lw a2, 1(a0)", "lh a2, 3(a0)", "lw a2, -4(zero)", "lr.w a2, (a2)",
+            "amoadd.w a2, a2, (zero)",
             "sc.w a2, a2, (zero)", "sw a2, 1(a0)", "c.lw a2, 4(a2)"}) {
             TimeMachine x = c.booted(begin + line + end);
             x.run(12);
@@ -129,8 +136,10 @@ public final class EdgeHartTest {
     }
 
     private static void fetch() {
-        c.sentence("the hart", "1 FETCH: the place is odd, or a byte of the instruction isn't in 0 .. 65535 or on a page that may be carried out");
-        t.ends(11, "li a0, 1024\njr a0", "li a0, 61440\njr a0", "li a0, 4096\njr a0", "li a0, 65534\njr a0", "li a0, 65536\njr a0",
+        c.sentence("the hart", "1 FETCH: the place is odd, or a byte of the instruction isn't in 0 .. 65535 or on a"
+                + " page that may be carried out");
+        t.ends(11, "li a0, 1024\njr a0", "li a0, 61440\njr a0", "li a0, 4096\njr a0", "li a0, 65534\njr a0",
+                "li a0, 65536\njr a0",
                 "li a0, -2\njr a0", "li a0, 0x80000000\njr a0");
         // A place is odd only as a handler's.
         TimeMachine x = c.booted("li a7, 17\nli a0, 5\nli a1, 3\necall\nebreak\n");
@@ -139,7 +148,8 @@ public final class EdgeHartTest {
         c.same("within a handler", x.process(0, 4), 1);
         x.run(1);
         c.same("it ends", x.process(0, 0), 0);
-        c.same("an even place is no fault", t.signal("li a7, 17\nli a0, 5\nla a1, 2f\necall\nebreak\n2: li a7, 18\nli a7, 0"), 0);
+        c.same("an even place is no fault", t.signal("li a7, 17\nli a0, 5\nla a1, 2f\necall\nebreak\n2: li a7, 18\n"
+                + "li a7, 0"), 0);
     }
 
     private static void fetchPartly() {
@@ -163,7 +173,8 @@ public final class EdgeHartTest {
                 t.ends(4, ".word " + opcode, ".word 0xffffff80 | " + opcode);
             }
         }
-        t.ends(4, ".word 0x03 | 3 << 12", ".word 0x03 | 6 << 12", ".word 0x03 | 7 << 12", ".word 0x63 | 2 << 12", ".word 0x63 | 3 << 12");
+        t.ends(4, ".word 0x03 | 3 << 12", ".word 0x03 | 6 << 12", ".word 0x03 | 7 << 12", ".word 0x63 | 2 << 12",
+                ".word 0x63 | 3 << 12");
         for (int f = 1; f < 8; f++) {
             t.ends(4, ".word 0x67 | " + f + " << 12");
             if (f > 2) {
@@ -192,7 +203,8 @@ public final class EdgeHartTest {
             boolean known = " 0 1 2 3 4 8 12 16 20 24 28 ".contains(" " + k + " ");
             t.ends(known ? 0 : 4, "la a0, d\nlr.w a1, (a0)\n.word 0x2f | 2 << 12 | 10 << 15 | " + k + " << 27");
         }
-        t.ends(4, "la a0, d\n.word 0x2f | 2 << 12 | 10 << 15 | 1 << 20 | 2 << 27", "la a0, d\n.word 0x2f | 2 << 12 | 10 << 15 | 16 << 20 | 2 << 27");
+        t.ends(4, "la a0, d\n.word 0x2f | 2 << 12 | 10 << 15 | 1 << 20 | 2 << 27",
+                "la a0, d\n.word 0x2f | 2 << 12 | 10 << 15 | 16 << 20 | 2 << 27");
     }
 
     private static void illegalShort() {
@@ -206,7 +218,8 @@ public final class EdgeHartTest {
             t.ends(4, ".half " + half);
         }
         c.sentence("short ones", "(D 0 and N 0 are no fault where nothing is said.)");
-        int[] fine = {0x0001, 0x0005, 0x0081, 0x4001, 0x4081, 0x6005, 0x0002, 0x0082, 0x007e, 0x8006, 0x9006, 0x8801, 0x8001, 0x8401,
+        int[] fine = {0x0001, 0x0005, 0x0081, 0x4001, 0x4081, 0x6005, 0x0002, 0x0082, 0x007e, 0x8006, 0x9006, 0x8801,
+            0x8001, 0x8401,
             0xc002};
         for (int half : fine) {
             t.ends(0, "la s0, d\nli sp, 65528\nmv x1, zero\n.half " + half);
@@ -217,20 +230,26 @@ public final class EdgeHartTest {
         c.sentence("the hart", "CAUSES, in the order in which they are asked");
         t.ends(11, "li a0, 1024\njr a0\n.data\n.word 0");
         t.ends(4, ".word 0x03 | 3 << 12 | 1 << 20", ".word 0x23 | 3 << 12 | 1 << 7", ".word 0x2f | 2 << 12 | 5 << 27");
-        t.ends(7, "lw a0, -1(zero)", "lh a0, -1(zero)", "lhu a0, -1(zero)", "sw a0, -2(zero)", "sh a0, 1(zero)", "sw a0, 1(zero)",
-                "li a0, 1\nlr.w a1, (a0)", "li a0, 1\nsc.w a1, a1, (a0)", "li a0, 2\namoadd.w a1, a1, (a0)", "li a0, -2\nlr.w a1, (a0)");
+        t.ends(7, "lw a0, -1(zero)", "lh a0, -1(zero)", "lhu a0, -1(zero)", "sw a0, -2(zero)", "sh a0, 1(zero)",
+                "sw a0, 1(zero)",
+                "li a0, 1\nlr.w a1, (a0)", "li a0, 1\nsc.w a1, a1, (a0)", "li a0, 2\namoadd.w a1, a1, (a0)",
+                "li a0, -2\nlr.w a1, (a0)");
     }
 
     private static void misaligned() {
         c.sentence("the hart", "5 MISALIGNED: the address is no multiple of 2 for halves, of 4 for words");
         for (int at = 0; at < 4; at++) {
-            t.ends(0, "la a0, d\nlb a1, " + at + "(a0)", "la a0, d\nlbu a1, " + at + "(a0)", "la a0, d\nsb a1, " + at + "(a0)");
+            t.ends(0, "la a0, d\nlb a1, " + at + "(a0)", "la a0, d\nlbu a1, " + at + "(a0)", "la a0, d\nsb a1, " + at
+                    + "(a0)");
             int half = at % 2 == 0 ? 0 : 7;
-            t.ends(half, "la a0, d\nlh a1, " + at + "(a0)", "la a0, d\nlhu a1, " + at + "(a0)", "la a0, d\nsh a1, " + at + "(a0)");
+            t.ends(half, "la a0, d\nlh a1, " + at + "(a0)", "la a0, d\nlhu a1, " + at + "(a0)", "la a0, d\nsh a1, " + at
+                    + "(a0)");
             int word = at == 0 ? 0 : 7;
-            t.ends(word, "la a0, d\nlw a1, " + at + "(a0)", "la a0, d\nsw a1, " + at + "(a0)", "la a0, d + " + at + "\nlr.w a1, (a0)",
+            t.ends(word, "la a0, d\nlw a1, " + at + "(a0)", "la a0, d\nsw a1, " + at + "(a0)", "la a0, d + " + at
+                    + "\nlr.w a1, (a0)",
                     "la a0, d + " + at + "\nsc.w a1, a1, (a0)", "la a0, d + " + at + "\namoswap.w a1, a1, (a0)",
-                    "la a0, d + " + at + "\nc.lw a1, 0(a0)", "la a0, d + " + at + "\nc.sw a1, 0(a0)", "la sp, d + " + at + "\nc.lwsp a1, 0",
+                    "la a0, d + " + at + "\nc.lw a1, 0(a0)", "la a0, d + " + at + "\nc.sw a1, 0(a0)", "la sp, d + " + at
+                    + "\nc.lwsp a1, 0",
                     "la sp, d + " + at + "\nc.swsp a1, 0");
         }
     }
@@ -238,21 +257,25 @@ public final class EdgeHartTest {
     private static void loads() {
         c.sentence("the hart", "6 LOAD: a byte isn't there, or its page may not be read");
         for (String op : new String[] {"lb", "lbu", "lh", "lhu", "lw"}) {
-            t.ends(11, "li a0, 2048\n" + op + " a1, 0(a0)", "li a0, 61436\n" + op + " a1, 0(a0)", "li a0, 65536\n" + op + " a1, 0(a0)");
+            t.ends(11, "li a0, 2048\n" + op + " a1, 0(a0)", "li a0, 61436\n" + op + " a1, 0(a0)", "li a0, 65536\n" + op
+                    + " a1, 0(a0)");
             t.ends(0, op + " a1, 0(zero)", "li a0, 65532\n" + op + " a1, 0(a0)");
         }
-        t.ends(11, "li a0, 2048\nlr.w a1, (a0)", "li a0, 65536\nlr.w a1, (a0)", "li a0, 65536\nc.lw a1, 0(a0)", "li sp, 65536\nc.lwsp a1, 0");
+        t.ends(11, "li a0, 2048\nlr.w a1, (a0)", "li a0, 65536\nlr.w a1, (a0)", "li a0, 65536\nc.lw a1, 0(a0)",
+                "li sp, 65536\nc.lwsp a1, 0");
         t.ends(0, "lr.w a1, (zero)");
     }
 
     private static void stores() {
         c.sentence("the hart", "7 STORE: likewise, written");
         for (String op : new String[] {"sb", "sh", "sw"}) {
-            t.ends(11, "li a0, 2048\n" + op + " a1, 0(a0)", "li a0, 61436\n" + op + " a1, 0(a0)", "li a0, 65536\n" + op + " a1, 0(a0)",
+            t.ends(11, "li a0, 2048\n" + op + " a1, 0(a0)", "li a0, 61436\n" + op + " a1, 0(a0)", "li a0, 65536\n" + op
+                    + " a1, 0(a0)",
                     op + " a1, 0(zero)", "li a0, 1020\n" + op + " a1, 0(a0)");
             t.ends(0, "li a0, 65532\n" + op + " a1, 0(a0)", "li a0, 1028\n" + op + " a1, 0(a0)");
         }
-        t.ends(11, "amoswap.w a1, a1, (zero)", "li a0, 65536\namoadd.w a1, a1, (a0)", "li a0, 65536\nc.sw a1, 0(a0)", "li sp, 65536\nc.swsp a1, 0");
+        t.ends(11, "amoswap.w a1, a1, (zero)", "li a0, 65536\namoadd.w a1, a1, (a0)", "li a0, 65536\nc.sw a1, 0(a0)",
+                "li sp, 65536\nc.swsp a1, 0");
     }
 
     private static void conditionals() {
@@ -263,7 +286,8 @@ public final class EdgeHartTest {
     }
 
     private static void retired() {
-        c.sentence("the hart", "What is carried out is RETIRED (of all processes together, counted from 0 on, 64 bits).");
+        c.sentence("the hart", "What is carried out is RETIRED (of all processes together, counted from 0 on, 64"
+                + " bits).");
         TimeMachine x = c.booted("nop\nli a7, 1\necall\nnop\nli a7, 15\necall\nnop\nebreak");
         c.same("at first", x.count(14), 0);
         x.run(2);
@@ -316,7 +340,8 @@ public final class EdgeHartTest {
 
     private static void branches() {
         c.sentence("long ones", "if F 0 a = b, 1 a is another, 4 a < b, 5 not, 6 and 7 likewise unsigned");
-        int[][] pairs = {{0, 0}, {0, 1}, {1, 0}, {-1, 0}, {0, -1}, {LEAST, MOST}, {MOST, LEAST}, {-1, -1}, {LEAST, LEAST}, {-2, -1}};
+        int[][] pairs = {{0, 0}, {0, 1}, {1, 0}, {-1, 0}, {0, -1}, {LEAST, MOST}, {MOST, LEAST}, {-1, -1},
+            {LEAST, LEAST}, {-2, -1}};
         for (int[] it : pairs) {
             boolean less = it[0] < it[1];
             boolean below = (it[0] & 0xffffffffL) < (it[1] & 0xffffffffL);
@@ -333,7 +358,8 @@ public final class EdgeHartTest {
     }
 
     private static void loadedNumbers() {
-        c.sentence("long ones", "0x03, at a + I: F 0 a byte, 1 a half, 2 a word, the first two signed, 4 and 5 unsigned: d.");
+        c.sentence("long ones", "0x03, at a + I: F 0 a byte, 1 a half, 2 a word, the first two signed, 4 and 5"
+                + " unsigned: d.");
         String begin = "la a0, 1f\nj 2f\n.align 2\n1: .byte 0x80, 0xff, 0x7f, 0\n.half 0x8000, 0x7fff, 0xffff\n2: ";
         int[] bytes = {-128, -1, 127, 0};
         for (int i = 0; i < bytes.length; i++) {
@@ -369,11 +395,13 @@ public final class EdgeHartTest {
 
     private static void comparisons() {
         c.sentence("long ones", "2 whether a < I (1, 0), 3 likewise unsigned (I as 32 bits)");
-        int[][] pairs = {{-2048, -2048}, {-2049, -2048}, {2047, 2047}, {2046, 2047}, {2048, 2047}, {0, -1}, {-1, 0}, {LEAST, -2048},
+        int[][] pairs = {{-2048, -2048}, {-2049, -2048}, {2047, 2047}, {2046, 2047}, {2048, 2047}, {0, -1}, {-1, 0},
+            {LEAST, -2048},
             {MOST, 2047}, {-1, -1}, {-2, -1}, {0, 1}};
         for (int[] it : pairs) {
             t.gives("li a0, " + it[0] + "\nslti a2, a0, " + it[1], it[0] < it[1] ? 1 : 0);
-            t.gives("li a0, " + it[0] + "\nsltiu a2, a0, " + it[1], (it[0] & 0xffffffffL) < (it[1] & 0xffffffffL) ? 1 : 0);
+            t.gives("li a0, " + it[0] + "\nsltiu a2, a0, " + it[1],
+                    (it[0] & 0xffffffffL) < (it[1] & 0xffffffffL) ? 1 : 0);
             t.with("slt", it[0], it[1], it[0] < it[1] ? 1 : 0);
             t.with("sltu", it[0], it[1], (it[0] & 0xffffffffL) < (it[1] & 0xffffffffL) ? 1 : 0);
         }
@@ -404,8 +432,8 @@ public final class EdgeHartTest {
     }
 
     private static void products() {
-        c.sentence("long ones", "F 0 a * b, its lowest 32 bits; the highest 32 of the 64 bits of 1 both signed, 2 a signed, b unsigned, 3 both"
-                + " unsigned");
+        c.sentence("long ones", "F 0 a * b, its lowest 32 bits; the highest 32 of the 64 bits of 1 both signed, 2 a"
+                + " signed, b unsigned, 3 both unsigned");
         int[] some = {0, 1, -1, LEAST, MOST, 65536, 2};
         for (int a : some) {
             for (int b : some) {
@@ -420,8 +448,8 @@ public final class EdgeHartTest {
     }
 
     private static void quotients() {
-        c.sentence("long ones", "4 a / b (towards 0), 5 unsigned, 6 a remainder b (with the sign of a), 7 unsigned; divided by 0: -1, and a as"
-                + " remainder.");
+        c.sentence("long ones", "4 a / b (towards 0), 5 unsigned, 6 a remainder b (with the sign of a), 7 unsigned;"
+                + " divided by 0: -1, and a as remainder.");
         for (int a : new int[] {0, 7, -7, LEAST, MOST, -1}) {
             t.with("div", a, 0, -1);
             t.with("divu", a, 0, -1);
@@ -456,8 +484,8 @@ public final class EdgeHartTest {
     }
 
     private static void atomics() {
-        c.sentence("long ones", "Others: d is the word (signed), which becomes: K 1 b, 0 word + b, 4 word ^ b, 12 word & b, 8 word | b, 16 the"
-                + " less, 20 the greater, 24 and 28 likewise unsigned.");
+        c.sentence("long ones", "Others: d is the word (signed), which becomes: K 1 b, 0 word + b, 4 word ^ b, 12"
+                + " word & b, 8 word | b, 16 the less, 20 the greater, 24 and 28 likewise unsigned.");
         int[][] pairs = {{MOST, 1}, {LEAST, MOST}, {-1, 0}, {0, -1}, {5, 5}, {LEAST, LEAST}, {1, 2}};
         for (int[] it : pairs) {
             int w = it[0];
@@ -488,7 +516,8 @@ public final class EdgeHartTest {
     }
 
     private static void reservedOnce() {
-        c.sentence("long ones", "K 3: if the word is reserved, it becomes b and d is 0, else d is 1; nothing is reserved then.");
+        c.sentence("long ones", "K 3: if the word is reserved, it becomes b and d is 0, else d is 1; nothing is"
+                + " reserved then.");
         t.gives(RESERVE + "sc.w a3, a1, (a0)\nlw a2, 0(a0)", 9);
         t.gives(RESERVE + "sc.w a3, a1, (a0)" + STORE, 1);
         t.gives("la a0, d\nli a1, 9\nli a2, 7\nsc.w a2, a1, (a0)", 1);
@@ -506,7 +535,8 @@ public final class EdgeHartTest {
     }
 
     private static void reservedWritten() {
-        c.sentence("long ones", "Whatever writes a byte of the reserved word - a store, another atomic one, the kernel - ends that, too");
+        c.sentence("long ones", "Whatever writes a byte of the reserved word - a store, another atomic one, the"
+                + " kernel - ends that, too");
         String begin = "la a0, d + 4\nli a1, 9\nlr.w a3, (a0)\n";
         String end = "\nla a0, d + 4\nsc.w a2, a1, (a0)";
         for (int at = -2; at < 6; at++) {
@@ -547,14 +577,17 @@ public final class EdgeHartTest {
     }
 
     private static void reservedByOthers() {
-        c.sentence("a tick", "a tick of another process than the one before makes it no more reserved (a YIELD to itself does not)");
+        c.sentence("a tick", "a tick of another process than the one before makes it no more reserved (a YIELD to"
+                + " itself does not)");
         t.gives(RESERVE + "li a7, 15\necall" + STORE, 0);
         // The child's ticks come in between; its copy of the word is another one.
-        TimeMachine x = c.booted("la a0, d\nlr.w a1, (a0)\nli a7, 1\necall\nbeqz a0, 1f\nli a7, 15\necall\nla a0, d\nsc.w s0, a1, (a0)\n"
+        TimeMachine x = c.booted("la a0, d\nlr.w a1, (a0)\nli a7, 1\necall\nbeqz a0, 1f\nli a7, 15\necall\nla a0, d\n"
+                + "sc.w s0, a1, (a0)\n"
                 + "li a7, 21\necall\n1: li a7, 21\necall\n.data\nd: .word 1");
         x.run(1000);
         c.same("the parent's word was reserved no more", x.register(0, 8), 1);
-        TimeMachine y = c.booted("la a0, d\nlr.w a1, (a0)\nli a7, 1\necall\nbeqz a0, 1f\nla a0, d\nsc.w s0, a1, (a0)\nli a7, 15\necall\n"
+        TimeMachine y = c.booted("la a0, d\nlr.w a1, (a0)\nli a7, 1\necall\nbeqz a0, 1f\nla a0, d\nsc.w s0, a1, (a0)\n"
+                + "li a7, 15\necall\n"
                 + "li a7, 21\necall\n1: la a0, d\nsc.w s0, a1, (a0)\nli a7, 21\necall\n.data\nd: .word 1");
         y.run(1000);
         c.same("a fork is no tick of another", y.register(0, 8), 0);
@@ -592,7 +625,8 @@ public final class EdgeHartTest {
     }
 
     private static void counters() {
-        c.sentence("long ones", "0xc00 and 0xc02 the lower half of how many were retired, 0xc80 and 0xc82 the upper, 0xc01 and 0xc81 of the CLOCK");
+        c.sentence("long ones", "0xc00 and 0xc02 the lower half of how many were retired, 0xc80 and 0xc82 the upper,"
+                + " 0xc01 and 0xc81 of the CLOCK");
         t.gives("rdcycle a2", 0);
         t.gives("nop\nrdinstret a2", 1);
         t.gives("nop\nrdcycleh a2", 0);
@@ -613,7 +647,8 @@ public final class EdgeHartTest {
         for (int f = 0; f < 8; f++) {
             boolean good = f == 2 || f == 3 || f == 6 || f == 7;
             t.ends(good ? 0 : 4, ".word 0x73 | " + f + " << 12 | 10 << 7 | 0xc00 << 20");
-            t.ends(4, ".word 0x73 | " + f + " << 12 | 1 << 15 | 0xc00 << 20", ".word 0x73 | " + f + " << 12 | 16 << 15 | 0xc00 << 20");
+            t.ends(4, ".word 0x73 | " + f + " << 12 | 1 << 15 | 0xc00 << 20", ".word 0x73 | " + f
+                    + " << 12 | 16 << 15 | 0xc00 << 20");
         }
         c.sentence("long ones", "other counters are illegal.");
         for (int number : new int[] {0, 1, 0x300, 0xbff, 0xc03, 0xc7f, 0xc83, 0xcff, 0xd00, 0xfff, 0x400, 0x402}) {
@@ -624,7 +659,8 @@ public final class EdgeHartTest {
         }
         c.sentence("long ones", "0x73: the whole 0x00000073 CALL, 0x00100073 BREAK");
         t.ends(5, "ebreak", "c.ebreak");
-        t.ends(4, ".word 0x000000f3", ".word 0x00008073", ".word 0x00200073", ".word 0x001000f3", ".word 0x00108073", ".word 0x80000073");
+        t.ends(4, ".word 0x000000f3", ".word 0x00008073", ".word 0x00200073", ".word 0x001000f3", ".word 0x00108073",
+                ".word 0x80000073");
         t.ends(0, "li a7, 4\necall");
     }
 
@@ -639,7 +675,8 @@ public final class EdgeHartTest {
             t.gives("la a0, d\nli a1, 77\nsw a1, " + u + "(a0)\nc.lw a2, " + u + "(a0)", 77);
             t.gives("la a0, d\nli a1, 77\nc.sw a1, " + u + "(a0)\nlw a2, " + u + "(a0)", 77);
         }
-        c.sentence("short ones", "F 3, D 2: x2 += bits 12, 2 .. 6: [9] and [4|6|8:7|5], signed, not 0; another D: x D = N << 12, N not 0.");
+        c.sentence("short ones", "F 3, D 2: x2 += bits 12, 2 .. 6: [9] and [4|6|8:7|5], signed, not 0; another D: x D"
+                + " = N << 12, N not 0.");
         for (int e : new int[] {-512, -256, -16, 16, 32, 64, 128, 256, 496}) {
             t.gives("c.addi16sp " + e + "\nmv a2, sp", 65536 + e);
         }

@@ -1,4 +1,4 @@
-/** The boundary cases that the document names of the log: varints, entries, packing, reading, promises 11 and 30 to 32. */
+/** The boundary cases that the document names of the log, of packing and reading it: promises 11, 30 to 32. */
 public final class EdgeLogTest {
     private static final Checks c = new Checks();
     private static final String LOOP = "1: addi s0, s0, 1\nj 1b";
@@ -93,8 +93,10 @@ public final class EdgeLogTest {
     }
 
     private static void packedVarints() {
-        c.sentence("the log", "seven bits in each byte, the lowest first, and 128 more in each but the last, as few bytes as can be.");
-        long[] numbers = {0, 1, 127, 128, 129, 255, 256, 16383, 16384, 2097151, 2097152, 268435455, 268435456, (1L << 35) - 1, 1L << 35,
+        c.sentence("the log", "seven bits in each byte, the lowest first, and 128 more in each but the last, as few"
+                + " bytes as can be.");
+        long[] numbers = {0, 1, 127, 128, 129, 255, 256, 16383, 16384, 2097151, 2097152, 268435455, 268435456,
+            (1L << 35) - 1, 1L << 35,
             (1L << 40) - 1, 1L << 40};
         int[] lengths = {1, 1, 1, 2, 2, 2, 2, 2, 3, 3, 4, 4, 5, 5, 6, 6, 6};
         for (int i = 0; i < numbers.length; i++) {
@@ -125,7 +127,8 @@ public final class EdgeLogTest {
         x.outside(RANDOM, 0xffffffffL, 0);
         x.outside(TYPED, 0, 1);
         x.outside(TYPED, -1, 8);
-        packed("each kind", x, "08" + "f064" + "0000" + "fa0f" + "0a01" + "0c00000000" + "0cffffffff" + "1900" + "89ffffffffffffffff");
+        packed("each kind", x, "08" + "f064" + "0000" + "fa0f" + "0a01" + "0c00000000" + "0cffffffff" + "1900"
+                + "89ffffffffffffffff");
     }
 
     private static void firstDifference() {
@@ -157,8 +160,8 @@ public final class EdgeLogTest {
     }
 
     private static void packedRuns() {
-        c.sentence("packing", "those that are like the event before in all (kind, difference, what they bring) are one RUN, as many as there are (X for n up to"
-                + " 15, else the varint)");
+        c.sentence("packing", "those that are like the event before in all (kind, difference, what they bring) are"
+                + " one RUN, as many as there are (X for n up to 15, else the varint)");
         for (int n : new int[] {1, 2, 14, 15, 16, 17, 100, 127, 128, 2047}) {
             String run = n <= 15 ? hex(5 | n << 4) : "05" + varint(n);
             TimeMachine x = read(n + 1, varint(n + 1) + "0b07" + "05" + varint(n));
@@ -199,7 +202,8 @@ public final class EdgeLogTest {
     }
 
     private static void typedAgain() {
-        c.sentence("packing", "TYPED with k, if one of the 20 latest TYPED events before has the same bytes, two or more (the least such k)");
+        c.sentence("packing", "TYPED with k, if one of the 20 latest TYPED events before has the same bytes, two or"
+                + " more (the least such k)");
         TimeMachine x = c.booted(LOOP);
         x.outside(TYPED, 0x4142, 2);
         x.outside(TYPED, 0x43, 1);
@@ -267,7 +271,8 @@ public final class EdgeLogTest {
         c.same("SIGNAL 31 can't be taken", x.run(1), 0);
         c.same("reason", x.reason(), 5);
         x = read(5, "05" + "08" + "0a0f" + "0cffffffff" + "19ff" + "898000000000000001");
-        long[][] due = {{0, 0, 0, 0}, {2, 0, 0, 15}, {4, 0, 0xffffffffL, 0}, {1, 0, 255, 1}, {1, 0, 0x8000000000000001L, 8}};
+        long[][] due = {{0, 0, 0, 0}, {2, 0, 0, 15}, {4, 0, 0xffffffffL, 0}, {1, 0, 255, 1},
+            {1, 0, 0x8000000000000001L, 8}};
         for (int k = 0; k < due.length; k++) {
             for (int what = 0; what < 4; what++) {
                 c.same("event(" + k + ", " + what + ")", x.event(k, what), due[k][what]);
@@ -298,8 +303,8 @@ public final class EdgeLogTest {
     }
 
     private static void readTyped() {
-        c.sentence("the log", "TYPED: X (1 .. 8) bytes, as they were typed; with X 0 a varint k, 1 or more: the same bytes as the k-th TYPED event before (1 the latest"
-                + " one).");
+        c.sentence("the log", "TYPED: X (1 .. 8) bytes, as they were typed; with X 0 a varint k, 1 or more: the same"
+                + " bytes as the k-th TYPED event before (1 the latest one).");
         TimeMachine x = read(5, "05" + "1961" + "296263" + "0b01" + "0901" + "0903");
         c.same("typed", Checks.held(x, 0, 0), "abcbca");
         // The 129th TYPED event before: a k of two bytes, more than packing would look back.
@@ -322,8 +327,8 @@ public final class EdgeLogTest {
     }
 
     private static void readRuns() {
-        c.sentence("the log", "RUN: bit 3 is 0, and no difference follows; the event before comes n times more, with its difference and all that it brings: n is X, or"
-                + " with X 0 a varint.");
+        c.sentence("the log", "RUN: bit 3 is 0, and no difference follows; the event before comes n times more, with"
+                + " its difference and all that it brings: n is X, or with X 0 a varint.");
         TimeMachine x = read(16, "10" + "030207" + "f5");
         x.run(40);
         for (int k = 0; k < 16; k++) {
@@ -343,12 +348,14 @@ public final class EdgeLogTest {
     }
 
     private static void faultOne() {
-        c.sentence("reading", "1 a head that is not as said (a kind 6 or 7; X: TYPED above 8, CLOCK above 1, RANDOM not 0; RUN with bit 3), at it.");
+        c.sentence("reading", "1 a head that is not as said (a kind 6 or 7; X: TYPED above 8, CLOCK above 1, RANDOM"
+                + " not 0; RUN with bit 3), at it.");
         for (int head = 0; head < 256; head++) {
             int kind = head & 7;
             int x = head >> 4;
             boolean same = (head & 8) != 0;
-            boolean wrong = kind > 5 || kind == 1 && x > 8 || kind == 3 && x > 1 || kind == 4 && x != 0 || kind == 5 && same;
+            boolean wrong = kind > 5 || kind == 1 && x > 8 || kind == 3 && x > 1 || kind == 4 && x != 0 || kind == 5
+                    && same;
             if (wrong) {
                 fault(1, 1, "01" + hex(head));
                 fault(1, 3, "02" + "0b05" + hex(head) + "0000");
@@ -379,7 +386,8 @@ public final class EdgeLogTest {
     }
 
     private static void faultThree() {
-        c.sentence("reading", "3 a varint that is longer than it must be, or above 2^40, at its last byte (at its seventh, when this is no last one).");
+        c.sentence("reading", "3 a varint that is longer than it must be, or above 2^40, at its last byte (at its"
+                + " seventh, when this is no last one).");
         fault(3, 1, "8000");
         fault(3, 2, "808000");
         fault(3, 5, "808080808000");
@@ -405,8 +413,9 @@ public final class EdgeLogTest {
     }
 
     private static void faultFour() {
-        c.sentence("reading", "4 there is no event before that is meant (RUN as the first entry; k above how many TYPED ones there are; CLOCK with X 1 without one), at the"
-                + " head; asked when the difference, and k, are read.");
+        c.sentence("reading", "4 there is no event before that is meant (RUN as the first entry; k above how many"
+                + " TYPED ones there are; CLOCK with X 1 without one), at the head; asked when the difference, and k,"
+                + " are read.");
         fault(4, 1, "0115");
         fault(4, 1, "0105");
         fault(4, 1, "01050000");
@@ -446,7 +455,8 @@ public final class EdgeLogTest {
     }
 
     private static void faultSix() {
-        c.sentence("reading", "6 more events than said at the beginning, at the head that brings the first one too many (for a RUN: when its n is read)");
+        c.sentence("reading", "6 more events than said at the beginning, at the head that brings the first one too"
+                + " many (for a RUN: when its n is read)");
         fault(6, 3, "020b0525");
         fault(6, 3, "020b0505" + "02");
         fault(6, 3, "020b0505" + "808080808020");
@@ -463,7 +473,8 @@ public final class EdgeLogTest {
     }
 
     private static void faultSeven() {
-        c.sentence("reading", "7 a byte behind the last event, at it; it is asked for as soon as all events are there.");
+        c.sentence("reading", "7 a byte behind the last event, at it; it is asked for as soon as all events are"
+                + " there.");
         fault(7, 1, "0000");
         fault(7, 1, "0006");
         fault(7, 3, "010b0500");
@@ -476,7 +487,8 @@ public final class EdgeLogTest {
     }
 
     private static void firstFault() {
-        c.sentence("reading", "the first fault, from its first byte to its last, with the place of the byte (from 0 on)");
+        c.sentence("reading", "the first fault, from its first byte to its last, with the place of the byte (from 0"
+                + " on)");
         fault(1, 3, "030b0506" + "07");
         fault(5, 4, "030b050a0006");
         fault(3, 5, "030b0303800006");
@@ -484,8 +496,8 @@ public final class EdgeLogTest {
     }
 
     private static void replays() {
-        c.sentence("promise 11", "without a fault program p is booted, and its events are scheduled (those of count 0 taken at once): how many they are; else -1 - (the"
-                + " fault + 8 * its place), and the machine stays.");
+        c.sentence("promise 11", "without a fault program p is booted, and its events are scheduled (those of count 0"
+                + " taken at once): how many they are; else -1 - (the fault + 8 * its place), and the machine stays.");
         TimeMachine x = new TimeMachine();
         Checks.assemble(x, 0, LOOP);
         Checks.assemble(x, 3, "li s1, 5\nj 0");
@@ -523,13 +535,15 @@ public final class EdgeLogTest {
 
     private static void sameRun() {
         c.sentence("what it is", "the recording, packed into a log, gives the same run again.");
-        TimeMachine x = c.booted("li a7, 1\necall\n1: li a7, 21\necall\nadd s0, s0, a0\nli a7, 6\nli a0, 0\nli a1, 61440\nli a2, 3\necall\nj 1b");
+        TimeMachine x = c.booted("li a7, 1\necall\n1: li a7, 21\necall\nadd s0, s0, a0\nli a7, 6\nli a0, 0\n"
+                + "li a1, 61440\nli a2, 3\necall\nj 1b");
         for (int i = 0; i < 60; i++) {
             x.run(i % 7);
             x.outside(i % 5, i % 5 == 0 || i % 5 == 2 ? i % 2 : i, i % 5 == 2 ? 16 + i % 9 : 1 + i % 4);
         }
         int end = (int) x.count(1);
-        TimeMachine y = c.booted("li a7, 1\necall\n1: li a7, 21\necall\nadd s0, s0, a0\nli a7, 6\nli a0, 0\nli a1, 61440\nli a2, 3\necall\nj 1b");
+        TimeMachine y = c.booted("li a7, 1\necall\n1: li a7, 21\necall\nadd s0, s0, a0\nli a7, 6\nli a0, 0\n"
+                + "li a1, 61440\nli a2, 3\necall\nj 1b");
         Checks.feed(y, Checks.logOf(x));
         c.same("events", y.replay(0), x.count(3));
         c.same("ticks", y.run(end), end);
@@ -538,7 +552,8 @@ public final class EdgeLogTest {
     }
 
     private static void packs() {
-        c.sentence("promise 30", "Packs the events of the recording (all, up to END; there are none when nothing is booted) to a log: how many bytes.");
+        c.sentence("promise 30", "Packs the events of the recording (all, up to END; there are none when nothing is"
+                + " booted) to a log: how many bytes.");
         TimeMachine x = new TimeMachine();
         c.same("nothing booted", x.pack(), 1);
         c.same("its byte", Checks.log(x), "00");
@@ -585,7 +600,8 @@ public final class EdgeLogTest {
     }
 
     private static void events() {
-        c.sentence("promise 32", "(TYPED: a without other bits; RANDOM 0 .. 2^32 - 1; b 0 where it isn't named); -1 when there is none, or for others.");
+        c.sentence("promise 32", "(TYPED: a without other bits; RANDOM 0 .. 2^32 - 1; b 0 where it isn't named); -1"
+                + " when there is none, or for others.");
         TimeMachine x = new TimeMachine();
         c.same("nothing booted", x.event(0, 0), -1);
         Checks.assemble(x, 0, LOOP);
@@ -599,7 +615,8 @@ public final class EdgeLogTest {
         x.outside(SWITCH, 0, 5);
         x.outside(CLOCK, 1L << 40, 5);
         x.outside(SIGNAL, 0, 15);
-        long[][] due = {{1, 0, 255, 1}, {1, 0, (1L << 56) - 1, 7}, {1, 0, -1, 8}, {4, 0, 0xffffffffL, 0}, {4, 0, 0, 0}, {0, 0, 0, 0},
+        long[][] due = {{1, 0, 255, 1}, {1, 0, (1L << 56) - 1, 7}, {1, 0, -1, 8}, {4, 0, 0xffffffffL, 0}, {4, 0, 0, 0},
+            {0, 0, 0, 0},
             {3, 0, 1L << 40, 0}, {2, 0, 0, 15}};
         for (int k = 0; k < due.length; k++) {
             for (int what = 0; what < 4; what++) {

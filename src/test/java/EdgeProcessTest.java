@@ -1,4 +1,4 @@
-/** The boundary cases that the document names of processes: booting, ticks, signals, frames, calls, promises 10, 22 to 24. */
+/** The boundary cases that the document names of processes, signals, frames and calls: promises 10, 22 to 24. */
 public final class EdgeProcessTest {
     private static final Checks c = new Checks();
     private static final Crowd crowd = new Crowd(c);
@@ -10,7 +10,8 @@ public final class EdgeProcessTest {
     /** Forks till no process is absent; then all go round. */
     private static final String MANY = "1: li a7, 1\necall\nmv s0, a0\nbgtz a0, 1b\n2: j 2b";
     /** A child that waits for a random word, and its parent, which waits for the child and keeps the answer in s0. */
-    private static final String PAIR = "li a7, 1\necall\nbeqz a0, 1f\nli a7, 3\necall\nmv s0, a0\nli a7, 21\necall\n1: li a7, 21\necall\n";
+    private static final String PAIR = "li a7, 1\necall\nbeqz a0, 1f\nli a7, 3\necall\nmv s0, a0\nli a7, 21\necall\n"
+            + "1: li a7, 21\necall\n";
 
     public static void main(String[] args) {
         sixteen();
@@ -77,8 +78,9 @@ public final class EdgeProcessTest {
         c.same("there is no sixteenth", x.process(16, 0), 0);
         c.sentence("calls", "1 FORK: the least ABSENT process (FULL without one) is READY");
         c.same("FULL", x.register(0, 8), FULL);
-        // 5 ends and is waited for: it is the least absent one then.
-        Script s = new Script().add(MANY.replace("2: j 2b", "beqz a0, 3f")).call(Script.WAIT).add("mv s1, a0").call(Script.FORK);
+        // 9 ends and is waited for, so it is absent; 5 ends, and is not waited for.
+        Script s = new Script().add(MANY.replace("2: j 2b", "beqz a0, 3f")).call(Script.WAIT).add("mv s1, a0")
+                .call(Script.FORK);
         s.add("mv s2, a0\nbeqz a0, 3f").call(Script.FORK).add("mv s3, a0\n3: ").stay();
         x = s.booted(c);
         x.run(500);
@@ -150,7 +152,8 @@ public final class EdgeProcessTest {
     }
 
     private static void copies() {
-        c.sentence("frames", "may be a copy that stands in the same one until one of both is written: then it comes into one of its own.");
+        c.sentence("frames", "may be a copy that stands in the same one until one of both is written: then it comes"
+                + " into one of its own.");
         String begin = "la t0, d\nli a7, 1\necall\nbeqz a0, 1f\n";
         TimeMachine x = c.booted(begin + "sw sp, 0(t0)\n2: j 2b\n1: sw t0, 0(t0)\n2: j 2b\n.data\nd: .word 1");
         x.run(4);
@@ -177,8 +180,10 @@ public final class EdgeProcessTest {
         c.same("a store into the last frame", crowd.code(Crowd.FREE - 1, store), 5);
         c.same("a store without one", crowd.code(Crowd.FREE, store), 128 + 7);
         c.same("a store to a page of its own", crowd.code(Crowd.FREE, store.replace("16384", "8192")), 5);
-        TimeMachine x = c.booted("li a7, 14\nli a0, 60416\necall\n1: li a7, 1\necall\nbnez a0, 2f\nli t0, 1024\nli t2, 60416\n"
-                + "3: sb t0, 0(t0)\naddi t0, t0, 1024\nbne t0, t2, 3b\nli a7, 4\necall\nj 1b\n2: li a7, 21\necall\n.data\n.byte 1");
+        TimeMachine x = c.booted("li a7, 14\nli a0, 60416\necall\n1: li a7, 1\necall\nbnez a0, 2f\nli t0, 1024\n"
+                + "li t2, 60416\n"
+                + "3: sb t0, 0(t0)\naddi t0, t0, 1024\nbne t0, t2, 3b\nli a7, 4\necall\nj 1b\n2: li a7, 21\necall\n"
+                + ".data\n.byte 1");
         while (x.count(10) < 240) {
             x.run(20);
         }
@@ -191,8 +196,8 @@ public final class EdgeProcessTest {
     }
 
     private static void spaces() {
-        c.sentence("booting", "its bytes from address 0 on, on pages of its text (from 0 up to its size, rights 5) and of its data (rights 3), each"
-                + " as many as are needed, 0 behind");
+        c.sentence("booting", "its bytes from address 0 on, on pages of its text (from 0 up to its size, rights 5)"
+                + " and of its data (rights 3), each as many as are needed, 0 behind");
         int[][] sizes = {{0, 0}, {0, 1}, {1, 0}, {1, 1}, {1023, 1024}, {1024, 1025}, {1025, 1023}, {2048, 2049}};
         for (int[] size : sizes) {
             TimeMachine x = c.booted(".space " + size[0] + "\n.data\n.space " + size[1]);
@@ -222,13 +227,14 @@ public final class EdgeProcessTest {
         c.sentence("booting", "the pages 60 .. 63 with 0, rights 3 (the STACK)");
         Steps t = new Steps(c);
         t.ends(0, "li a0, 61440\nsb a0, 0(a0)", "li a0, 65535\nsb a0, 0(a0)", "li a0, 61440\nlw a1, 0(a0)\nbnez a1, 0");
-        t.ends(11, "li a0, 61440\njr a0", "li a0, 61439\nsb a0, 0(a0)", "sb a0, 0(zero)", "la a0, d\njr a0", "li a0, 65534\njr a0");
+        t.ends(11, "li a0, 61440\njr a0", "li a0, 61439\nsb a0, 0(a0)", "sb a0, 0(zero)", "la a0, d\njr a0",
+                "li a0, 65534\njr a0");
         t.ends(0, "lb a0, 0(zero)", "la a0, d\nsb a0, 0(a0)", "la a0, d\nlb a0, 0(a0)");
     }
 
     private static void firstRegisters() {
-        c.sentence("booting", "x2 65536, the other registers and the place 0; its parent is -1, its descriptors 0 and 1 are to one opening of the"
-                + " console");
+        c.sentence("booting", "x2 65536, the other registers and the place 0; its parent is -1, its descriptors 0 and"
+                + " 1 are to one opening of the console");
         TimeMachine x = c.booted("nop");
         for (int r = 0; r <= 32; r++) {
             c.same("register " + r, x.register(0, r), r == 2 ? 65536 : 0);
@@ -242,8 +248,10 @@ public final class EdgeProcessTest {
     }
 
     private static void heapBegins() {
-        c.sentence("booting", "its HEAP begins and ends at the first multiple of 1024 that is not below the program's end.");
-        String[] texts = {"", ".space 1", ".space 1024", ".space 1025", ".space 1\n.data\n.byte 1", ".space 1\n.data\n.space 1024",
+        c.sentence("booting", "its HEAP begins and ends at the first multiple of 1024 that is not below the program's"
+                + " end.");
+        String[] texts = {"", ".space 1", ".space 1024", ".space 1025", ".space 1\n.data\n.byte 1",
+            ".space 1\n.data\n.space 1024",
             ".space 1\n.data\n.space 1025", ".space 1\n.data", ".space 32768"};
         int[] due = {0, 1024, 1024, 2048, 2048, 2048, 3072, 1024, 32768};
         for (int i = 0; i < texts.length; i++) {
@@ -260,8 +268,10 @@ public final class EdgeProcessTest {
 
     private static void allAsAtFirst() {
         c.sentence("booting", "BOOTING program p: all is as at first, the count 0");
-        Script s = new Script().data("p: .word 0, 0").data("n: .asciz \"f\"").call(Script.HANDLER, 3, "n").call(Script.PIPE, "p");
-        s.call(Script.WRITE, 3, "n", 2).call(Script.OPEN, "n", 10).call(Script.WRITE, 4, "n", 2).call(Script.WRITE, 1, "n", 2);
+        Script s = new Script().data("p: .word 0, 0").data("n: .asciz \"f\"").call(Script.HANDLER, 3, "n")
+                .call(Script.PIPE, "p");
+        s.call(Script.WRITE, 3, "n", 2).call(Script.OPEN, "n", 10).call(Script.WRITE, 4, "n", 2)
+                .call(Script.WRITE, 1, "n", 2);
         s.call(Script.GROW, 8192).call(Script.FORK).call(Script.SLEEP, 500);
         TimeMachine x = s.booted(c);
         java.util.List<Long> first = TimeSeen.of(x);
@@ -303,7 +313,8 @@ public final class EdgeProcessTest {
         Script s = new Script().call(Script.FORK).add("bnez a0, 9f\nli s2, 1\n1: ").call(Script.HANDLER, "s2", "h");
         s.add("addi s2, s2, 1\nli t0, 16\nbne s2, t0, 1b\nli s1, 0").stay();
         // What a handler counts must not be put back, so it stands in memory.
-        s.add("h: la t0, k\nlw t1, 0(t0)\nslli t1, t1, 4\nadd t1, t1, a0\nsw t1, 0(t0)").call(Script.BACK).add("9: ").stay();
+        s.add("h: la t0, k\nlw t1, 0(t0)\nslli t1, t1, 4\nadd t1, t1, a0\nsw t1, 0(t0)").call(Script.BACK).add("9: ")
+                .stay();
         s.data("k: .word 0");
         TimeMachine x = s.booted(c);
         x.run(500);
@@ -361,7 +372,8 @@ public final class EdgeProcessTest {
         x.run(100);
         c.same("behind BACK", Checks.word(x, 1, x.label(0, 2)), 0x434);
         // Within a handler no call that waits is ended by another signal than 9.
-        TimeMachine y = c.booted("li a7, 17\nli a0, 3\nla a1, h\necall\nli a7, 16\nli a0, 0\nli a1, 3\necall\nnop\nh: li a7, 21\necall");
+        TimeMachine y = c.booted("li a7, 17\nli a0, 3\nla a1, h\necall\nli a7, 16\nli a0, 0\nli a1, 3\necall\nnop\n"
+                + "h: li a7, 21\necall");
         y.run(100);
         c.same("waits within", y.process(0, 7), 21);
         y.outside(2, 0, 3);
@@ -391,7 +403,8 @@ public final class EdgeProcessTest {
     }
 
     private static void saved() {
-        c.sentence("a tick", "else its registers and place are SAVED, it is within a handler, x10 is the signal, the place is that of the handler.");
+        c.sentence("a tick", "else its registers and place are SAVED, it is within a handler, x10 is the signal, the"
+                + " place is that of the handler.");
         StringBuilder all = new StringBuilder("li a7, 17\nli a0, 15\nla a1, h\necall\n");
         StringBuilder others = new StringBuilder("h: ");
         for (int r = 1; r < 32; r++) {
@@ -421,9 +434,11 @@ public final class EdgeProcessTest {
     }
 
     private static void traps() {
-        c.sentence("a tick", "11 for FETCH, LOAD and STORE, 4 for ILLEGAL, 5 for BREAK, 7 for MISALIGNED: taken at once as in (1) if it has a handler"
-                + " and is not within one; else it ends with the code 128 + the signal.");
-        String[] lines = {"j 4096", "lw t0, -4(zero)", "sw t0, 0(zero)", ".half 0", "ebreak", "lw t0, 1(zero)", "sh t0, 1(zero)"};
+        c.sentence("a tick", "11 for FETCH, LOAD and STORE, 4 for ILLEGAL, 5 for BREAK, 7 for MISALIGNED: taken at"
+                + " once as in (1) if it has a handler and is not within one; else it ends with the code 128 + the"
+                + " signal.");
+        String[] lines = {"j 4096", "lw t0, -4(zero)", "sw t0, 0(zero)", ".half 0", "ebreak", "lw t0, 1(zero)",
+            "sh t0, 1(zero)"};
         int[] due = {11, 11, 11, 4, 5, 7, 7};
         for (int i = 0; i < lines.length; i++) {
             String begin = "li a7, 17\nli a0, " + due[i] + "\nla a1, h\necall\nli s0, 7\nb: " + lines[i] + "\n";
@@ -467,7 +482,8 @@ public final class EdgeProcessTest {
         c.same("its pages", x.process(1, 5), 0);
         c.same("a byte of it", x.peek(1, 0), -1);
         // The last one that is to a pipe's reading end goes with its process.
-        Script w = new Script().data("p: .word 0, 0").call(Script.PIPE, "p").call(Script.FORK).add("beqz a0, 1f").call(Script.CLOSE, 2);
+        Script w = new Script().data("p: .word 0, 0").call(Script.PIPE, "p").call(Script.FORK).add("beqz a0, 1f")
+                .call(Script.CLOSE, 2);
         w.kept(Script.WRITE, 3, "p", 1);
         w.call(Script.SLEEP, 5);
         w.kept(Script.WRITE, 3, "p", 1);
@@ -482,11 +498,14 @@ public final class EdgeProcessTest {
     }
 
     private static void endedChildren() {
-        c.sentence("ends", "its children have no parent then (those that have ENDED are ABSENT); without a parent it is ABSENT, else ENDED with its code"
-                + " (0 .. 255), until it is waited for.");
-        Script s = new Script().call(Script.FORK).add("bnez a0, 9f").call(Script.FORK).add("beqz a0, 2f").call(Script.FORK).add("beqz a0, 3f");
-        s.call(Script.SLEEP, 5).call(Script.EXIT, 1).add("2: ").call(Script.EXIT, 2).add("3: ").call(Script.SLEEP, 10).call(Script.EXIT, 3);
-        s.add("9: ").call(Script.SLEEP, 20).call(Script.WAIT).add("mv s0, a0").call(Script.WAIT).add("mv s1, a0").call(Script.EXIT, 0);
+        c.sentence("ends", "its children have no parent then (those that have ENDED are ABSENT); without a parent it"
+                + " is ABSENT, else ENDED with its code (0 .. 255), until it is waited for.");
+        Script s = new Script().call(Script.FORK).add("bnez a0, 9f").call(Script.FORK).add("beqz a0, 2f")
+                .call(Script.FORK).add("beqz a0, 3f");
+        s.call(Script.SLEEP, 5).call(Script.EXIT, 1).add("2: ").call(Script.EXIT, 2).add("3: ").call(Script.SLEEP, 10)
+                .call(Script.EXIT, 3);
+        s.add("9: ").call(Script.SLEEP, 20).call(Script.WAIT).add("mv s0, a0").call(Script.WAIT).add("mv s1, a0")
+                .call(Script.EXIT, 0);
         TimeMachine x = s.booted(c);
         x.run(1000);
         c.same("a child that has ENDED", x.process(2, 0), 3);
@@ -514,7 +533,8 @@ public final class EdgeProcessTest {
         c.sentence("calls", "0 EXIT: it ends with the code a & 255.");
         int[] given = {0, 1, 255, 256, 257, -1, -256, Integer.MIN_VALUE, Integer.MAX_VALUE};
         for (int a : given) {
-            TimeMachine x = c.booted("li a7, 1\necall\nbeqz a0, 1f\nli a7, 3\necall\nmv s0, a0\nli a7, 21\necall\n1: li a0, " + a
+            TimeMachine x = c.booted("li a7, 1\necall\nbeqz a0, 1f\nli a7, 3\necall\nmv s0, a0\nli a7, 21\necall\n"
+                    + "1: li a0, " + a
                     + "\nli a7, 0\necall");
             x.run(100);
             c.same("what WAIT answers for " + a, x.register(0, 8), 1 + 256 * (a & 255));
@@ -522,7 +542,8 @@ public final class EdgeProcessTest {
     }
 
     private static void answers() {
-        c.sentence("calls", "what it ANSWERS comes into x10, and the place is 4 more. A call that must WAIT does neither");
+        c.sentence("calls", "what it ANSWERS comes into x10, and the place is 4 more. A call that must WAIT does"
+                + " neither");
         TimeMachine x = c.booted("li a0, 7\nli a7, 4\necall\nli a0, 7\nli a7, 21\necall\nnop");
         x.run(2);
         int place = x.register(0, 32);
@@ -544,8 +565,8 @@ public final class EdgeProcessTest {
     }
 
     private static void waitsAndSignals() {
-        c.sentence("calls", "and is READY as soon as it would not have to wait any more (all for whom that is so), or a signal that can be taken is"
-                + " pending: then it makes the call anew when it runs.");
+        c.sentence("calls", "and is READY as soon as it would not have to wait any more (all for whom that is so), or"
+                + " a signal that can be taken is pending: then it makes the call anew when it runs.");
         TimeMachine x = c.booted(MANY.replace("2: j 2b", "li a7, 21\necall\nmv s1, a0\nli a7, 21\necall"));
         x.run(1000);
         c.same("all wait", x.count(2), -1);
@@ -573,6 +594,24 @@ public final class EdgeProcessTest {
         c.same("READY", y.process(0, 0), 1);
         y.run(1);
         c.same("it waits anew", y.process(0, 7), 21);
+        signalledByCall();
+    }
+
+    /** Of two children that wait, one within its handler, a SIGNAL makes the other READY. */
+    private static void signalledByCall() {
+        Script s = new Script().call(Script.FORK).add("beqz a0, 1f").call(Script.FORK).add("beqz a0, 2f")
+                .call(Script.SLEEP, 5);
+        s.call(Script.SIGNAL, 1, 3).call(Script.SIGNAL, 2, 3).add("e: ").call(Script.SLEEP, 5).add("1: ")
+                .call(Script.HANDLER, 3, "h").stay();
+        s.add("2: ").call(Script.HANDLER, 3, "h").call(Script.SIGNAL, 2, 3).stay().add("h: ").stay();
+        TimeMachine x = s.booted(c);
+        x.run(1000);
+        c.same("one is within its handler", x.process(1, 4) * 10 + x.process(2, 4), 1);
+        x.outside(3, 5, 0);
+        c.runTo(x, x.label(0, 0));
+        c.same("READY, as a signal can be taken", x.process(1, 0), 1);
+        c.same("WAITING, as none can", x.process(2, 0), 2);
+        c.same("it is pending", x.process(2, 3), 1 << 3);
     }
 
     private static void otherCalls() {
@@ -613,10 +652,12 @@ public final class EdgeProcessTest {
     }
 
     private static void forks() {
-        c.sentence("calls", "a child with the same registers (but x10 0), place 4 more, copies of its pages, descriptors, handlers, heap, saved ones and"
-                + " whether it is within a handler; nothing pending, sleeping towards nothing.");
+        c.sentence("calls", "a child with the same registers (but x10 0), place 4 more, copies of its pages,"
+                + " descriptors, handlers, heap, saved ones and whether it is within a handler; nothing pending,"
+                + " sleeping towards nothing.");
         // Within the handler of 3 it forks; both then go BACK.
-        Script s = new Script().call(Script.HANDLER, 3, "h").call(Script.GROW, 5000).add("li s0, 40").call(Script.SIGNAL, 0, 3).stay();
+        Script s = new Script().call(Script.HANDLER, 3, "h").call(Script.GROW, 5000).add("li s0, 40")
+                .call(Script.SIGNAL, 0, 3).stay();
         s.add("h: ").call(Script.SIGNAL, 0, 5).add("li s0, 50\nli a7, 1\nf: ecall\nmv s1, a0").call(Script.BACK);
         TimeMachine x = s.booted(c);
         int fork = x.label(0, 1);
@@ -647,7 +688,8 @@ public final class EdgeProcessTest {
         x.run(1);
         c.same("the handler", x.register(1, 32), x.label(0, 0));
         // A parent that sleeps towards something when a handler forks: its child sleeps anew.
-        Script z = new Script().call(Script.HANDLER, 3, "h").call(Script.SLEEP, 10).add("li s0, 1").stay().add("h: ").call(Script.FORK);
+        Script z = new Script().call(Script.HANDLER, 3, "h").call(Script.SLEEP, 10).add("li s0, 1").stay().add("h: ")
+                .call(Script.FORK);
         z.call(Script.BACK);
         TimeMachine y = z.booted(c);
         y.run(100);
@@ -664,10 +706,12 @@ public final class EdgeProcessTest {
     }
 
     private static void execs() {
-        c.sentence("calls", "registers and place as when booting, no handlers, is within none, sleeps towards nothing; no word is reserved; descriptors"
-                + " and pending signals stay; it answers nothing.");
-        Script s = new Script().data("p: .word 0, 0").call(Script.PIPE, "p").call(Script.HANDLER, 3, "h").call(Script.HANDLER, 5, "h");
-        s.call(Script.SLEEP, 10).add("h: ").call(Script.SIGNAL, 0, 5).add("li s0, 9\nli s11, 9\nli a0, 1\nli a7, 2\ne: ecall");
+        c.sentence("calls", "registers and place as when booting, no handlers, is within none, sleeps towards"
+                + " nothing; no word is reserved; descriptors and pending signals stay; it answers nothing.");
+        Script s = new Script().data("p: .word 0, 0").call(Script.PIPE, "p").call(Script.HANDLER, 3, "h")
+                .call(Script.HANDLER, 5, "h");
+        s.call(Script.SLEEP, 10).add("h: ").call(Script.SIGNAL, 0, 5)
+                .add("li s0, 9\nli s11, 9\nli a0, 1\nli a7, 2\ne: ecall");
         TimeMachine x = new TimeMachine();
         Checks.assemble(x, 0, s.source());
         Checks.assemble(x, 1, "li a7, 19\nli a0, 5\necall\nli s1, 4\nli a7, 21\necall\n.data\n.space 3000");
@@ -733,7 +777,8 @@ public final class EdgeProcessTest {
     }
 
     private static void execFrames() {
-        c.sentence("calls", "FULL, if the frames that are free, its old pages being there still, are fewer than its pages, with the STACK's");
+        c.sentence("calls", "FULL, if the frames that are free, its old pages being there still, are fewer than its"
+                + " pages, with the STACK's");
         // The program has one page of text and the stack's four.
         c.same("five are free", crowd.code(2, Script.EXEC, 1), 77);
         c.same("four are free", crowd.code(3, Script.EXEC, 1), FULL & 255);
@@ -742,14 +787,17 @@ public final class EdgeProcessTest {
     }
 
     private static void waits() {
-        c.sentence("calls", "3 WAIT: the least child that has ENDED is ABSENT; answers it + 256 * its code; NONE, if it has no children, else it waits.");
+        c.sentence("calls", "3 WAIT: the least child that has ENDED is ABSENT; answers it + 256 * its code; NONE, if"
+                + " it has no children, else it waits.");
         Script s = new Script();
         s.kept(Script.WAIT);
-        s.call(Script.FORK).add("beqz a0, 1f").call(Script.FORK).add("beqz a0, 2f").call(Script.FORK).add("beqz a0, 3f").call(Script.SLEEP, 5);
+        s.call(Script.FORK).add("beqz a0, 1f").call(Script.FORK).add("beqz a0, 2f").call(Script.FORK).add("beqz a0, 3f")
+                .call(Script.SLEEP, 5);
         for (int i = 0; i < 4; i++) {
             s.kept(Script.WAIT);
         }
-        s.stay().add("1: ").call(Script.SLEEP, 3).call(Script.EXIT, 255).add("2: ").call(Script.SLEEP, 2).call(Script.EXIT, 0);
+        s.stay().add("1: ").call(Script.SLEEP, 3).call(Script.EXIT, 255).add("2: ").call(Script.SLEEP, 2)
+                .call(Script.EXIT, 0);
         s.add("3: ").call(Script.SLEEP, 9).call(Script.EXIT, 7);
         TimeMachine x = s.booted(c);
         x.run(1000);
@@ -782,8 +830,10 @@ public final class EdgeProcessTest {
     private static void heapBounds() {
         c.sentence("calls", "if this is not below its beginning nor above 61440 - 1024 (else INVALID)");
         Script s = new Script();
-        int[] given = {2047, 2048, 60416, 60417, 61440, 65536, -1, Integer.MIN_VALUE, Integer.MAX_VALUE, 0, 60415, 2049, 2048};
-        int[] due = {INVALID, 2048, 2048, INVALID, INVALID, INVALID, INVALID, INVALID, INVALID, INVALID, 60416, 60415, 2049};
+        int[] given = {2047, 2048, 60416, 60417, 61440, 65536, -1, Integer.MIN_VALUE, Integer.MAX_VALUE, 0, 60415, 2049,
+            2048};
+        int[] due = {INVALID, 2048, 2048, INVALID, INVALID, INVALID, INVALID, INVALID, INVALID, INVALID, 60416, 60415,
+            2049};
         for (int a : given) {
             s.kept(Script.GROW, a);
         }
@@ -805,9 +855,11 @@ public final class EdgeProcessTest {
             c.same("the last page", x.peek(0, 2048 + 1024 * pages[i] - 1), 0);
             c.same("no page behind", x.peek(0, 2048 + 1024 * pages[i]), -1);
         }
-        c.sentence("calls", "pages that are new have 0 and rights 3 (FULL, if there are not as many frames), those no more needed are absent");
+        c.sentence("calls", "pages that are new have 0 and rights 3 (FULL, if there are not as many frames), those no"
+                + " more needed are absent");
         String touch = "li t0, 3000\nli t1, 7\nsb t1, 0(t0)";
-        Script s = new Script().call(Script.GROW, 4096).add(touch).call(Script.GROW, 3072).add("li t0, 3000\nlbu s0, 0(t0)");
+        Script s = new Script().call(Script.GROW, 4096).add(touch).call(Script.GROW, 3072)
+                .add("li t0, 3000\nlbu s0, 0(t0)");
         s.call(Script.GROW, 2048).call(Script.GROW, 3072).add("li t0, 3000\nlbu s1, 0(t0)\nj 2100");
         TimeMachine x = s.booted(c);
         x.run(100);
@@ -835,7 +887,8 @@ public final class EdgeProcessTest {
     }
 
     private static void yields() {
-        c.sentence("calls", "15 YIELD: the next READY process behind it in the ring is the current one (itself, if there is no other); answers 0.");
+        c.sentence("calls", "15 YIELD: the next READY process behind it in the ring is the current one (itself, if"
+                + " there is no other); answers 0.");
         TimeMachine x = c.booted("li a0, 5\nli a7, 15\necall\nmv s0, a0");
         x.run(3);
         c.same("itself", x.count(2), 0);
@@ -857,10 +910,13 @@ public final class EdgeProcessTest {
     }
 
     private static void signalNumbers() {
-        c.sentence("calls", "16 SIGNAL: b (1 .. 15) is pending for process a (0 .. 15; INVALID; NONE, if it is ABSENT or has ENDED); answers 0.");
-        Script s = new Script().call(Script.HANDLER, 1, "h").call(Script.HANDLER, 15, "h").call(Script.FORK).add("beqz a0, 1f");
+        c.sentence("calls", "16 SIGNAL: b (1 .. 15) is pending for process a (0 .. 15; INVALID; NONE, if it is ABSENT"
+                + " or has ENDED); answers 0.");
+        Script s = new Script().call(Script.HANDLER, 1, "h").call(Script.HANDLER, 15, "h").call(Script.FORK)
+                .add("beqz a0, 1f");
         s.call(Script.YIELD);
-        int[][] given = {{0, 0}, {0, 16}, {0, -1}, {16, 1}, {-1, 1}, {16, 16}, {15, 1}, {15, 15}, {1, 1}, {0, 1}, {0, 15}, {2, 0}};
+        int[][] given = {{0, 0}, {0, 16}, {0, -1}, {16, 1}, {-1, 1}, {16, 16}, {15, 1}, {15, 15}, {1, 1}, {0, 1},
+            {0, 15}, {2, 0}};
         int[] due = {INVALID, INVALID, INVALID, INVALID, INVALID, INVALID, NONE, NONE, NONE, 0, 0, INVALID};
         for (int[] it : given) {
             s.kept(Script.SIGNAL, it[0], it[1]);
@@ -889,7 +945,8 @@ public final class EdgeProcessTest {
 
     private static void backs() {
         c.sentence("calls", "(INVALID, when it is within none); it answers nothing, and the place is that saved.");
-        TimeMachine x = c.booted("li a7, 18\nli a0, 5\necall\nmv s0, a0\nli a7, 17\nli a0, 3\nla a1, h\necall\nli a7, 16\nli a0, 0\nli a1, 3\n"
+        TimeMachine x = c.booted("li a7, 18\nli a0, 5\necall\nmv s0, a0\nli a7, 17\nli a0, 3\nla a1, h\necall\n"
+                + "li a7, 16\nli a0, 0\nli a1, 3\n"
                 + "ecall\nli s1, 6\nli a7, 21\necall\nh: li a7, 18\necall");
         x.run(4);
         c.same("within none", x.register(0, 8), INVALID);
@@ -907,7 +964,8 @@ public final class EdgeProcessTest {
     }
 
     private static void sleeps() {
-        c.sentence("calls", "it sleeps towards the CLOCK + a (unsigned) now; it waits while the CLOCK is less than that");
+        c.sentence("calls", "it sleeps towards the CLOCK + a (unsigned) now; it waits while the CLOCK is less than"
+                + " that");
         Script s = new Script();
         s.kept(Script.SLEEP, 0);
         s.kept(Script.SLEEP, 1);
@@ -940,7 +998,8 @@ public final class EdgeProcessTest {
         c.sentence("calls", "19 SLEEP: if it sleeps towards nothing");
         // A handler's own SLEEP goes on with what it sleeps towards already.
         Script s = new Script().call(Script.HANDLER, 3, "h").call(Script.SLEEP, 10).add("li s0, 1").stay();
-        s.add("h: ").call(Script.SLEEP, 50).add("la t0, k\nli t1, 1\nsw t1, 0(t0)").call(Script.BACK).data("k: .word 0");
+        s.add("h: ").call(Script.SLEEP, 50).add("la t0, k\nli t1, 1\nsw t1, 0(t0)").call(Script.BACK)
+                .data("k: .word 0");
         TimeMachine x = s.booted(c);
         x.run(100);
         x.outside(2, 0, 3);
@@ -973,7 +1032,8 @@ public final class EdgeProcessTest {
     }
 
     private static void randoms() {
-        c.sentence("calls", "21 RANDOM: the oldest of the random words that came goes, and is answered; it waits while there is none.");
+        c.sentence("calls", "21 RANDOM: the oldest of the random words that came goes, and is answered; it waits"
+                + " while there is none.");
         TimeMachine x = c.booted("li a7, 21\n1: ecall\nj 1b");
         for (int i = 0; i < 16; i++) {
             c.same("a word", x.outside(4, 0xfffffff0L + i, 0), 0);
@@ -995,11 +1055,13 @@ public final class EdgeProcessTest {
     }
 
     private static void noFrames() {
-        c.sentence("calls", "a store, or a call, that finds none is the signal 7, taken as above (nothing else is done then).");
+        c.sentence("calls", "a store, or a call, that finds none is the signal 7, taken as above (nothing else is"
+                + " done then).");
         String handled = "li a7, 17\nli a0, 7\nla a1, 8f\necall\n";
         String end = "\nli a7, 0\nli a0, 1\necall\n8: li a7, 0\nadd a0, a0, s6\necall";
         String[] stores = {"li t0, 16384\nsb t0, 0(t0)", "li t0, 16384\nsh t0, 0(t0)", "li t0, 16384\nsw t0, 0(t0)",
-            "li t0, 16384\namoadd.w s6, t0, (t0)", "li a5, 16384\nc.sw a5, 0(a5)", "li t0, 16384\nlr.w t1, (t0)\nsc.w s6, t0, (t0)"};
+            "li t0, 16384\namoadd.w s6, t0, (t0)", "li a5, 16384\nc.sw a5, 0(a5)",
+            "li t0, 16384\nlr.w t1, (t0)\nsc.w s6, t0, (t0)"};
         for (String store : stores) {
             c.same("without a handler, " + store, crowd.code(7, store + end), 128 + 7);
             c.same("with one, " + store, crowd.code(7, handled + "li s6, 20\n" + store + end), 27);
@@ -1010,8 +1072,10 @@ public final class EdgeProcessTest {
         c.same("READ", crowd.code(7, handled + "li a0, 2\nli a1, 16384\nli a2, 1\nli a7, 6\necall" + end), 7);
         c.same("READ of no bytes", crowd.code(7, "li a0, 2\nli a1, 16384\nli a2, 0\nli a7, 6\necall" + end), 1);
         // The bytes that READ would have given are there still.
-        String again = "\nli a7, 0\nli a0, 1\necall\n8: li a0, 2\nli a1, 8192\nli a2, 100\nli a7, 6\necall\nli a7, 0\necall";
-        c.same("nothing else is done", crowd.code(7, handled + "li a0, 2\nli a1, 16384\nli a2, 3\nli a7, 6\necall" + again), 8);
+        String again = "\nli a7, 0\nli a0, 1\necall\n8: li a0, 2\nli a1, 8192\nli a2, 100\nli a7, 6\necall\nli a7, 0\n"
+                + "ecall";
+        c.same("nothing else is done", crowd.code(7, handled + "li a0, 2\nli a1, 16384\nli a2, 3\nli a7, 6\necall"
+                + again), 8);
         // Nor has PIPE made descriptors.
         String dup = "\nli a7, 0\nli a0, 1\necall\n8: li a0, 0\nli a1, -1\nli a7, 9\necall\nli a7, 0\necall";
         c.same("nothing else is done", crowd.code(7, handled + "li a0, 16384\nli a7, 5\necall" + dup), 4);
@@ -1021,9 +1085,12 @@ public final class EdgeProcessTest {
         c.sentence("calls", "(of READ the bytes that come), which are asked for when nothing else is wrong");
         String end = "\nli a7, 0\necall";
         String read = "li a7, 6\nli a2, ";
-        c.same("READ of eight that come, to one page", crowd.code(6, "li a0, 2\nli a1, 16376\n" + read + "512\necall" + end), 8);
-        c.same("READ of eight that come, to two pages", crowd.code(6, "li a0, 2\nli a1, 16380\n" + read + "8\necall" + end), 128 + 7);
-        c.same("READ of four, to the first of these", crowd.code(6, "li a0, 2\nli a1, 16380\n" + read + "4\necall" + end), 4);
+        c.same("READ of eight that come, to one page", crowd.code(6, "li a0, 2\nli a1, 16376\n" + read + "512\necall"
+                + end), 8);
+        c.same("READ of eight that come, to two pages", crowd.code(6, "li a0, 2\nli a1, 16380\n" + read + "8\necall"
+                + end), 128 + 7);
+        c.same("READ of four, to the first of these", crowd.code(6, "li a0, 2\nli a1, 16380\n" + read + "4\necall"
+                + end), 4);
         c.same("BAD first", crowd.code(7, "li a0, 9\nli a1, 16384\n" + read + "8\necall" + end), -1 & 255);
         c.same("ADDRESS first", crowd.code(7, "li a0, 2\nli a1, 0\n" + read + "8\necall" + end), -14 & 255);
         c.same("INVALID first", crowd.code(7, "li a0, 2\nli a1, 16384\n" + read + "513\necall" + end), INVALID & 255);
@@ -1036,7 +1103,8 @@ public final class EdgeProcessTest {
     }
 
     private static void wrongBoots() {
-        c.sentence("promise 10", "IllegalArgumentException when p is not 0 .. 3; else IllegalStateException when it is not assembled.");
+        c.sentence("promise 10", "IllegalArgumentException when p is not 0 .. 3; else IllegalStateException when it"
+                + " is not assembled.");
         TimeMachine x = new TimeMachine();
         for (int p : new int[] {-1, 4, Integer.MIN_VALUE, Integer.MAX_VALUE}) {
             c.argument("boot(" + p + ")", () -> x.boot(p));
@@ -1055,7 +1123,8 @@ public final class EdgeProcessTest {
     }
 
     private static void boots() {
-        c.sentence("promise 10", "the recording and the schedule are empty, END is 0 (the latest packed log and the breaks stay).");
+        c.sentence("promise 10", "the recording and the schedule are empty, END is 0 (the latest packed log and the"
+                + " breaks stay).");
         TimeMachine x = c.booted("1: j 1b");
         Checks.replay(x, 0, 2, 0x0b, 5, 0x13, 9);
         Checks.watch(x, 7, "count == 3");
@@ -1075,7 +1144,8 @@ public final class EdgeProcessTest {
     }
 
     private static void registers() {
-        c.sentence("promise 22", "Register r of process p; r 32: its place (of one that has ENDED as they were). 0 when it is ABSENT, or there is none.");
+        c.sentence("promise 22", "Register r of process p; r 32: its place (of one that has ENDED as they were). 0"
+                + " when it is ABSENT, or there is none.");
         TimeMachine x = c.booted(PAIR);
         for (int r : new int[] {-1, 33, Integer.MIN_VALUE, Integer.MAX_VALUE}) {
             c.same("register " + r, x.register(0, r), 0);
@@ -1107,7 +1177,8 @@ public final class EdgeProcessTest {
     }
 
     private static void told() {
-        c.sentence("promise 23", "An ABSENT one has 0, but -1 for 1 and 7; one that has ENDED 0 for 3 .. 6, -1 for 7. -1 for another what.");
+        c.sentence("promise 23", "An ABSENT one has 0, but -1 for 1 and 7; one that has ENDED 0 for 3 .. 6, -1 for 7."
+                + " -1 for another what.");
         int[] absent = {0, -1, 0, 0, 0, 0, 0, -1};
         TimeMachine none = new TimeMachine();
         TimeMachine x = c.booted(PAIR);
@@ -1136,7 +1207,8 @@ public final class EdgeProcessTest {
     private static void peeks() {
         c.sentence("promise 24", "The byte at an address of the space of process p; -1 when it has no such page.");
         TimeMachine x = c.booted(".byte 255, 1\n.data\n.byte 128");
-        int[] at = {0, 1, 2, 1023, 1024, 1025, 2047, 2048, 61439, 61440, 65535, 65536, -1, Integer.MIN_VALUE, Integer.MAX_VALUE, 65536 + 1024};
+        int[] at = {0, 1, 2, 1023, 1024, 1025, 2047, 2048, 61439, 61440, 65535, 65536, -1, Integer.MIN_VALUE,
+            Integer.MAX_VALUE, 65536 + 1024};
         int[] due = {255, 1, 0, 0, 128, 0, 0, -1, -1, 0, 0, -1, -1, -1, -1, -1};
         for (int i = 0; i < at.length; i++) {
             c.same("peek(0, " + at[i] + ")", x.peek(0, at[i]), due[i]);

@@ -1,4 +1,4 @@
-/** The boundary cases that the document names of programs: sections, directives, lengths, faults, and promises 4 to 9. */
+/** The boundary cases that the document names of sections, directives, lengths and faults: promises 4 to 9. */
 public final class EdgeProgramTest {
     private static final Checks c = new Checks();
     private static final Texts t = new Texts(c);
@@ -53,7 +53,8 @@ public final class EdgeProgramTest {
     }
 
     private static void dataBegins() {
-        c.sentence("sections", "The data begins at the first multiple of 1024 that is not below the text's size (which begins at 0).");
+        c.sentence("sections", "The data begins at the first multiple of 1024 that is not below the text's size"
+                + " (which begins at 0).");
         int[] sizes = {0, 1, 1023, 1024, 1025, 2048, 2049};
         int[] due = {0, 1024, 1024, 1024, 2048, 2048, 3072};
         for (int i = 0; i < sizes.length; i++) {
@@ -96,7 +97,8 @@ public final class EdgeProgramTest {
         c.sentence("directives", ".equ name, e (fixed: a constant)");
         t.makes(".equ a, 0xffffffff\n.equ b, -2147483648\n.word a, b", "ffffffff" + "00000080");
         c.same("it has no bytes", t.size(".equ a, 1"), 0);
-        t.faults(1, ".equ", ".equ a", ".equ a,", ".equ a 1", ".equ 1, 1", ".equ a, 1, 2", ".equ 'a', 1", ".equ \"a\", 1", ".equ (a), 1",
+        t.faults(1, ".equ", ".equ a", ".equ a,", ".equ a 1", ".equ 1, 1", ".equ a, 1, 2", ".equ 'a', 1",
+                ".equ \"a\", 1", ".equ (a), 1",
                 ".equ , 1", ".equ a, 1 2", ".equ 1f, 1");
     }
 
@@ -149,7 +151,8 @@ public final class EdgeProgramTest {
     }
 
     private static void shortJumpsGrow() {
-        c.sentence("lengths", "jal of one operand, call, j and tail are c.jal and c.j at first (two bytes), and become jal (four).");
+        c.sentence("lengths", "jal of one operand, call, j and tail are c.jal and c.j at first (two bytes), and"
+                + " become jal (four).");
         String[] names = {"jal ", "call ", "j ", "tail "};
         String[] shorts = {"c.jal ", "c.jal ", "c.j ", "c.j "};
         String[] longs = {"jal ra, ", "jal ra, ", "jal zero, ", "jal zero, "};
@@ -167,7 +170,8 @@ public final class EdgeProgramTest {
     }
 
     private static void shortBranchesGrow() {
-        c.sentence("lengths", "beqz and bnez with a register 8 .. 15 are c.beqz, c.bnez (two) at first, and become beq, bne (four)");
+        c.sentence("lengths", "beqz and bnez with a register 8 .. 15 are c.beqz, c.bnez (two) at first, and become"
+                + " beq, bne (four)");
         for (int r = 0; r < 32; r++) {
             c.same("beqz x" + r, t.size("beqz x" + r + ", ."), r >= 8 && r <= 15 ? 2 : 4);
             c.same("bnez x" + r, t.size("bnez x" + r + ", ."), r >= 8 && r <= 15 ? 2 : 4);
@@ -187,13 +191,17 @@ public final class EdgeProgramTest {
     }
 
     private static void branchesGrow() {
-        c.sentence("lengths", "these, and all branches whose names begin with b, become eight bytes: the branch with the opposite condition"
-                + " (F ^ 1) over what follows, and jal zero, t.");
-        String[] names = {"beq a0, a1,", "bne a0, a1,", "blt a0, a1,", "bge a0, a1,", "bltu a0, a1,", "bgeu a0, a1,", "beqz a0,",
-            "bnez a0,", "beqz t0,", "bnez t0,", "bgez a0,", "bltz a0,", "blez a0,", "bgtz a0,", "bgt a0, a1,", "ble a0, a1,",
+        c.sentence("lengths", "these, and all branches whose names begin with b, become eight bytes: the branch with"
+                + " the opposite condition (F ^ 1) over what follows, and jal zero, t.");
+        String[] names = {"beq a0, a1,", "bne a0, a1,", "blt a0, a1,", "bge a0, a1,", "bltu a0, a1,", "bgeu a0, a1,",
+            "beqz a0,",
+            "bnez a0,", "beqz t0,", "bnez t0,", "bgez a0,", "bltz a0,", "blez a0,", "bgtz a0,", "bgt a0, a1,",
+            "ble a0, a1,",
             "bgtu a0, a1,", "bleu a0, a1,"};
-        String[] first = {"bne a0, a1", "beq a0, a1", "bge a0, a1", "blt a0, a1", "bgeu a0, a1", "bltu a0, a1", "bne a0, zero",
-            "beq a0, zero", "bne t0, zero", "beq t0, zero", "blt a0, zero", "bge a0, zero", "blt zero, a0", "bge zero, a0", "bge a1, a0",
+        String[] first = {"bne a0, a1", "beq a0, a1", "bge a0, a1", "blt a0, a1", "bgeu a0, a1", "bltu a0, a1",
+            "bne a0, zero",
+            "beq a0, zero", "bne t0, zero", "beq t0, zero", "blt a0, zero", "bge a0, zero", "blt zero, a0",
+            "bge zero, a0", "bge a1, a0",
             "blt a1, a0", "bgeu a1, a0", "bltu a1, a0"};
         for (int i = 0; i < names.length; i++) {
             c.same("the last that four can have", t.size(names[i] + " a\n" + zeros(4090) + "a:"), 4094);
@@ -210,8 +218,8 @@ public final class EdgeProgramTest {
     }
 
     private static void atOnce() {
-        c.sentence("lengths", "All addresses are found; then all those whose offset is too far, or odd, for their length (t having no fault 8 or"
-                + " 9) and that can be longer get the next one, at once");
+        c.sentence("lengths", "All addresses are found; then all those whose offset is too far, or odd, for their"
+                + " length (t having no fault 8 or 9) and that can be longer get the next one, at once");
         // If only the first grew before addresses are found again, the second would be near enough.
         String text = "j b\nj a\n.align 4\n" + zeros(2034) + "a:\n" + zeros(2000) + "b:";
         c.same("both grow", t.size(text), 16 + 2034 + 2000);
@@ -238,7 +246,8 @@ public final class EdgeProgramTest {
         String pushed = chain.toString().replace("l99: c.nop", "c.nop\nl99: c.nop");
         c.same("all grow", t.size(pushed), 400 + 1846 + 202);
         c.same("two steps of one alone", t.size("beqz a0, . + 5000"), 8);
-        c.same("two steps of one", t.size("beqz a0, a\n" + zeros(4090) + "j b\na:\n" + zeros(2046) + "b:"), 8 + 4090 + 4 + 2046);
+        c.same("two steps of one", t.size("beqz a0, a\n" + zeros(4090) + "j b\na:\n" + zeros(2046) + "b:"), 8 + 4090 + 4
+                + 2046);
     }
 
     private static void faultyTargets() {
@@ -254,23 +263,31 @@ public final class EdgeProgramTest {
     }
 
     private static void faultOne() {
-        c.sentence("faults", "1 a character or token that can't be there, or a line that ends too early (also where a register must be).");
-        t.faults(1, "nop nop", "nop,", "add", "add a0", "add a0,", "add a0, a1,", "lw", "lw a0", "lw a0,", "lw a0, 1", "lw a0, 1(",
-                "lw a0, 1(a1", "sw a0, 1(a1) 1", "j", "beq a0, a1", "beq a0, a1,", "beqz", "li a0", "li a0,", "la a0", "lui", "c.jr",
-                "c.lw a0, 0(", "lr.w a0, (", "lr.w a0,", "rdcycle", "add a0 a1 a2", "add @", "add a0, a1, 'x", "5", "a: b: 5", "+", "li a0, 1,");
+        c.sentence("faults", "1 a character or token that can't be there, or a line that ends too early (also where a"
+                + " register must be).");
+        t.faults(1, "nop nop", "nop,", "add", "add a0", "add a0,", "add a0, a1,", "lw", "lw a0", "lw a0,", "lw a0, 1",
+                "lw a0, 1(",
+                "lw a0, 1(a1", "sw a0, 1(a1) 1", "j", "beq a0, a1", "beq a0, a1,", "beqz", "li a0", "li a0,", "la a0",
+                "lui", "c.jr",
+                "c.lw a0, 0(", "lr.w a0, (", "lr.w a0,", "rdcycle", "add a0 a1 a2", "add @", "add a0, a1, 'x", "5",
+                "a: b: 5", "+", "li a0, 1,");
     }
 
     private static void faultTwo() {
         c.sentence("faults", "2 the name of a statement that there is not.");
-        t.faults(2, "foo", "a: foo", "Nop", "NOP", "add.", "addd a0, a0, a0", "ad a0, a0, a0", ".org", ".Text", ".texts", "c.sub.", "c", ".",
-                "_", "c.jalr.", "subi a0, a0, 1", "x1", "lr.w.", "lr a0, (a0)", "sltz. a0, a0", "1: nop2", ".byt 1", ".bytes 1");
+        t.faults(2, "foo", "a: foo", "Nop", "NOP", "add.", "addd a0, a0, a0", "ad a0, a0, a0", ".org", ".Text",
+                ".texts", "c.sub.", "c", ".",
+                "_", "c.jalr.", "subi a0, a0, 1", "x1", "lr.w.", "lr a0, (a0)", "sltz. a0, a0", "1: nop2", ".byt 1",
+                ".bytes 1");
         t.faults(2, "foo @", "foo \"", "foo 99999999999");
     }
 
     private static void faultThree() {
         c.sentence("faults", "3 no register where one must be, or not one of those said.");
-        t.faults(3, "add 5, a0, a0", "add foo, a0, a0", "add a0, (, a0", "add a0, a1, 'x'", "add a0, \"x\", a1", "add ., a0, a0",
-                "add 1f, a0, a0", "lw a0, 0(0)", "lw 5, 0(a0)", "beqz 0, .", "li 5, 5", "la foo, foo", "lr.w a0, (5)", "c.jr zero",
+        t.faults(3, "add 5, a0, a0", "add foo, a0, a0", "add a0, (, a0", "add a0, a1, 'x'", "add a0, \"x\", a1",
+                "add ., a0, a0",
+                "add 1f, a0, a0", "lw a0, 0(0)", "lw 5, 0(a0)", "beqz 0, .", "li 5, 5", "la foo, foo", "lr.w a0, (5)",
+                "c.jr zero",
                 "c.lw t0, 0(a0)", "c.lui sp, 1", "c.mv a0, zero", "c.lwsp x0, 4", "jalr 5", "jr 5", "mv a0, a8");
     }
 
@@ -285,22 +302,27 @@ public final class EdgeProgramTest {
     }
 
     private static void faultsOfFixed() {
-        c.sentence("faults", "Of an e that must be fixed, when it is read to its end: 5 it is not; 9 it has a division by 0; 6 it is not as said"
-                + " there.");
-        t.faults(5, ".space foo", ".space foo / 0", ".space 0 - 1 + foo", ".align .", ".space 1 / 0 + foo", "li a0, foo", ".equ a, 1f");
-        t.faults(9, ".space 1 / 0", ".space 1 % 0", ".space 0 - 1 / 0", ".align 1 / (1 - 1)", "li a0, 5 % 0", ".equ a, 0 / 0",
+        c.sentence("faults", "Of an e that must be fixed, when it is read to its end: 5 it is not; 9 it has a"
+                + " division by 0; 6 it is not as said there.");
+        t.faults(5, ".space foo", ".space foo / 0", ".space 0 - 1 + foo", ".align .", ".space 1 / 0 + foo",
+                "li a0, foo", ".equ a, 1f");
+        t.faults(9, ".space 1 / 0", ".space 1 % 0", ".space 0 - 1 / 0", ".align 1 / (1 - 1)", "li a0, 5 % 0",
+                ".equ a, 0 / 0",
                 ".space 40000 / 0");
         t.faults(6, ".space -1", ".space 32769", ".align 11", ".align -1");
         c.sentence("faults", "when it is read to its end");
-        t.faults(1, ".space foo +", ".space (foo", ".space foo + )", ".space 1 / 0 *", ".space 40000 -", ".align %hi(foo");
+        t.faults(1, ".space foo +", ".space (foo", ".space foo + )", ".space 1 / 0 *", ".space 40000 -",
+                ".align %hi(foo");
         t.faults(5, ".space foo bar", ".space foo )", ".space foo, 1", "li a0, foo bar", ".equ a, foo @");
         t.faults(9, ".space 1 / 0 bar", ".space 1 / 0, 1");
         t.faults(6, ".space 40000 bar", ".align 11, 1");
     }
 
     private static void faultSeven() {
-        c.sentence("faults", "If there is none of these, and all is laid out: 7 all ends above 32768 (told with line 0).");
-        t.allFine(".space 32768", ".space 31744\n.data\n.space 1024", ".space 31743\n.data\n.space 1024", ".data\n.space 32768",
+        c.sentence("faults", "If there is none of these, and all is laid out: 7 all ends above 32768 (told with line"
+                + " 0).");
+        t.allFine(".space 32768", ".space 31744\n.data\n.space 1024", ".space 31743\n.data\n.space 1024",
+                ".data\n.space 32768",
                 ".space 32768\n.data");
         t.fault(".space 32768\n.byte 1", 7, 0);
         t.fault(".byte 1\n.space 32768", 7, 0);
@@ -316,18 +338,21 @@ public final class EdgeProgramTest {
     }
 
     private static void faultsBehind() {
-        c.sentence("faults", "If not, lines from the first one on, from the left, of each e in this order: 8 a name that there is not, or no near"
-                + " label; 9 a division by 0");
-        t.faults(8, ".word foo", ".word 1f", ".word 1b", ".word 1, 2, foo", ".word foo / 0", ".word 1 / 0 + foo", ".word 1 / foo",
+        c.sentence("faults", "If not, lines from the first one on, from the left, of each e in this order: 8 a name"
+                + " that there is not, or no near label; 9 a division by 0");
+        t.faults(8, ".word foo", ".word 1f", ".word 1b", ".word 1, 2, foo", ".word foo / 0", ".word 1 / 0 + foo",
+                ".word 1 / foo",
                 "addi a0, a0, foo + 4096", "addi a0, a0, 5000 + 1f", "la a0, foo", "lw a0, foo(a0)");
-        t.faults(9, ".word 1 / 0", ".word 1 % 0", ".word 1 / 0, foo", "addi a0, a0, 4096 / 0", "a: .word 1 / (a - a)", "la a0, 1 / 0",
+        t.faults(9, ".word 1 / 0", ".word 1 % 0", ".word 1 / 0, foo", "addi a0, a0, 4096 / 0", "a: .word 1 / (a - a)",
+                "la a0, 1 / 0",
                 ".byte 1, 2 % (0 * 5)");
         t.word("0 / 5", 0);
     }
 
     private static void faultTen() {
         c.sentence("faults", "10 it, or the offset, is not as said (for its length).");
-        t.faults(10, "addi a0, a0, 2048", "lui a0, -1", "jal ra, . + 1", "c.j . + 2048", "c.beqz a0, . + 256", "c.lw a0, 2(a0)",
+        t.faults(10, "addi a0, a0, 2048", "lui a0, -1", "jal ra, . + 1", "c.j . + 2048", "c.beqz a0, . + 256",
+                "c.lw a0, 2(a0)",
                 "sw a0, 4096(a0)", "slli a0, a0, 32", "beq a0, a0, 3", "j 0x7fffffff");
         t.allFine(".byte 256", ".half -70000", "la a0, 0x7fffffff", "li a0, 0x7fffffff", "j . + 1048574");
     }
@@ -347,8 +372,8 @@ public final class EdgeProgramTest {
     }
 
     private static void assembled() {
-        c.sentence("promise 4", "The tape is assembled as program p (0 .. 3), in place of one that was there, and is empty then: 0, or the fault"
-                + " + 16 * its line");
+        c.sentence("promise 4", "The tape is assembled as program p (0 .. 3), in place of one that was there, and is"
+                + " empty then: 0, or the fault + 16 * its line");
         TimeMachine x = new TimeMachine();
         for (int p = 0; p <= 3; p++) {
             c.same("assemble(" + p + ")", Checks.assemble(x, p, ".byte " + (p + 1)), 0);
@@ -382,7 +407,8 @@ public final class EdgeProgramTest {
     }
 
     private static void programsOfBooted() {
-        c.sentence("promise 4", "A machine that is booted has its programs (for EXEC, too) as they were then, up to the next booting.");
+        c.sentence("promise 4", "A machine that is booted has its programs (for EXEC, too) as they were then, up to"
+                + " the next booting.");
         String exec = "li a7, 2\nli a0, 1\necall\nmv s0, a0\nli a7, 21\necall";
         TimeMachine x = new TimeMachine();
         Checks.assemble(x, 0, exec);
@@ -425,7 +451,8 @@ public final class EdgeProgramTest {
         }
         x.boot(0);
         for (int p = 0; p < 4; p++) {
-            Checks.assemble(x, p, "li s1, " + (20 + p) + "\nli a0, " + (p + 1) + "\nli a7, 2\necall\n.data\n.byte " + p);
+            Checks.assemble(x, p, "li s1, " + (20 + p) + "\nli a0, " + (p + 1) + "\nli a7, 2\necall\n.data\n.byte "
+                    + p);
         }
         c.same("a fault", Checks.assemble(x, 2, ".byte 1, 2, 3, 4, 5, 6, 7, 8\n.byte foo"), 8 + 16 * 2);
         for (int p = 0; p < 4; p++) {
@@ -488,7 +515,8 @@ public final class EdgeProgramTest {
     }
 
     private static void labels() {
-        c.sentence("promise 7", "The address of label k of program p (of those with names, in the order of the text); -1 when there is none.");
+        c.sentence("promise 7", "The address of label k of program p (of those with names, in the order of the text);"
+                + " -1 when there is none.");
         TimeMachine x = new TimeMachine();
         Checks.assemble(x, 0, "nop\nz: 1: nop\n.data\nb: .text\n2: a: nop");
         int[] due = {4, 1024, 8};
@@ -517,7 +545,8 @@ public final class EdgeProgramTest {
         for (int i = 0; i < letters.length(); i++) {
             for (int j = 0; j < more.length(); j++) {
                 String name = "" + letters.charAt(i) + more.charAt(j);
-                boolean register = name.matches("ra|sp|gp|tp|fp|[xa][0-9]|t[0-6]|s[0-9]") && !name.equals("a8") && !name.equals("a9");
+                boolean register = name.matches("ra|sp|gp|tp|fp|[xa][0-9]|t[0-6]|s[0-9]") && !name.equals("a8")
+                        && !name.equals("a9");
                 if (!register) {
                     text.append(name).append(':');
                     n++;
@@ -536,8 +565,8 @@ public final class EdgeProgramTest {
     }
 
     private static void before() {
-        c.sentence("promise 8", "Which label (as there) of program p has the greatest address not above a, with its sign (of several the latest in"
-                + " the text); -1 for none.");
+        c.sentence("promise 8", "Which label (as there) of program p has the greatest address not above a, with its"
+                + " sign (of several the latest in the text); -1 for none.");
         TimeMachine x = new TimeMachine();
         Checks.assemble(x, 0, "nop\n.data\nd: .byte 1\n.text\na: 1: b: nop\nc: nop");
         int[] at = {Integer.MIN_VALUE, -1, 0, 3, 4, 5, 7, 8, 11, 1023, 1024, 1025, 70000, Integer.MAX_VALUE};
@@ -553,7 +582,8 @@ public final class EdgeProgramTest {
     }
 
     private static void lines() {
-        c.sentence("promise 9", "The line of the statement that byte k of program p is of; 0 for none (also between text and data).");
+        c.sentence("promise 9", "The line of the statement that byte k of program p is of; 0 for none (also between"
+                + " text and data).");
         TimeMachine x = new TimeMachine();
         Checks.assemble(x, 0, "\nc.nop\na: .space 0\n.data\n.byte 1\n.text\n.align 2\n.space 2\n.data\n.half 2\n");
         int[] at = {-1, 0, 1, 2, 3, 4, 5, 6, 1023, 1024, 1025, 1026, 1027, Integer.MIN_VALUE, Integer.MAX_VALUE};

@@ -2,8 +2,10 @@
 public final class EdgeSourceTest {
     private static final Checks c = new Checks();
     private static final Texts t = new Texts(c);
-    private static final String[] REGISTERS = {"zero", "ra", "sp", "gp", "tp", "t0", "t1", "t2", "s0", "s1", "a0", "a1", "a2",
-        "a3", "a4", "a5", "a6", "a7", "s2", "s3", "s4", "s5", "s6", "s7", "s8", "s9", "s10", "s11", "t3", "t4", "t5", "t6"};
+    private static final String[] REGISTERS = {"zero", "ra", "sp", "gp", "tp", "t0", "t1", "t2", "s0", "s1", "a0", "a1",
+        "a2",
+        "a3", "a4", "a5", "a6", "a7", "s2", "s3", "s4", "s5", "s6", "s7", "s8", "s9", "s10", "s11", "t3", "t4", "t5",
+        "t6"};
 
     public static void main(String[] args) {
         characters();
@@ -53,7 +55,8 @@ public final class EdgeSourceTest {
     }
 
     private static void firstFault() {
-        c.sentence("a program's text", "A byte of the tape that is none of these is fault 1 in its line, before all others.");
+        c.sentence("a program's text", "A byte of the tape that is none of these is fault 1 in its line, before all"
+                + " others.");
         t.fault("foo\nnop\n# \u0080", 1, 3);
         t.fault("foo\n\n\u0000\n\u0001", 1, 3);
         t.fault(".ascii \"\u007f\"", 1, 1);
@@ -74,7 +77,8 @@ public final class EdgeSourceTest {
     }
 
     private static void blanks() {
-        c.sentence("a program's text", "9 and 32 are BLANKS: they stand between tokens or not, and end what is in front of them");
+        c.sentence("a program's text", "9 and 32 are BLANKS: they stand between tokens or not, and end what is in"
+                + " front of them");
         t.makes(" \t a :\t.byte\t 1 ,(\t2+3 )\t", "0105");
         t.makes("a:.byte 1,(2+3)", "0105");
         t.makes(".byte-1", "ff");
@@ -108,7 +112,8 @@ public final class EdgeSourceTest {
         t.faults(1, longest + "6:", ".byte " + longest + "6", ".equ " + longest + "6, 1", longest + "6");
         t.fault(longest, 2, 1);
         // Names that are alike in all but the last character are two.
-        t.makes("nop\n" + longest + ": nop\n" + longest.substring(0, 30) + "6: .byte " + longest, "13000000" + "13000000" + "04");
+        t.makes("nop\n" + longest + ": nop\n" + longest.substring(0, 30) + "6: .byte " + longest, "13000000"
+                + "13000000" + "04");
     }
 
     private static void nameCharacters() {
@@ -153,7 +158,8 @@ public final class EdgeSourceTest {
         t.word("0b10", 2);
         t.word("010", 10);
         t.word("09", 9);
-        t.faults(1, ".word 0x", ".word 0xg", ".word 0xG", ".word 0x/", ".word 0X1", ".word 0B1", ".word 0b2", ".word 0b12",
+        t.faults(1, ".word 0x", ".word 0xg", ".word 0xG", ".word 0x/", ".word 0X1", ".word 0B1", ".word 0b2",
+                ".word 0b12",
                 ".word 0b02", ".word 1a", ".word 1x1", ".word 00x1", ".word 1b1", ".word 0o7", ".word 1e3");
     }
 
@@ -201,7 +207,8 @@ public final class EdgeSourceTest {
     }
 
     private static void quotedCharacters() {
-        c.sentence("quoted", "What stands for a character is itself (9, 32 .. 126, but no \\, in ' ' no ', in \" \" no \")");
+        c.sentence("quoted", "What stands for a character is itself (9, 32 .. 126, but no \\, in ' ' no ', in \" \""
+                + " no \")");
         for (int it = 9; it < 127; it = it == 9 ? 32 : it + 1) {
             String line = ".byte '" + (char) it + "'";
             if (it == '\\' || it == '\'') {
@@ -210,7 +217,8 @@ public final class EdgeSourceTest {
                 t.makes(line, String.format("%02x", it));
             }
         }
-        t.faults(1, ".byte ''", ".byte '", ".byte 'a", ".byte 'ab'", ".byte '''", ".byte 'a''", ".ascii \"\\\"", ".ascii \"\"\"");
+        t.faults(1, ".byte ''", ".byte '", ".byte 'a", ".byte 'ab'", ".byte '''", ".byte 'a''", ".ascii \"\\\"",
+                ".ascii \"\"\"");
     }
 
     private static void escapes() {
@@ -237,7 +245,8 @@ public final class EdgeSourceTest {
         t.makes("a: .byte (1+2-3)*4/5%6&7|8^9, ~0, 1<<2, 8>>1", "01" + "ff" + "04" + "04");
         for (char it = 33; it < 127; it++) {
             if ("!;<=>?@[\\]`{}".indexOf(it) >= 0) {
-                t.faults(1, it + "", "nop " + it, ".byte 1 " + it + " 1", ".byte " + it, "a: " + it, "add a0, a1, " + it);
+                t.faults(1, it + "", "nop " + it, ".byte 1 " + it + " 1", ".byte " + it, "a: " + it, "add a0, a1, "
+                        + it);
             }
         }
         t.faults(1, ".byte 1 <> 1", ".byte 1 <<< 1", ".byte 1 >>> 1", ".byte 1 ** 1", ".byte 1 && 1", ".byte 1 || 1");
@@ -273,17 +282,20 @@ public final class EdgeSourceTest {
     }
 
     private static void registerNames() {
-        c.sentence("quoted", "REGISTERS have the names x0 .. x31, and, from 0 on: zero ra sp gp tp t0 t1 t2 s0 s1 a0 .. a7 s2 .. s11"
-                + " t3 .. t6; fp is s0.");
+        c.sentence("quoted", "REGISTERS have the names x0 .. x31, and, from 0 on: zero ra sp gp tp t0 t1 t2 s0 s1 a0"
+                + " .. a7 s2 .. s11 t3 .. t6; fp is s0.");
         for (int r = 0; r < 32; r++) {
             String due = String.format("%02x%02x0000", 0x13 | r << 7 & 0x80, r >> 1 & 15);
             t.makes("mv x" + r + ", zero", due);
             t.makes("mv " + REGISTERS[r] + ", zero", due);
         }
         t.makes("mv fp, zero", "13040000");
-        t.faults(3, "mv x32, zero", "mv x00, zero", "mv x01, zero", "mv x031, zero", "mv x, zero", "mv X1, zero", "mv Zero, zero",
-                "mv a8, zero", "mv s12, zero", "mv t7, zero", "mv r0, zero", "mv a00, zero", "mv a, zero", "mv zeros, zero",
-                "mv fp0, zero", "mv x1x, zero", "mv x-1, zero", "mv x310, zero", "mv s1s, zero", "mv s00, zero", "mv x3a, zero");
+        t.faults(3, "mv x32, zero", "mv x00, zero", "mv x01, zero", "mv x031, zero", "mv x, zero", "mv X1, zero",
+                "mv Zero, zero",
+                "mv a8, zero", "mv s12, zero", "mv t7, zero", "mv r0, zero", "mv a00, zero", "mv a, zero",
+                "mv zeros, zero",
+                "mv fp0, zero", "mv x1x, zero", "mv x-1, zero", "mv x310, zero", "mv s1s, zero", "mv s00, zero",
+                "mv x3a, zero");
     }
 
     private static void registersAlone() {
@@ -297,7 +309,8 @@ public final class EdgeSourceTest {
     }
 
     private static void primaries() {
-        c.sentence("expressions", "numbers; names of constants and labels (addresses); . the address at which the statement begins");
+        c.sentence("expressions", "numbers; names of constants and labels (addresses); . the address at which the"
+                + " statement begins");
         t.makes(".byte 1, ., .\n.byte ., 2", "010000" + "0302");
         t.makes(".equ k, 5\nnop\na: .byte k, a, b\n.byte .\nb:", "13000000" + "050408" + "07");
         // Constants and labels that are defined below count, too, where an e need not be fixed.
@@ -306,7 +319,8 @@ public final class EdgeSourceTest {
     }
 
     private static void nearBehind() {
-        c.sentence("expressions", "1f the next label 1 (by the text's lines, in whatever section) behind the statement");
+        c.sentence("expressions", "1f the next label 1 (by the text's lines, in whatever section) behind the"
+                + " statement");
         t.makes(".byte 1f\n1: .byte 1f\n1: .byte 0", "010200");
         t.makes("1: .byte 1f\n1:", "01");
         t.makes(".half 1f\n.data\n1: .byte 7\n.text\n1:", "0004" + "00".repeat(1022) + "07");
@@ -337,13 +351,15 @@ public final class EdgeSourceTest {
         t.word("2 * -3", -6);
         t.word("-2147483648", Integer.MIN_VALUE);
         t.word("((((((((((1))))))))))", 1);
-        t.faults(1, ".word ()", ".word (1", ".word 1)", ".word -", ".word ~", ".word (-)", ".word +1", ".word 1 ~ 1", ".word (1)(1)",
+        t.faults(1, ".word ()", ".word (1", ".word 1)", ".word -", ".word ~", ".word (-)", ".word +1", ".word 1 ~ 1",
+                ".word (1)(1)",
                 ".word 1 -", ".word", ".word *1", ".word 1 ++1");
         t.word("1 - - 1", 2);
     }
 
     private static void halves() {
-        c.sentence("expressions", "%hi and %lo before ( e ) (two tokens; behind an operand % is the sign of the remainder)");
+        c.sentence("expressions", "%hi and %lo before ( e ) (two tokens; behind an operand % is the sign of the"
+                + " remainder)");
         t.word("%hi(4096)", 1);
         t.word("% hi (4096)", 1);
         t.word("%\tlo\t(4097)", 1);
@@ -354,7 +370,8 @@ public final class EdgeSourceTest {
         t.word("7 %lo + 1\n.equ lo, 4", 4);
         t.word("(9) %hi\n.equ hi, 4", 1);
         t.word("9 % %hi(0x5000)", 4);
-        t.faults(1, ".word %hi", ".word %hi 1", ".word %hi(1", ".word %(1)", ".word %5", ".word %high(1)", ".word %HI(1)", ".word %h(1)",
+        t.faults(1, ".word %hi", ".word %hi 1", ".word %hi(1", ".word %(1)", ".word %5", ".word %high(1)",
+                ".word %HI(1)", ".word %h(1)",
                 ".word %hi()", ".word %%hi(1)", ".word %lo", ".word %lo -1", ".word %");
     }
 
@@ -411,7 +428,8 @@ public final class EdgeSourceTest {
         }
         TimeMachine x = t.fine(text.toString());
         for (int i = 0; i < all.texts.size(); i++) {
-            int got = x.image(0, 4 * i) | x.image(0, 4 * i + 1) << 8 | x.image(0, 4 * i + 2) << 16 | x.image(0, 4 * i + 3) << 24;
+            int got = x.image(0, 4 * i) | x.image(0, 4 * i + 1) << 8 | x.image(0, 4 * i + 2) << 16 | x.image(0, 4 * i
+                    + 3) << 24;
             c.same(all.texts.get(i), got, all.due.get(i));
         }
     }
@@ -492,7 +510,8 @@ public final class EdgeSourceTest {
     }
 
     private static void fixed() {
-        c.sentence("expressions", "FIXED: without labels, near names and ., all its names being constants that are defined above.");
+        c.sentence("expressions", "FIXED: without labels, near names and ., all its names being constants that are"
+                + " defined above.");
         t.makes(".equ a, 2\n.space a\n.byte 1", "000001");
         t.makes(".equ a, 1\n.equ b, a + 1\n.space a + b\n.byte 1", "00000001");
         t.fault(".space a\n.equ a, 2", 5, 1);

@@ -115,7 +115,8 @@ public final class EdgeTapeTest {
     }
 
     private static void order() {
-        c.sentence("promise 2", "Appends the four bytes of a, b, c, d and e, the highest first, to the TAPE: how long it is");
+        c.sentence("promise 2", "Appends the four bytes of a, b, c, d and e, the highest first, to the TAPE: how long"
+                + " it is");
         TimeMachine x = new TimeMachine();
         // .ascii "abcdefghijk", each byte at its place.
         c.same("twenty bytes", x.feed(0x2e617363, 0x69692022, 0x61626364, 0x65666768, 0x696a6b22), 20);
@@ -139,7 +140,8 @@ public final class EdgeTapeTest {
     }
 
     private static void ends() {
-        c.sentence("promise 3", "Of the twenty bytes that came last only the first n count, the others go: how long the tape is");
+        c.sentence("promise 3", "Of the twenty bytes that came last only the first n count, the others go: how long"
+                + " the tape is");
         for (int n = 0; n <= 20; n++) {
             TimeMachine x = new TimeMachine();
             x.feed(0x2e627974, 0x65203120, 0x20202020, 0x20202020, 0x20202020);

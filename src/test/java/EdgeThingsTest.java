@@ -56,7 +56,8 @@ public final class EdgeThingsTest {
     }
 
     private static Script script() {
-        return new Script().data("b: .space 512").data("m: .ascii \"abcdefghij\"").data("n: .asciz \"f\"").data("k: .asciz \"g\"")
+        return new Script().data("b: .space 512").data("m: .ascii \"abcdefghij\"").data("n: .asciz \"f\"")
+                .data("k: .asciz \"g\"")
                 .data(".align 2").data("p: .word 0, 0");
     }
 
@@ -69,9 +70,12 @@ public final class EdgeThingsTest {
     private static void openings() {
         c.sentence("open things", "There are at most 48 openings, 8 PIPES, 16 FILES");
         // Three processes have twelve openings each, besides that of the console; their last child makes ten more.
-        Script s = script().add("li s1, 3\n2: li s0, 12\n1: ").call(Script.OPEN, "n", 9).add("addi s0, s0, -1\nbnez s0, 1b");
-        s.call(Script.FORK).add("bnez a0, 4f\nli s3, 2\n3: ").call(Script.CLOSE, "s3").add("addi s3, s3, 1\nli t0, 14\nbne s3, t0, 3b");
-        s.add("addi s1, s1, -1\nbnez s1, 2b\nli s0, 10\n5: ").call(Script.OPEN, "n", 9).add("addi s0, s0, -1\nbnez s0, 5b");
+        Script s = script().add("li s1, 3\n2: li s0, 12\n1: ").call(Script.OPEN, "n", 9)
+                .add("addi s0, s0, -1\nbnez s0, 1b");
+        s.call(Script.FORK).add("bnez a0, 4f\nli s3, 2\n3: ").call(Script.CLOSE, "s3")
+                .add("addi s3, s3, 1\nli t0, 14\nbne s3, t0, 3b");
+        s.add("addi s1, s1, -1\nbnez s1, 2b\nli s0, 10\n5: ").call(Script.OPEN, "n", 9)
+                .add("addi s0, s0, -1\nbnez s0, 5b");
         s.kept(Script.PIPE, "p");
         s.kept(Script.OPEN, "n", 9);
         s.kept(Script.OPEN, "n", 9);
@@ -88,8 +92,10 @@ public final class EdgeThingsTest {
 
     private static void pipes() {
         c.sentence("open things", "at most 48 openings, 8 PIPES");
-        Script s = script().call(Script.CLOSE, 0).call(Script.CLOSE, 1).add("li s0, 8\n1: ").call(Script.PIPE, "p").add("mv s1, a0");
-        s.add("addi s0, s0, -1\nbnez s0, 1b").call(Script.FORK).add("bnez a0, 3f\nli s3, 0\n2: ").call(Script.CLOSE, "s3");
+        Script s = script().call(Script.CLOSE, 0).call(Script.CLOSE, 1).add("li s0, 8\n1: ").call(Script.PIPE, "p")
+                .add("mv s1, a0");
+        s.add("addi s0, s0, -1\nbnez s0, 1b").call(Script.FORK).add("bnez a0, 3f\nli s3, 0\n2: ")
+                .call(Script.CLOSE, "s3");
         s.add("addi s3, s3, 1\nli t0, 16\nbne s3, t0, 2b");
         s.kept(Script.PIPE, "p");
         s.kept(Script.SLEEP, 1);
@@ -170,7 +176,8 @@ public final class EdgeThingsTest {
 
     private static void pipesHeld() {
         c.sentence("open things", "descriptors hold it. Its openings hold a pipe");
-        Script s = script().call(Script.PIPE, "p").call(Script.DUP, 2, 9).call(Script.WRITE, 3, "m", 4).call(Script.CLOSE, 2);
+        Script s = script().call(Script.PIPE, "p").call(Script.DUP, 2, 9).call(Script.WRITE, 3, "m", 4)
+                .call(Script.CLOSE, 2);
         s.kept(Script.WRITE, 3, "m", 1);
         s.kept(Script.CLOSE, 3);
         s.kept(Script.READ, 9, "b", 100);
@@ -183,7 +190,8 @@ public final class EdgeThingsTest {
 
     /** How many bytes a pipe has whose place another one had. */
     private static int pipeAgain() {
-        Script s = script().call(Script.PIPE, "p").call(Script.WRITE, 3, "m", 4).call(Script.CLOSE, 3).call(Script.CLOSE, 2);
+        Script s = script().call(Script.PIPE, "p").call(Script.WRITE, 3, "m", 4).call(Script.CLOSE, 3)
+                .call(Script.CLOSE, 2);
         TimeMachine x = run(s.call(Script.PIPE, "p"));
         return x.descriptor(0, 2, 2);
     }
@@ -209,7 +217,8 @@ public final class EdgeThingsTest {
         for (int i = 1; i < 500; i++) {
             bytes.append(", ").append(i * 7);
         }
-        Script s = script().data(bytes.toString()).call(Script.PIPE, "p").call(Script.WRITE, 3, "w", 500).call(Script.READ, 2, "b", 400);
+        Script s = script().data(bytes.toString()).call(Script.PIPE, "p").call(Script.WRITE, 3, "w", 500)
+                .call(Script.READ, 2, "b", 400);
         TimeMachine x = run(s.call(Script.WRITE, 3, "w", 400).call(Script.READ, 2, "b", 99));
         c.same("bytes", x.descriptor(0, 2, 2), 401);
         c.same("the last of the first ones", x.held(0, 2, 0), 499 * 7 & 255);
@@ -279,7 +288,8 @@ public final class EdgeThingsTest {
 
     private static void shownBytes() {
         c.sentence("open things", "and SHOWN ones: the latest 2048.");
-        Script s = script().add("la t0, b\nli t1, 1\nsb t1, 0(t0)").call(Script.WRITE, 1, "b", 512).add("la t0, b\nsb zero, 0(t0)");
+        Script s = script().add("la t0, b\nli t1, 1\nsb t1, 0(t0)").call(Script.WRITE, 1, "b", 512)
+                .add("la t0, b\nsb zero, 0(t0)");
         s.call(Script.WRITE, 1, "b", 512).call(Script.WRITE, 1, "b", 512).call(Script.WRITE, 1, "b", 511).add("e: ");
         s.call(Script.WRITE, 1, "m", 1).call(Script.WRITE, 1, "m", 2).call(Script.WRITE, 1, "b", 512);
         TimeMachine x = s.stay().booted(c);
@@ -333,7 +343,8 @@ public final class EdgeThingsTest {
     }
 
     private static void emptyPipe() {
-        c.sentence("open things", "of a pipe: as many as there are, at most n; without any: 0, if no opening writes, else WAIT (n 0: 0 always).");
+        c.sentence("open things", "of a pipe: as many as there are, at most n; without any: 0, if no opening writes,"
+                + " else WAIT (n 0: 0 always).");
         Script s = script().call(Script.PIPE, "p").call(Script.WRITE, 3, "m", 5);
         s.kept(Script.READ, 2, "b", 0);
         s.kept(Script.READ, 2, "b", 2);
@@ -362,7 +373,8 @@ public final class EdgeThingsTest {
     private static void nothingRead() {
         c.sentence("open things", "READING n bytes");
         // The bytes that come are as many as there are; what is behind them in memory stays.
-        Script s = script().add("la t0, b\nli t1, 9\nsb t1, 2(t0)\nsb t1, 0(t0)").call(Script.PIPE, "p").call(Script.WRITE, 3, "m", 2);
+        Script s = script().add("la t0, b\nli t1, 9\nsb t1, 2(t0)\nsb t1, 0(t0)").call(Script.PIPE, "p")
+                .call(Script.WRITE, 3, "m", 2);
         s.kept(Script.READ, 2, "b", 5);
         TimeMachine x = run(s);
         int b = x.label(0, 1);
@@ -392,7 +404,8 @@ public final class EdgeThingsTest {
     }
 
     private static void consoleWaits() {
-        c.sentence("open things", "Of the console: as of a pipe, but while nothing was typed WAIT (n 0: 0 always, nothing is taken)");
+        c.sentence("open things", "Of the console: as of a pipe, but while nothing was typed WAIT (n 0: 0 always,"
+                + " nothing is taken)");
         Script s = script();
         s.kept(Script.READ, 0, "b", 0);
         s.kept(Script.READ, 0, "b", 5);
@@ -416,8 +429,8 @@ public final class EdgeThingsTest {
     }
 
     private static void consoleEnds() {
-        c.sentence("open things", "byte 4, if it is met ahead of the n-th one, is an END: what is behind it stays, it is taken and not given, also when it"
-                + " is the first (then 0 bytes are read).");
+        c.sentence("open things", "byte 4, if it is met ahead of the n-th one, is an END: what is behind it stays, it"
+                + " is taken and not given, also when it is the first (then 0 bytes are read).");
         int[] amounts = {1, 2, 3, 4};
         int[] given = {1, 2, 2, 2};
         int[] left = {5, 4, 3, 3};
@@ -457,7 +470,8 @@ public final class EdgeThingsTest {
         TimeMachine x = run(s);
         c.answers("answers", x, 0, 0, 0, 1, 0, BROKEN, BROKEN, BROKEN);
         // One that waits for room is told when the last one that reads goes.
-        Script w = script().call(Script.PIPE, "p").call(Script.FORK).add("beqz a0, 1f").call(Script.CLOSE, 2).call(Script.WRITE, 3, "b", 512);
+        Script w = script().call(Script.PIPE, "p").call(Script.FORK).add("beqz a0, 1f").call(Script.CLOSE, 2)
+                .call(Script.WRITE, 3, "b", 512);
         w.kept(Script.WRITE, 3, "m", 1);
         w.stay().add("1: ").call(Script.SLEEP, 1).call(Script.CLOSE, 2);
         x = run(w);
@@ -468,13 +482,15 @@ public final class EdgeThingsTest {
     }
 
     private static void fullPipe() {
-        c.sentence("open things", "into a pipe: BROKEN; all, if it has room for them, else WAIT (n 0: 0 always, unless broken).");
+        c.sentence("open things", "into a pipe: BROKEN; all, if it has room for them, else WAIT (n 0: 0 always,"
+                + " unless broken).");
         Script s = script().call(Script.PIPE, "p").call(Script.FORK).add("beqz a0, 1f");
         s.kept(Script.WRITE, 3, "b", 510);
         s.kept(Script.WRITE, 3, "b", 2);
         s.kept(Script.WRITE, 3, "b", 0);
         s.kept(Script.WRITE, 3, "b", 3);
-        s.stay().add("1: ").call(Script.SLEEP, 1).call(Script.READ, 2, "b", 2).call(Script.SLEEP, 1).call(Script.READ, 2, "b", 1);
+        s.stay().add("1: ").call(Script.SLEEP, 1).call(Script.READ, 2, "b", 2).call(Script.SLEEP, 1)
+                .call(Script.READ, 2, "b", 1);
         TimeMachine x = run(s);
         c.answers("all, and n 0 when it is full", x, 0, 0, 510, 2, 0);
         c.same("it waits", x.process(0, 7), 7);
@@ -550,8 +566,8 @@ public final class EdgeThingsTest {
     }
 
     private static void hows() {
-        c.sentence("open things", "how is 1 .. 63: 1, 2, 4 rights (1 or 2; 4 only with 2), 8 makes it, if it is missing, 16 (with 8) it must be missing, 32"
-                + " (with 2) takes its bytes away (else INVALID)");
+        c.sentence("open things", "how is 1 .. 63: 1, 2, 4 rights (1 or 2; 4 only with 2), 8 makes it, if it is"
+                + " missing, 16 (with 8) it must be missing, 32 (with 2) takes its bytes away (else INVALID)");
         for (int part = 0; part < 4; part++) {
             Script s = script().call(Script.OPEN, "n", 9);
             for (int how = 16 * part; how < 16 * part + 16; how++) {
@@ -615,10 +631,11 @@ public final class EdgeThingsTest {
     }
 
     private static void duplicates() {
-        c.sentence("open things", "DUP: a new descriptor (b is -1), or b, is to the same opening as a (what b was to goes; nothing changes if b is a): answers"
-                + " which (INVALID when b is not -1 .. 15; BAD, FULL).");
+        c.sentence("open things", "DUP: a new descriptor (b is -1), or b, is to the same opening as a (what b was to"
+                + " goes; nothing changes if b is a): answers which (INVALID when b is not -1 .. 15; BAD, FULL).");
         Script s = script();
-        int[][] given = {{0, -2}, {0, 16}, {0, Integer.MIN_VALUE}, {9, 16}, {9, 15}, {0, -1}, {0, 15}, {0, 0}, {15, 1}, {2, 2}};
+        int[][] given = {{0, -2}, {0, 16}, {0, Integer.MIN_VALUE}, {9, 16}, {9, 15}, {0, -1}, {0, 15}, {0, 0}, {15, 1},
+            {2, 2}};
         for (int[] it : given) {
             s.kept(Script.DUP, it[0], it[1]);
         }
@@ -649,12 +666,16 @@ public final class EdgeThingsTest {
     }
 
     private static void seeks() {
-        c.sentence("open things", "SEEK: the position becomes b (c 0), itself and b (1), or the file's end and b (2): answers it (INVALID for another c; BAD,"
-                + " also when it is no file, or it would be below 0 or above 512).");
+        c.sentence("open things", "SEEK: the position becomes b (c 0), itself and b (1), or the file's end and b (2):"
+                + " answers it (INVALID for another c; BAD, also when it is no file, or it would be below 0 or above"
+                + " 512).");
         Script s = script().call(Script.OPEN, "n", 10).call(Script.WRITE, 2, "m", 6);
-        int[][] given = {{0, 0}, {512, 0}, {513, 0}, {-1, 0}, {0, 1}, {1, 1}, {-512, 1}, {-1, 1}, {512, 1}, {1, 1}, {-6, 2}, {-7, 2}, {506, 2},
-            {507, 2}, {0, 2}, {Integer.MAX_VALUE, 1}, {Integer.MIN_VALUE, 2}, {0, 3}, {0, -1}, {0, Integer.MAX_VALUE}, {0, 1}};
-        int[] due = {0, 512, BAD, BAD, 512, BAD, 0, BAD, 512, BAD, 0, BAD, 512, BAD, 6, BAD, BAD, INVALID, INVALID, INVALID, 6};
+        int[][] given = {{0, 0}, {512, 0}, {513, 0}, {-1, 0}, {0, 1}, {1, 1}, {-512, 1}, {-1, 1}, {512, 1}, {1, 1},
+            {-6, 2}, {-7, 2}, {506, 2},
+            {507, 2}, {0, 2}, {Integer.MAX_VALUE, 1}, {Integer.MIN_VALUE, 2}, {0, 3}, {0, -1}, {0, Integer.MAX_VALUE},
+            {0, 1}};
+        int[] due = {0, 512, BAD, BAD, 512, BAD, 0, BAD, 512, BAD, 0, BAD, 512, BAD, 6, BAD, BAD, INVALID, INVALID,
+            INVALID, 6};
         for (int[] it : given) {
             s.kept(Script.SEEK, 2, it[0], it[1]);
         }
@@ -684,7 +705,8 @@ public final class EdgeThingsTest {
         c.sentence("open things", "RENAME: it gets the other one; another file that has that loses it; 0; MISSING.");
         Script s = script();
         s.kept(Script.RENAME, "n", "k");
-        s.call(Script.OPEN, "n", 10).call(Script.WRITE, 2, "m", 1).call(Script.OPEN, "k", 10).call(Script.WRITE, 3, "m", 2);
+        s.call(Script.OPEN, "n", 10).call(Script.WRITE, 2, "m", 1).call(Script.OPEN, "k", 10)
+                .call(Script.WRITE, 3, "m", 2);
         s.kept(Script.RENAME, "n", "n");
         s.kept(Script.RENAME, "n", "k");
         s.kept(Script.OPEN, "n", 1);
@@ -701,11 +723,12 @@ public final class EdgeThingsTest {
     }
 
     private static void pipeAddresses() {
-        c.sentence("calls", "5 PIPE: (a no multiple of 4: INVALID) the two new descriptors, reading and writing, come into the words at a and a + 4; answers"
-                + " 0.");
+        c.sentence("calls", "5 PIPE: (a no multiple of 4: INVALID) the two new descriptors, reading and writing, come"
+                + " into the words at a and a + 4; answers 0.");
         Script s = script();
         int[] given = {65529, 65530, 65531, 1, -1, 65532, 65536, 0, 2048, -4, 61436, 1016, 65528, 61440};
-        int[] due = {INVALID, INVALID, INVALID, INVALID, INVALID, ADDRESS, ADDRESS, ADDRESS, ADDRESS, ADDRESS, ADDRESS, ADDRESS, 0, 0};
+        int[] due = {INVALID, INVALID, INVALID, INVALID, INVALID, ADDRESS, ADDRESS, ADDRESS, ADDRESS, ADDRESS, ADDRESS,
+            ADDRESS, 0, 0};
         for (int a : given) {
             s.kept(Script.PIPE, a);
         }
@@ -734,7 +757,8 @@ public final class EdgeThingsTest {
     private static void bytesThere() {
         c.sentence("calls", "ADDRESS if one of the c bytes is on no page that may be written, or read.");
         Script s = new Script().data("n: .asciz \"f\"").call(Script.OPEN, "n", 11).call(Script.WRITE, 2, 0, 512);
-        int[][] given = {{65535, 1}, {65535, 2}, {65024, 512}, {65025, 512}, {65536, 1}, {65536, 0}, {-1, 1}, {-1, 2}, {61439, 1}, {61439, 2}, {61440, 1},
+        int[][] given = {{65535, 1}, {65535, 2}, {65024, 512}, {65025, 512}, {65536, 1}, {65536, 0}, {-1, 1}, {-1, 2},
+            {61439, 1}, {61439, 2}, {61440, 1},
             {2047, 1}, {2047, 2}, {3071, 1}, {3071, 2}, {0, 1}, {1023, 2}, {1024, 1}};
         for (int[] it : given) {
             s.call(Script.SEEK, 2, 0, 0);
@@ -748,9 +772,11 @@ public final class EdgeThingsTest {
         TimeMachine x = s.stay().booted(c);
         x.run(5000);
         c.same("where the data is", x.program(0, 1), 2048);
-        int[] read = {1, ADDRESS, 512, ADDRESS, ADDRESS, 0, ADDRESS, ADDRESS, ADDRESS, ADDRESS, 1, ADDRESS, ADDRESS, 1, ADDRESS, ADDRESS, ADDRESS,
+        int[] read = {1, ADDRESS, 512, ADDRESS, ADDRESS, 0, ADDRESS, ADDRESS, ADDRESS, ADDRESS, 1, ADDRESS, ADDRESS, 1,
+            ADDRESS, ADDRESS, ADDRESS,
             ADDRESS};
-        int[] write = {1, ADDRESS, 512, ADDRESS, ADDRESS, 0, ADDRESS, ADDRESS, ADDRESS, ADDRESS, 1, 1, 2, 1, ADDRESS, 1, 2, 1};
+        int[] write = {1, ADDRESS, 512, ADDRESS, ADDRESS, 0, ADDRESS, ADDRESS, ADDRESS, ADDRESS, 1, 1, 2, 1, ADDRESS, 1,
+            2, 1};
         for (int i = 0; i < given.length; i++) {
             c.answers("READ to " + given[i][0], x, 0, i, read[i]);
             c.answers("WRITE from " + given[i][0], x, 0, given.length + i, write[i]);
@@ -759,9 +785,11 @@ public final class EdgeThingsTest {
 
     private static void names() {
         c.sentence("calls", "A NAME in memory: 1 to 15 bytes 33 .. 126, then a 0 (else INVALID");
-        Script s = new Script().data("e: .byte 0").data("f: .asciz \"!\"").data("g: .asciz \"~\"").data("h: .asciz \" \"");
+        Script s = new Script().data("e: .byte 0").data("f: .asciz \"!\"").data("g: .asciz \"~\"")
+                .data("h: .asciz \" \"");
         s.data("i: .byte 127, 0").data("j: .asciz \"123456789012345\"").data("k: .asciz \"1234567890123456\"");
-        s.data("l: .byte 0x61, 31, 0").data("o: .asciz \"12345678901234 \"").data("q: .byte 0x61, 255, 0").data("r: .asciz \"ab c\"");
+        s.data("l: .byte 0x61, 31, 0").data("o: .asciz \"12345678901234 \"").data("q: .byte 0x61, 255, 0")
+                .data("r: .asciz \"ab c\"");
         for (String name : new String[] {"e", "f", "g", "h", "i", "j", "k", "l", "o", "q", "r"}) {
             s.kept(Script.OPEN, name, 9);
         }
@@ -769,7 +797,8 @@ public final class EdgeThingsTest {
         c.answers("answers", x, 0, 0, INVALID, 2, 3, INVALID, INVALID, 4, INVALID, INVALID, INVALID, INVALID, INVALID);
         c.same("files", x.count(12), 3);
         // Names that differ in their last byte alone are two.
-        Script t = new Script().data("a: .asciz \"12345678901234a\"").data("d: .asciz \"12345678901234b\"").data("e: .asciz \"12345678901234\"");
+        Script t = new Script().data("a: .asciz \"12345678901234a\"").data("d: .asciz \"12345678901234b\"")
+                .data("e: .asciz \"12345678901234\"");
         t.kept(Script.OPEN, "a", 25);
         t.kept(Script.OPEN, "d", 25);
         t.kept(Script.OPEN, "e", 25);
@@ -781,7 +810,8 @@ public final class EdgeThingsTest {
 
     private static void nameAddresses() {
         c.sentence("calls", "ADDRESS first, if a byte up to the 0, or to the sixteenth, may not be read)");
-        Script s = new Script().add("li t0, 65520\nli t1, 65\n1: sb t1, 0(t0)\naddi t0, t0, 1\nli t2, 65536\nbne t0, t2, 1b");
+        Script s = new Script().add("li t0, 65520\nli t1, 65\n1: sb t1, 0(t0)\naddi t0, t0, 1\nli t2, 65536\n"
+                + "bne t0, t2, 1b");
         s.kept(Script.OPEN, 65520, 9);
         s.kept(Script.OPEN, 65521, 9);
         s.kept(Script.OPEN, 65535, 9);
@@ -797,7 +827,8 @@ public final class EdgeThingsTest {
         s.add("sb zero, -1(sp)");
         s.kept(Script.OPEN, 65530, 9);
         TimeMachine x = run(s);
-        c.answers("answers", x, 0, 0, INVALID, ADDRESS, ADDRESS, ADDRESS, ADDRESS, 2, INVALID, INVALID, ADDRESS, INVALID);
+        c.answers("answers", x, 0, 0, INVALID, ADDRESS, ADDRESS, ADDRESS, ADDRESS, 2, INVALID, INVALID, ADDRESS,
+                INVALID);
     }
 
     private static void twoNames() {
@@ -819,8 +850,10 @@ public final class EdgeThingsTest {
     }
 
     private static void told() {
-        c.sentence("promise 26", "-1 for another what, for a d that is not 0 .. 15, and for 1 .. 4 of one that is none.");
-        Script s = script().call(Script.PIPE, "p").call(Script.WRITE, 3, "m", 3).call(Script.OPEN, "n", 15).call(Script.WRITE, 4, "m", 7);
+        c.sentence("promise 26", "-1 for another what, for a d that is not 0 .. 15, and for 1 .. 4 of one that is"
+                + " none.");
+        Script s = script().call(Script.PIPE, "p").call(Script.WRITE, 3, "m", 3).call(Script.OPEN, "n", 15)
+                .call(Script.WRITE, 4, "m", 7);
         s.call(Script.SEEK, 4, 2, 0).call(Script.DUP, 4, 15).call(Script.DUP, 4, 14);
         TimeMachine x = run(s);
         x.outside(1, 0x41, 1);
@@ -848,9 +881,10 @@ public final class EdgeThingsTest {
     }
 
     private static void held() {
-        c.sentence("promise 27", "Byte i of the file (or of what is in the pipe, from the oldest on, or was typed and not read) to which descriptor d of process"
-                + " p is; -1 when there is none.");
-        Script s = script().call(Script.PIPE, "p").call(Script.WRITE, 3, "m", 3).call(Script.READ, 2, "b", 1).call(Script.OPEN, "n", 15);
+        c.sentence("promise 27", "Byte i of the file (or of what is in the pipe, from the oldest on, or was typed and"
+                + " not read) to which descriptor d of process p is; -1 when there is none.");
+        Script s = script().call(Script.PIPE, "p").call(Script.WRITE, 3, "m", 3).call(Script.READ, 2, "b", 1)
+                .call(Script.OPEN, "n", 15);
         s.call(Script.WRITE, 4, "m", 2).call(Script.READ, 0, "b", 1);
         TimeMachine x = s.stay().booted(c);
         x.outside(1, 0x787980ffL, 4);
@@ -876,7 +910,8 @@ public final class EdgeThingsTest {
 
     private static void shown() {
         c.sentence("promise 28", "The k-th of the bytes shown that are kept, from the oldest on; -1 for none.");
-        Script s = script().add("la t0, b\nli t1, -1\nsb t1, 0(t0)").call(Script.WRITE, 1, "m", 2).call(Script.WRITE, 1, "b", 2);
+        Script s = script().add("la t0, b\nli t1, -1\nsb t1, 0(t0)").call(Script.WRITE, 1, "m", 2)
+                .call(Script.WRITE, 1, "b", 2);
         TimeMachine x = run(s);
         int[] at = {-1, 0, 1, 2, 3, 4, Integer.MIN_VALUE, Integer.MAX_VALUE};
         int[] due = {-1, 'a', 'b', 255, 0, -1, -1, -1};

@@ -1,11 +1,12 @@
 import java.util.List;
 
-/** The boundary cases that the document names of outside events, counts, the recording, and promises 12 to 16, 21 and 29. */
+/** The boundary cases that the document names of events, counts and the recording: promises 12 to 16, 21 and 29. */
 public final class EdgeTimeTest {
     private static final Checks c = new Checks();
     private static final String LOOP = "1: addi s0, s0, 1\nj 1b";
     /** Process 0 goes round; 1 waits for a random word; 2 has ended. */
-    private static final String THREE = "li a7, 1\necall\nbeqz a0, 1f\necall\nbeqz a0, 2f\nli a7, 15\necall\n3: j 3b\n1: li a7, 21\necall\n"
+    private static final String THREE = "li a7, 1\necall\nbeqz a0, 1f\necall\nbeqz a0, 2f\nli a7, 15\necall\n3: j 3b\n"
+            + "1: li a7, 21\necall\n"
             + "2: li a7, 0\necall";
     private static final int SWITCH = 0;
     private static final int TYPED = 1;
@@ -132,7 +133,8 @@ public final class EdgeTimeTest {
         c.same("by 1", x.count(6), (1L << 40) + 1);
         x.run(50);
         c.same("ticks leave it", x.count(6), (1L << 40) + 1);
-        c.same("2047 more", Checks.replay(x, 0, 0x80, 0x10, 0x0b, 0x80, 0x80, 0x80, 0x80, 0x80, 0x20, 0x05, 0xff, 0x0f), 2048);
+        c.same("2047 more", Checks.replay(x, 0, 0x80, 0x10, 0x0b, 0x80, 0x80, 0x80, 0x80, 0x80, 0x20, 0x05, 0xff, 0x0f),
+                2048);
         c.same("the most", x.count(6), 1L << 51);
     }
 
@@ -204,7 +206,8 @@ public final class EdgeTimeTest {
     }
 
     private static void asItWas() {
-        c.sentence("the recording", "All that is told of the machine is what it was at NOW, after all events of the recording that came at this count.");
+        c.sentence("the recording", "All that is told of the machine is what it was at NOW, after all events of the"
+                + " recording that came at this count.");
         TimeMachine x = c.booted(LOOP);
         x.outside(CLOCK, 1, 0);
         x.run(5);
@@ -227,7 +230,8 @@ public final class EdgeTimeTest {
     }
 
     private static void goesOn() {
-        c.sentence("the recording", "Where NOW is below END, run() goes on with the events of the recording; the machine is the same there again.");
+        c.sentence("the recording", "Where NOW is below END, run() goes on with the events of the recording; the"
+                + " machine is the same there again.");
         TimeMachine x = c.booted("li a7, 21\n1: ecall\nadd s0, s0, a0\nj 1b");
         for (int i = 1; i <= 5; i++) {
             x.run(100);
@@ -249,11 +253,13 @@ public final class EdgeTimeTest {
 
     private static void sameAgain() {
         c.sentence("what it is", "any count can be gone to, forwards or backwards, and shows the machine as it was");
-        TimeMachine x = c.booted("1: la t0, w\nlw t1, 0(t0)\naddi t1, t1, 1\nsw t1, 0(t0)\nli a7, 7\nli a0, 1\nmv a1, t0\nli a2, 1\necall\nj 1b\n"
+        TimeMachine x = c.booted("1: la t0, w\nlw t1, 0(t0)\naddi t1, t1, 1\nsw t1, 0(t0)\nli a7, 7\nli a0, 1\n"
+                + "mv a1, t0\nli a2, 1\necall\nj 1b\n"
                 + ".data\nw: .word 0");
         // Around the counts at which copies of the machine may stand.
         x.run(60000);
-        for (int at : new int[] {60000, 0, 59999, 1, 255, 256, 257, 2047, 2048, 2049, 4096, 8191, 8192, 8193, 16384, 32767, 32768, 40960, 57344, 57345}) {
+        for (int at : new int[] {60000, 0, 59999, 1, 255, 256, 257, 2047, 2048, 2049, 4096, 8191, 8192, 8193, 16384,
+            32767, 32768, 40960, 57344, 57345}) {
             x.go(at);
             c.same("NOW", x.count(0), at);
             c.same("the word at " + at, Checks.word(x, 0, 1024), (at + 6) / 11);
@@ -263,7 +269,8 @@ public final class EdgeTimeTest {
     }
 
     private static void scheduled() {
-        c.sentence("the recording", "SCHEDULED events (from a log) are taken as soon as the count to which they belong is END, before anything else");
+        c.sentence("the recording", "SCHEDULED events (from a log) are taken as soon as the count to which they"
+                + " belong is END, before anything else");
         TimeMachine x = c.booted(LOOP);
         Checks.watch(x, 0, "count == 3 && pid == 0");
         // CLOCK by 5 at 0, at 3, at 3, and at 5.
@@ -307,7 +314,8 @@ public final class EdgeTimeTest {
 
     private static void firstThatCant() {
         c.sentence("the recording", "the first that can't be taken");
-        int[][] logs = {{2, 0x03, 1, 5, 0x30, 0}, {2, 0x03, 1, 5, 0x32, 0, 1}, {2, 0x03, 1, 5, 0x02, 0, 16}, {2, 0x03, 1, 5, 0x02, 0, 31}};
+        int[][] logs = {{2, 0x03, 1, 5, 0x30, 0}, {2, 0x03, 1, 5, 0x32, 0, 1}, {2, 0x03, 1, 5, 0x02, 0, 16},
+            {2, 0x03, 1, 5, 0x02, 0, 31}};
         for (int[] log : logs) {
             TimeMachine x = c.booted(LOOP);
             c.same("replay", Checks.replay(x, 0, log), 2);
@@ -384,28 +392,35 @@ public final class EdgeTimeTest {
     }
 
     private static void wrongEvents() {
-        c.sentence("promise 12", "IllegalArgumentException when something is not as said of events; else IllegalStateException when nothing is booted.");
+        c.sentence("promise 12", "IllegalArgumentException when something is not as said of events; else"
+                + " IllegalStateException when nothing is booted.");
         TimeMachine none = new TimeMachine();
         TimeMachine booted = c.booted(LOOP);
-        long[][] wrong = {{-1, 0, 1}, {5, 0, 1}, {6, 0, 1}, {Integer.MIN_VALUE, 0, 1}, {Integer.MAX_VALUE, 0, 1}, {0, -1, 0}, {0, 16, 0},
-            {0, 1L << 32, 0}, {0, Long.MIN_VALUE, 0}, {1, 0, 0}, {1, 0, 9}, {1, 0, -1}, {1, 0, Integer.MAX_VALUE}, {2, -1, 1}, {2, 16, 1},
-            {2, 1L << 40, 1}, {2, 0, 0}, {2, 0, 32}, {2, 0, -1}, {2, 0, Integer.MIN_VALUE}, {3, -1, 0}, {3, (1L << 40) + 1, 0},
+        long[][] wrong = {{-1, 0, 1}, {5, 0, 1}, {6, 0, 1}, {Integer.MIN_VALUE, 0, 1}, {Integer.MAX_VALUE, 0, 1},
+            {0, -1, 0}, {0, 16, 0},
+            {0, 1L << 32, 0}, {0, Long.MIN_VALUE, 0}, {1, 0, 0}, {1, 0, 9}, {1, 0, -1}, {1, 0, Integer.MAX_VALUE},
+            {2, -1, 1}, {2, 16, 1},
+            {2, 1L << 40, 1}, {2, 0, 0}, {2, 0, 32}, {2, 0, -1}, {2, 0, Integer.MIN_VALUE}, {3, -1, 0},
+            {3, (1L << 40) + 1, 0},
             {3, Long.MAX_VALUE, 0}, {3, Long.MIN_VALUE, 0}};
         for (long[] it : wrong) {
             String what = "outside(" + it[0] + ", " + it[1] + ", " + it[2] + ")";
             c.argument(what, () -> none.outside((int) it[0], it[1], (int) it[2]));
             c.argument(what, () -> booted.outside((int) it[0], it[1], (int) it[2]));
         }
-        long[][] good = {{0, 0, -1}, {0, 15, 99}, {1, -1, 1}, {1, 5, 8}, {2, 0, 1}, {2, 15, 31}, {3, 0, -5}, {3, 1L << 40, 0},
+        long[][] good = {{0, 0, -1}, {0, 15, 99}, {1, -1, 1}, {1, 5, 8}, {2, 0, 1}, {2, 15, 31}, {3, 0, -5},
+            {3, 1L << 40, 0},
             {4, Long.MIN_VALUE, -1}, {4, -1, 77}};
         for (long[] it : good) {
-            c.state("outside(" + it[0] + ", " + it[1] + ", " + it[2] + ")", () -> none.outside((int) it[0], it[1], (int) it[2]));
+            c.state("outside(" + it[0] + ", " + it[1] + ", " + it[2] + ")",
+                    () -> none.outside((int) it[0], it[1], (int) it[2]));
         }
         c.same("none came", booted.count(3), 0);
     }
 
     private static void otherBits() {
-        c.sentence("promise 12", "RANDOM the lowest 32 bits of a (what else is in a, b doesn't matter): 0 when it is taken");
+        c.sentence("promise 12", "RANDOM the lowest 32 bits of a (what else is in a, b doesn't matter): 0 when it is"
+                + " taken");
         TimeMachine x = c.booted("li a7, 21\necall\nmv s0, a0\n1: j 1b");
         c.same("RANDOM", x.outside(RANDOM, 0x123456789abcdef0L, -1), 0);
         c.same("TYPED", x.outside(TYPED, 0x123456789abcdef0L, 3), 0);
@@ -462,7 +477,8 @@ public final class EdgeTimeTest {
     }
 
     private static void wrongRuns() {
-        c.sentence("promise 13", "IllegalArgumentException when n is not 0 .. 60000; else IllegalStateException when nothing is booted.");
+        c.sentence("promise 13", "IllegalArgumentException when n is not 0 .. 60000; else IllegalStateException when"
+                + " nothing is booted.");
         TimeMachine none = new TimeMachine();
         TimeMachine x = c.booted(LOOP);
         for (int n : new int[] {-1, 60001, Integer.MIN_VALUE, Integer.MAX_VALUE}) {
@@ -506,7 +522,8 @@ public final class EdgeTimeTest {
     }
 
     private static void lastCountFirst() {
-        c.sentence("promise 13", "asked before each tick: 4 the count is 60000; 1 no current process, but some that wait; 2 no process but ended ones");
+        c.sentence("promise 13", "asked before each tick: 4 the count is 60000; 1 no current process, but some that"
+                + " wait; 2 no process but ended ones");
         TimeMachine x = c.booted(LOOP);
         x.run(59999);
         x.outside(SIGNAL, 0, 9);
@@ -525,7 +542,8 @@ public final class EdgeTimeTest {
     private static void waiting() {
         c.sentence("promise 13", "1 no current process, but some that wait; 2 no process but ended ones");
         // A parent that waits for a child that has ended is READY; one that sleeps waits, with an ended child.
-        TimeMachine x = c.booted("li a7, 1\necall\nbeqz a0, 1f\nli a7, 19\nli a0, 9\necall\nli a7, 0\necall\n1: li a7, 0\necall");
+        TimeMachine x = c.booted("li a7, 1\necall\nbeqz a0, 1f\nli a7, 19\nli a0, 9\necall\nli a7, 0\necall\n"
+                + "1: li a7, 0\necall");
         x.run(1000);
         c.same("one waits, one has ended", x.process(0, 0) * 10 + x.process(1, 0), 23);
         c.same("reason", x.reason(), 1);
@@ -536,7 +554,8 @@ public final class EdgeTimeTest {
     }
 
     private static void nothingAsked() {
-        c.sentence("promise 13", "0 if it is none of these, all n being made (or n being 0: then nothing is asked but 5).");
+        c.sentence("promise 13", "0 if it is none of these, all n being made (or n being 0: then nothing is asked but"
+                + " 5).");
         TimeMachine x = c.booted("li a7, 21\necall\nli a7, 0\necall");
         Checks.watch(x, 0, "1");
         c.same("run(0)", x.run(0), 0);
@@ -574,7 +593,8 @@ public final class EdgeTimeTest {
     }
 
     private static void behindEach() {
-        c.sentence("promise 13", "behind each tick and its events, the last one's, too: 5 a scheduled event could not be taken; 3 a break is hit");
+        c.sentence("promise 13", "behind each tick and its events, the last one's, too: 5 a scheduled event could not"
+                + " be taken; 3 a break is hit");
         TimeMachine x = c.booted(LOOP);
         Checks.watch(x, 4, "count == 3");
         c.same("the last tick", x.run(3), 3);
@@ -608,7 +628,8 @@ public final class EdgeTimeTest {
     }
 
     private static void reasons() {
-        c.sentence("promise 14", "Why the latest run stopped (also one of a machine before); 3 + 8 * the least break that was hit. 0 before any.");
+        c.sentence("promise 14", "Why the latest run stopped (also one of a machine before); 3 + 8 * the least break"
+                + " that was hit. 0 before any.");
         TimeMachine x = new TimeMachine();
         c.same("before any", x.reason(), 0);
         Checks.assemble(x, 0, LOOP);
@@ -753,12 +774,14 @@ public final class EdgeTimeTest {
         c.same("all", x.cut(), 60000);
     }
 
-    private static final String WRITES = "la t0, w\nsw t0, 4(t0)\nsb t0, 3(t0)\nsh t0, 8(t0)\nlr.w t1, (t0)\nsc.w t2, t1, (t0)\nsc.w t2, t1, (t0)\n"
+    private static final String WRITES = "la t0, w\nsw t0, 4(t0)\nsb t0, 3(t0)\nsh t0, 8(t0)\nlr.w t1, (t0)\n"
+            + "sc.w t2, t1, (t0)\nsc.w t2, t1, (t0)\n"
             + "lw t1, 0(t0)\nsb t0, -1(sp)\nsb t0, 11(t0)\nli a7, 21\necall\n.data\nw: .word 0, 0, 0";
 
     private static void wrote() {
-        c.sentence("promise 21", "The greatest count below NOW, from which a tick wrote the byte at an address of the space of process p: a store, an atomic one"
-                + " (one that is conditional, when it was done), or PIPE or READ");
+        c.sentence("promise 21", "The greatest count below NOW, from which a tick wrote the byte at an address of the"
+                + " space of process p: a store, an atomic one (one that is conditional, when it was done), or PIPE"
+                + " or READ");
         TimeMachine x = c.booted(WRITES);
         x.run(100);
         int w = 1024;
@@ -810,8 +833,10 @@ public final class EdgeTimeTest {
     private static void wroteByCalls() {
         c.sentence("promise 21", "or PIPE or READ");
         Script s = new Script().data(".align 2").data("p: .word 0, 0, 0").data("b: .space 600").data("n: .asciz \"f\"");
-        s.add("a: ").call(Script.PIPE, "p").add("d: ").call(Script.WRITE, 3, "b", 512).add("e: ").call(Script.READ, 2, "b", 512).add("f: ");
-        s.call(Script.WRITE, 3, "b", 1).add("g: ").call(Script.READ, 2, "b", 5).add("h: ").call(Script.READ, 2, "b", 0).add("i: ");
+        s.add("a: ").call(Script.PIPE, "p").add("d: ").call(Script.WRITE, 3, "b", 512).add("e: ")
+                .call(Script.READ, 2, "b", 512).add("f: ");
+        s.call(Script.WRITE, 3, "b", 1).add("g: ").call(Script.READ, 2, "b", 5).add("h: ").call(Script.READ, 2, "b", 0)
+                .add("i: ");
         s.call(Script.PIPE, 65530).call(Script.READ, 9, "b", 5).call(Script.OPEN, "n", 11).call(Script.READ, 4, "b", 5);
         TimeMachine x = s.stay().booted(c);
         int[] before = new int[7];
@@ -837,8 +862,10 @@ public final class EdgeTimeTest {
     private static void wroteByNumber() {
         c.sentence("promise 21", "(whichever process had the number then, with whatever program)");
         // 1 writes and ends; another 1 comes, which writes another byte; then it is another program.
-        Script s = new Script().data("k: .space 8").call(Script.FORK).add("bnez a0, 1f\nla t0, k\nsb t0, 0(t0)").call(Script.EXIT, 0);
-        s.add("1: ").call(Script.WAIT).call(Script.FORK).add("bnez a0, 2f\nla t0, k\nsb t0, 1(t0)").call(Script.EXEC, 1).add("2: ").stay();
+        Script s = new Script().data("k: .space 8").call(Script.FORK).add("bnez a0, 1f\nla t0, k\nsb t0, 0(t0)")
+                .call(Script.EXIT, 0);
+        s.add("1: ").call(Script.WAIT).call(Script.FORK).add("bnez a0, 2f\nla t0, k\nsb t0, 1(t0)").call(Script.EXEC, 1)
+                .add("2: ").stay();
         TimeMachine x = new TimeMachine();
         Checks.assemble(x, 0, s.source());
         Checks.assemble(x, 1, "sb sp, -1(sp)\nli a7, 21\necall");

@@ -3,14 +3,15 @@ import java.util.List;
 
 /** Every two signs between three numbers, with what is due by their ranks: to see which sign is done first. */
 final class Ranks {
-    private static final long[][] NUMBERS = {{7, 3, 2}, {1, 1, 1}, {100, 7, 3}, {6, 1, 4}, {2, 5, 0}, {0, 1, 3}, {5, 4, 1}, {9, 2, 2}, {3, 0, 1}, {1, 2, 3}};
+    private static final long[][] NUMBERS = {{7, 3, 2}, {1, 1, 1}, {100, 7, 3}, {6, 1, 4}, {2, 5, 0}, {0, 1, 3},
+        {5, 4, 1}, {9, 2, 2}, {3, 0, 1}, {1, 2, 3}};
     private final String[] signs;
     private final int[] rank;
     private final boolean longs;
     final List<String> texts = new ArrayList<>();
     final List<Long> due = new ArrayList<>();
 
-    /** The signs from those that are done first to the last, each string those of one sort; of longs, or else of ints. */
+    /** The signs from those that are done first to the last, those of one sort together; of longs, or of ints. */
     Ranks(boolean longs, String... sorts) {
         this.longs = longs;
         List<String> all = new ArrayList<>();

@@ -31,7 +31,8 @@ final class Steps {
 
     /** Likewise, with nothing of the text behind the lines. */
     int lastSignal(String lines, String data) {
-        TimeMachine x = c.booted("li a7, 1\necall\nbeqz a0, 1f\nli a7, 3\necall\nmv s0, a0\nli a7, 21\necall\n1: " + lines
+        TimeMachine x = c.booted("li a7, 1\necall\nbeqz a0, 1f\nli a7, 3\necall\nmv s0, a0\nli a7, 21\necall\n1: "
+                + lines
                 + "\n.data\n" + data);
         x.run(2000);
         c.same("the parent waits for a random word", x.process(0, 7), 21);
