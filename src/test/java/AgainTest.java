@@ -1,3 +1,4 @@
+import java.util.Arrays;
 import java.util.Random;
 
 /** What an object was used for before makes no difference to programs, breaks and machines that come then. */
@@ -9,7 +10,8 @@ public final class AgainTest {
         ".data\nd: .word d, e\n.text\ne: la a0, d",
         "addi a0, a0, k", ".space 32768\nnop", "j a\n.align 4\na: lw a0, a(a1)\n.ascii \"x\", \"y\"",
         "li a0, 5\nc.nop\nl: k: j l", "1:1:1: .half 1b\n.word 1 / 0",
-        ".byte k\n.equ k, 3\nb: a:", "x0:", "bnez s0, . + 2000\nbeq a0, a1, . + 5000\ncall . - 8\n0:"};
+        ".byte k\n.equ k, 3\nb: a:", "x0:", "1: nop\n.byte 1f", "jalr a1\n.byte 5",
+        "bnez s0, . + 2000\nbeq a0, a1, . + 5000\ncall . - 8\n0:"};
     /** Four processes that reserve words, sleep, yield and wait, with a handler that sleeps, too. */
     private static final String BUSY = "li a7, 17\nli a0, 3\nla a1, h\necall\nli a7, 1\necall\necall\n1: la s0, w\n"
             + "lr.w t0, (s0)\naddi t0, t0, 1\n"
@@ -21,8 +23,10 @@ public final class AgainTest {
 
     public static void main(String[] args) {
         programs();
+        shorterTexts();
         breaks();
         boots();
+        bootsBehindLongRuns();
         branches();
         c.finish();
     }
@@ -58,6 +62,42 @@ public final class AgainTest {
                     x.boot(p);
                 }
             }
+        }
+    }
+
+    /** What was on the tape before is not there behind what is shorter. */
+    private static void shorterTexts() {
+        c.about("a shorter text behind a longer one");
+        String[] texts = {".byte 'a'x", ".byte 'a', '\\n', 1 << 2, 8 >> 1", ".ascii \"ab\\\"c\", \"d\"",
+            "1: j 1b\n.half 0x1fb, 0b11",
+            "lr.w.aqrl a0, (a1)", "aa: .equ ab, %hi(7 * 1000)"};
+        for (String text : texts) {
+            TimeMachine x = new TimeMachine();
+            for (int length = text.length(); length >= 0; length--) {
+                String part = text.substring(0, length);
+                TimeMachine fresh = new TimeMachine();
+                int fault = Checks.assemble(fresh, 0, part);
+                c.same("fault of <" + part + ">", Checks.assemble(x, 0, part), fault);
+                c.same("image of <" + part + ">", fault == 0 ? Checks.image(x, 0) : "", Checks.image(fresh, 0));
+            }
+        }
+        String[] conditions = {"x12 <= 0xab12 && old(x1) >> 3 != count || ~[1024] == -1",
+            "12 << 2 >= byte[5] | half[4] ^ changed(pc)"};
+        for (String text : conditions) {
+            TimeMachine x = c.booted("nop");
+            for (int length = text.length(); length >= 0; length--) {
+                String part = text.substring(0, length);
+                TimeMachine fresh = c.booted("nop");
+                int fault = Checks.watch(fresh, 0, part);
+                c.same("fault of <" + part + ">", Checks.watch(x, 0, part), fault);
+                c.same("value of <" + part + ">", fault == 0 ? x.value(0) : 0, fault == 0 ? fresh.value(0) : 0);
+            }
+        }
+        int[] log = {4, 0x03, 0x81, 0x01, 7, 0x05, 1, 0x31, 2, 65, 66, 67, 0x0c, 1, 2, 3, 4};
+        TimeMachine x = c.booted("nop");
+        for (int length = log.length; length >= 0; length--) {
+            int[] part = Arrays.copyOf(log, length);
+            c.same("a log of " + length, Checks.replay(x, 0, part), Checks.replay(c.booted("nop"), 0, part));
         }
     }
 
@@ -116,6 +156,23 @@ public final class AgainTest {
             x.go((int) x.count(1) / 3);
             fresh.go((int) fresh.count(1) / 3);
             same("before", x, fresh);
+        }
+    }
+
+    /** Copies of a machine before, however many there were, are not gone back to. */
+    private static void bootsBehindLongRuns() {
+        c.about("a machine behind a long one");
+        String other = "li s0, 9\n1: addi s0, s0, 2\nj 1b";
+        for (int ticks : new int[] {1, 255, 256, 1000, 1791, 1792, 1800, 2047, 2048, 3500, 4096, 16000, 60000}) {
+            TimeMachine x = c.booted("1: addi s0, s0, 1\nj 1b");
+            Checks.assemble(x, 1, other);
+            x.run(ticks);
+            x.boot(1);
+            x.run(3000);
+            for (int at : new int[] {2999, 0, 100, 255, 256, 257, 1500, 1792, 2048, 3000}) {
+                x.go(at);
+                c.same("s0 at " + at + " behind " + ticks, x.register(0, 8), at == 0 ? 0 : 9 + at / 2 * 2);
+            }
         }
     }
 

@@ -29,7 +29,7 @@ final class Crowd {
         s.add(lines);
         TimeMachine x = new TimeMachine();
         c.same("fault of a crowd", Checks.assemble(x, 0, s.source()), 0);
-        Checks.assemble(x, 1, "li a0, 77\nli a7, 0\necall");
+        Checks.assemble(x, 1, "li a0, 77\nli a7, 0\necall\n.data\n.byte 1");
         x.boot(0);
         x.run(60000);
         c.same("the parent stays", x.process(0, 7), 21);

@@ -188,6 +188,7 @@ public final class EdgeBreakTest {
             if (it < 32 || it > 126) {
                 TimeMachine x = new TimeMachine();
                 c.same("character " + it, Checks.watch(x, 0, "1  " + (char) it), 1 + 8 * 3);
+                c.same("before all others, " + it, Checks.watch(x, 0, "foo" + (char) it), 1 + 8 * 3);
             }
         }
         fault(1, 6, "foo + \n");

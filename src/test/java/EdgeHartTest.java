@@ -25,6 +25,7 @@ public final class EdgeHartTest {
         evenPlaces();
         uppers();
         jumps();
+        places();
         branches();
         loadedNumbers();
         storedNumbers();
@@ -334,6 +335,43 @@ public final class EdgeHartTest {
         t.gives("li a0, -4\nnop\nj 2f\n1: j 3f\n2: jalr a2, 1b + 4(a0)\n3: nop", 14);
     }
 
+    /** Where a tick of a line jumps to, by its offset. */
+    private static void jumps(String before, String line, int... offsets) {
+        for (int offset : offsets) {
+            TimeMachine x = c.booted(before + line + " . + " + offset);
+            int place = x.program(0, 0) - (line.startsWith("c.") ? 2 : 4);
+            x.run(before.isEmpty() ? 1 : 2);
+            c.same(line + " . + " + offset, x.register(0, 32), place + offset);
+        }
+    }
+
+    private static void places() {
+        c.sentence("long ones", "J: bits 31, 12 .. 19, 20, 21 .. 30 and a 0, from the highest on.");
+        jumps("", "jal ra,", -1048576, -1048574, -524288, -4096, -2050, -2048, -2, 2, 4, 6, 8, 16, 32, 64, 128, 256,
+                512, 1024, 2046, 2048,
+                4096, 8192, 65536, 524288, 1048574);
+        c.sentence("long ones", "T: bits 31, 7, 25 .. 30, 8 .. 11 and a 0.");
+        jumps("", "beq zero, zero,", -4096, -4094, -2050, -2048, -34, -32, -30, -2, 2, 4, 8, 16, 30, 32, 64, 128, 256,
+                512, 1024, 2046, 2048,
+                4094);
+        c.sentence("short ones", "bits 2 .. 12 J[11|4|9:8|10|6|7|3:1|5], signed.");
+        int[] all = {-2048, -2046, -1024, -512, -256, -128, -64, -32, -16, -8, -4, -2, 2, 4, 8, 16, 32, 64, 128, 256,
+            512, 1024, 1366, 682,
+            2046};
+        jumps("", "c.j", all);
+        jumps("", "c.jal", all);
+        c.sentence("short ones", "bits 10 .. 12 T[8|4:3], bits 2 .. 6 T[7:6|2:1|5], signed.");
+        int[] few = {-256, -254, -128, -64, -32, -16, -8, -4, -2, 2, 4, 8, 16, 32, 64, 128, 170, 84, 254};
+        jumps("", "c.beqz a0,", few);
+        jumps("c.li a0, 1\n", "c.bnez a0,", few);
+        c.sentence("long ones", "IMMEDIATES, signed: I: bits 20 .. 31.");
+        for (int e : new int[] {-2048, -1024, -2, 0, 2, 4, 64, 1024, 2046}) {
+            TimeMachine x = c.booted("jalr ra, " + e + "(sp)");
+            x.run(1);
+            c.same("jalr ra, " + e + "(sp)", x.register(0, 32), 65536 + e);
+        }
+    }
+
     private static void branch(String op, int a, int b, boolean taken) {
         t.gives("li a0, " + a + "\nli a1, " + b + "\nli a2, 1\n" + op + " a0, a1, 1f\nli a2, 2\n1: nop", taken ? 1 : 2);
     }
@@ -388,6 +426,13 @@ public final class EdgeHartTest {
         t.gives(begin + "sh a1, 0(a0)\nlw a2, 0(a0)", 0x5678);
         t.gives(begin + "sh a1, 2(a0)\nlw a2, 0(a0)", 0x56780000);
         t.gives(begin + "sw a1, 0(a0)\nlw a2, 0(a0)", 0x12345678);
+        String ones = "la a0, d\nli a1, -1\nsw zero, 0(a0)\n";
+        t.gives(ones + "sb a1, 0(a0)\nlw a2, 0(a0)", 0xff);
+        t.gives(ones + "sh a1, 0(a0)\nlw a2, 0(a0)", 0xffff);
+        t.gives(ones + "sh a1, 2(a0)\nlw a2, 0(a0)", 0xffff0000);
+        t.gives(ones + "sw a1, 0(a0)\nlw a2, 0(a0)", -1);
+        t.gives(ones + "sw a1, 0(a0)\nsh zero, 0(a0)\nlw a2, 0(a0)", 0xffff0000);
+        t.gives(ones + "sw a1, 0(a0)\nsb zero, 3(a0)\nlw a2, 0(a0)", 0x00ffffff);
         t.gives(begin + "addi a0, a0, 2047\nsb a1, -2047(a0)\nla a0, d\nlw a2, 0(a0)", 0x78);
         t.gives(begin + "addi a0, a0, -2047\nsb a1, 2047(a0)\nla a0, d\nlw a2, 0(a0)", 0x78);
         t.gives(begin + "addi a0, a0, 1024\naddi a0, a0, 1024\nsb a1, -2048(a0)\nla a0, d\nlw a2, 0(a0)", 0x78);
@@ -629,8 +674,8 @@ public final class EdgeHartTest {
                 + " 0xc01 and 0xc81 of the CLOCK");
         t.gives("rdcycle a2", 0);
         t.gives("nop\nrdinstret a2", 1);
-        t.gives("nop\nrdcycleh a2", 0);
-        t.gives("nop\nrdinstreth a2", 0);
+        t.gives("li a2, 5\nrdcycleh a2", 0);
+        t.gives("li a2, 5\nrdinstreth a2", 0);
         TimeMachine x = c.booted("rdtime s0\nrdtimeh s1\nrdtime s2\nrdtimeh s3");
         x.outside(3, 0xffffffffL, 0);
         x.run(2);
@@ -697,6 +742,20 @@ public final class EdgeHartTest {
         t.gives("li a2, 12\nli a3, 10\nc.xor a2, a3", 6);
         t.gives("li a2, 12\nli a3, 10\nc.or a2, a3", 14);
         t.gives("li a2, 12\nli a3, 10\nc.and a2, a3", 8);
+        for (int r = 8; r < 16; r++) {
+            int other = 8 + (r + 3) % 8;
+            String set = "li x" + r + ", 12\nli x" + other + ", 10\n";
+            String end = "\nmv a2, x" + r;
+            t.gives(set + "c.sub x" + r + ", x" + other + end, 2);
+            t.gives(set + "c.or x" + r + ", x" + other + end, 14);
+            t.gives(set + "c.andi x" + r + ", -5" + end, 8);
+            t.gives(set + "c.srli x" + r + ", 2" + end, 3);
+            t.gives(set + "c.srai x" + r + ", 1" + end, 6);
+            t.gives("la x" + other + ", d\nc.lw x" + r + ", 4(x" + other + ")" + end, MOST);
+            t.gives("la x" + other + ", d\nli x" + r + ", 9\nc.sw x" + r + ", 4(x" + other + ")\nlw a2, 4(x" + other
+                    + ")", 9);
+            t.gives("c.addi4spn x" + r + ", 8" + end, 65544);
+        }
         c.sentence("short ones", "F 1 as jump and link with D 1, F 5 with D 0");
         t.gives("j 2f\n1: j 3f\n.space 2038\n2: c.jal 1b\n3: mv a2, ra", 2044);
         t.gives("c.jal 2f\n.space 2044\n2: mv a2, ra", 2);
@@ -724,6 +783,7 @@ public final class EdgeHartTest {
         c.sentence("short ones", "F 4, bit 12 0: B 0: jump to x D, D not 0; else x D = x B.");
         t.gives("la a0, 1f\nli ra, 5\nc.jr a0\nnop\n1: mv a2, ra", 5);
         t.gives("li t6, -9\nc.mv a2, t6", -9);
+        t.gives("li ra, 5\nli a2, 7\nli t6, -9\nc.mv a2, t6", -9);
         c.sentence("short ones", "Bit 12 1: D 0 and B 0 BREAK; B 0: x1 = place + 2, jump to x D; else x D += x B.");
         t.gives("la a0, 1f\nc.jalr a0\nnop\n1: mv a2, ra", 10);
         t.gives("la ra, 1f\nc.jalr ra\nnop\n1: mv a2, ra", 10);

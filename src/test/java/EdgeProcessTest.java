@@ -172,6 +172,37 @@ public final class EdgeProcessTest {
         TimeMachine y = c.booted(begin + "lw t1, 0(t0)\n2: j 2b\n1: j 1b\n.data\nd: .word 1");
         y.run(20);
         c.same("reading takes none", y.count(10), 6);
+        copiesOfCopies();
+        writtenByKernel();
+    }
+
+    /** A child's heap is copied by its own child. */
+    private static void copiesOfCopies() {
+        Script s = new Script().call(Script.FORK).add("bnez a0, 9f").call(Script.GROW, 4096)
+                .add("li t0, 3000\nli t1, 5\nsb t1, 0(t0)");
+        s.call(Script.FORK).add("bnez a0, 9f\nli t0, 3000\nli t1, 6\nsb t1, 0(t0)\n9: ").stay();
+        TimeMachine x = s.booted(c);
+        x.run(100);
+        c.same("the child's", x.peek(1, 3000), 5);
+        c.same("its child's", x.peek(2, 3000), 6);
+        c.same("none of the first one", x.peek(0, 3000), -1);
+        c.same("frames", x.count(10), 6 + 2 + 1);
+    }
+
+    /** What PIPE and READ put into memory comes into frames of the process's own, on both of two pages. */
+    private static void writtenByKernel() {
+        Script s = new Script().data("p: .word 0, 0").call(Script.GROW, 5120).call(Script.PIPE, "p")
+                .call(Script.WRITE, 3, 0, 8);
+        s.call(Script.FORK).add("bnez a0, 9f").call(Script.PIPE, 3068).call(Script.READ, 2, 4094, 4).add("9: ").stay();
+        TimeMachine x = s.booted(c);
+        x.run(100);
+        c.same("PIPE's words, on two pages", Checks.word(x, 1, 3068) * 10 + Checks.word(x, 1, 3072), 45);
+        c.same("the parent's", Checks.word(x, 0, 3068) | Checks.word(x, 0, 3072), 0);
+        for (int i = 0; i < 4; i++) {
+            c.same("READ's byte " + i, x.peek(1, 4094 + i), x.peek(1, i));
+            c.same("the parent's", x.peek(0, 4094 + i), 0);
+        }
+        c.same("frames", x.count(10), 6 + 3 + 3);
     }
 
     private static void frames() {
@@ -779,9 +810,9 @@ public final class EdgeProcessTest {
     private static void execFrames() {
         c.sentence("calls", "FULL, if the frames that are free, its old pages being there still, are fewer than its"
                 + " pages, with the STACK's");
-        // The program has one page of text and the stack's four.
-        c.same("five are free", crowd.code(2, Script.EXEC, 1), 77);
-        c.same("four are free", crowd.code(3, Script.EXEC, 1), FULL & 255);
+        // The program has a page of text, one of data, and the stack's four.
+        c.same("six are free", crowd.code(1, Script.EXEC, 1), 77);
+        c.same("five are free", crowd.code(2, Script.EXEC, 1), FULL & 255);
         c.same("none is free", crowd.code(7, Script.EXEC, 1), FULL & 255);
         c.same("MISSING first", crowd.code(7, Script.EXEC, 2), MISSING & 255);
     }
@@ -1100,6 +1131,11 @@ public final class EdgeProcessTest {
         c.same("PIPE over two pages, the second its own", crowd.code(6, "li a0, 8188\nli a7, 5\necall" + end), 0);
         c.same("PIPE over two pages, with one frame", crowd.code(6, "li a0, 16380\nli a7, 5\necall" + end), 128 + 7);
         c.same("PIPE over two pages, with two", crowd.code(5, "li a0, 16380\nli a7, 5\necall" + end), 0);
+        c.same("PIPE up to a page's end", crowd.code(6, "li a0, 16376\nli a7, 5\necall" + end), 0);
+        c.same("READ of a page's first byte", crowd.code(6, "li a0, 2\nli a1, 16384\n" + read + "1\necall" + end), 1);
+        c.same("READ of a page's last byte", crowd.code(6, "li a0, 2\nli a1, 16383\n" + read + "1\necall" + end), 1);
+        c.same("READ of both, with one", crowd.code(6, "li a0, 2\nli a1, 16383\n" + read + "2\necall" + end), 128 + 7);
+        c.same("READ of both, with two", crowd.code(5, "li a0, 2\nli a1, 16383\n" + read + "2\necall" + end), 2);
     }
 
     private static void wrongBoots() {

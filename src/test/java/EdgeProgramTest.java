@@ -215,6 +215,8 @@ public final class EdgeProgramTest {
             t.faults(10, names[i] + " . + 1048580", names[i] + " . - 1048574", names[i] + " . + 1");
             t.allFine(names[i] + " . + 1048578", names[i] + " . - 1048572");
         }
+        t.reads("beq t6, t6, . + 5000", 0, "bne t6, t6, .+8");
+        t.reads("bgeu s2, t5, . + 5000", 0, "bltu s2, t5, .+8");
     }
 
     private static void atOnce() {

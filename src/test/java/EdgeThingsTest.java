@@ -25,6 +25,7 @@ public final class EdgeThingsTest {
         shownBytes();
         bad();
         emptyPipe();
+        manyPipes();
         nothingRead();
         fileReads();
         consoleWaits();
@@ -370,6 +371,32 @@ public final class EdgeThingsTest {
         c.answers("no opening writes", x, 0, 0, 0);
     }
 
+    private static void manyPipes() {
+        c.sentence("open things", "without any: 0, if no opening writes, else WAIT");
+        // Each of six pipes in turn is the one that is empty, or full; the others have some bytes.
+        for (int k = 0; k < 6; k++) {
+            Script s = script();
+            for (int i = 0; i < 6; i++) {
+                s.call(Script.PIPE, "p").call(Script.WRITE, 3 + 2 * i, "b", 5 + i);
+            }
+            s.call(Script.READ, 2 + 2 * k, "b", 512);
+            String lines = s.lines();
+            TimeMachine x = run(script().add(lines).call(Script.READ, 2 + 2 * k, "b", 1));
+            c.same("READ of pipe " + k, x.process(0, 7), 6);
+            x = run(script().add(lines).call(Script.CLOSE, 3 + 2 * k).call(Script.READ, 2 + 2 * k, "b", 1)
+                    .add("mv s0, a0"));
+            c.same("without a writing end", x.process(0, 7) * 10 + x.register(0, 8), 210);
+            x = run(script().add(lines).call(Script.WRITE, 3 + 2 * k, "b", 512).call(Script.WRITE, 3 + 2 * k, "b", 1));
+            c.same("WRITE to pipe " + k, x.process(0, 7), 7);
+            x = run(script().add(lines).call(Script.CLOSE, 2 + 2 * k).call(Script.WRITE, 3 + 2 * k, "b", 1)
+                    .add("mv s0, a0"));
+            c.same("without a reading end", x.process(0, 7) * 10 + x.register(0, 8), 210 + BROKEN);
+            for (int i = 0; i < 6; i++) {
+                c.same("bytes of pipe " + i, x.descriptor(0, 3 + 2 * i, 2), i == k ? 0 : 5 + i);
+            }
+        }
+    }
+
     private static void nothingRead() {
         c.sentence("open things", "READING n bytes");
         // The bytes that come are as many as there are; what is behind them in memory stays.
@@ -684,6 +711,15 @@ public final class EdgeThingsTest {
             c.answers("SEEK " + given[i][0] + ", " + given[i][1], x, 0, i, due[i]);
         }
         c.same("its length", x.descriptor(0, 2, 2), 6);
+        Script t = script().call(Script.CLOSE, 0).call(Script.CLOSE, 1).call(Script.OPEN, "n", 11);
+        t.kept(Script.WRITE, 0, "m", 4);
+        t.kept(Script.SEEK, 0, -3, 2);
+        t.kept(Script.READ, 0, "b", 2);
+        t.kept(Script.DUP, 0, 9);
+        t.kept(Script.CLOSE, 0);
+        t.kept(Script.SEEK, 9, 0, 1);
+        x = run(t);
+        c.answers("where the console was", x, 0, 0, 4, 1, 2, 9, 0, 3);
     }
 
     private static void unlinks() {
@@ -720,6 +756,15 @@ public final class EdgeThingsTest {
         c.same("the one that got the name", x.descriptor(0, 4, 2), 1);
         c.same("the one that lost it", x.descriptor(0, 3, 2), 2);
         c.same("files with names", x.count(12), 0);
+        // The file that was made first loses its name.
+        Script t = script().call(Script.OPEN, "n", 10).call(Script.WRITE, 2, "m", 1).call(Script.OPEN, "k", 10);
+        t.kept(Script.RENAME, "k", "n");
+        t.kept(Script.OPEN, "n", 1);
+        t.kept(Script.OPEN, "k", 1);
+        x = run(t);
+        c.answers("answers", x, 0, 0, 0, 4, MISSING);
+        c.same("the one that got the name", x.descriptor(0, 4, 2), 0);
+        c.same("files with names", x.count(12), 1);
     }
 
     private static void pipeAddresses() {

@@ -10,8 +10,9 @@ final class Steps {
     int result(String lines) {
         TimeMachine x = c.booted(lines + "\nebreak\n.data\nd: .word 0x818283f4, 0x7fffffff\n");
         x.run(5000);
-        // The break ends the process; the count before shows its registers.
+        // The break ends the process; the count before shows its registers, and that it came to the break.
         x.go((int) x.count(0) - 1);
+        c.same("the place at the end of " + lines.replace('\n', ';'), x.register(0, 32), x.program(0, 0) - 4);
         return x.register(0, 12);
     }
 
