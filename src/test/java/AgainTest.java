@@ -1,3 +1,4 @@
+import java.nio.charset.StandardCharsets;
 import java.util.Arrays;
 import java.util.Random;
 
@@ -65,39 +66,56 @@ public final class AgainTest {
         }
     }
 
-    /** What was on the tape before is not there behind what is shorter. */
+    private static byte[] twenty(String text) {
+        return (text + " ".repeat(20)).substring(0, 20).getBytes(StandardCharsets.ISO_8859_1);
+    }
+
+    /** Feeds twenty bytes, of which the first n count. */
+    private static void feedPart(TimeMachine x, byte[] twenty, int n) {
+        Checks.feed(x, twenty);
+        c.same("end", x.end(n), n);
+    }
+
+    /** What was fed behind the bytes that count is not there. */
     private static void shorterTexts() {
-        c.about("a shorter text behind a longer one");
-        String[] texts = {".byte 'a'x", ".byte 'a', '\\n', 1 << 2, 8 >> 1", ".ascii \"ab\\\"c\", \"d\"",
-            "1: j 1b\n.half 0x1fb, 0b11",
-            "lr.w.aqrl a0, (a1)", "aa: .equ ab, %hi(7 * 1000)"};
+        c.about("a part of what was fed");
+        String[] texts = {".byte 'a'x          ", ".byte '\\n', 1<<2, 'z", ".byte 8>>1, 0x1fb, 0",
+            ".ascii \"ab\\\"c\", \"d",
+            "1: j 1b; .half 0b11x", "lr.w.aqrl a0, (a1)xx", "a: .equ ab, %hi(70)0", "sc.w.rl a0,a1, (a2)1",
+            "li a0,'\\\\'  ,1   "};
         for (String text : texts) {
-            TimeMachine x = new TimeMachine();
-            for (int length = text.length(); length >= 0; length--) {
-                String part = text.substring(0, length);
+            byte[] twenty = twenty(text.replace(';', '\n'));
+            for (int n = 0; n <= 20; n++) {
+                TimeMachine x = new TimeMachine();
+                feedPart(x, twenty, n);
                 TimeMachine fresh = new TimeMachine();
-                int fault = Checks.assemble(fresh, 0, part);
-                c.same("fault of <" + part + ">", Checks.assemble(x, 0, part), fault);
-                c.same("image of <" + part + ">", fault == 0 ? Checks.image(x, 0) : "", Checks.image(fresh, 0));
+                Checks.feed(fresh, Arrays.copyOf(twenty, n));
+                c.same("fault of " + n + " of <" + text + ">", x.assemble(0), fresh.assemble(0));
+                c.same("image of " + n + " of <" + text + ">", Checks.image(x, 0), Checks.image(fresh, 0));
             }
         }
-        String[] conditions = {"x12 <= 0xab12 && old(x1) >> 3 != count || ~[1024] == -1",
-            "12 << 2 >= byte[5] | half[4] ^ changed(pc)"};
+        String[] conditions = {"x12<=0xab12&&old(x1)", "3>>1!=count||~5==-1>", "12<<byte[5]|half[4]^",
+            "!x1>=0x12f&changed(1"};
         for (String text : conditions) {
-            TimeMachine x = c.booted("nop");
-            for (int length = text.length(); length >= 0; length--) {
-                String part = text.substring(0, length);
+            byte[] twenty = twenty(text);
+            for (int n = 0; n <= 20; n++) {
+                TimeMachine x = c.booted("nop");
+                feedPart(x, twenty, n);
                 TimeMachine fresh = c.booted("nop");
-                int fault = Checks.watch(fresh, 0, part);
-                c.same("fault of <" + part + ">", Checks.watch(x, 0, part), fault);
-                c.same("value of <" + part + ">", fault == 0 ? x.value(0) : 0, fault == 0 ? fresh.value(0) : 0);
+                Checks.feed(fresh, Arrays.copyOf(twenty, n));
+                int fault = fresh.watch(0);
+                c.same("fault of " + n + " of <" + text + ">", x.watch(0), fault);
+                c.same("value of " + n + " of <" + text + ">", fault == 0 ? x.value(0) : 0,
+                        fault == 0 ? fresh.value(0) : 0);
             }
         }
-        int[] log = {4, 0x03, 0x81, 0x01, 7, 0x05, 1, 0x31, 2, 65, 66, 67, 0x0c, 1, 2, 3, 4};
-        TimeMachine x = c.booted("nop");
-        for (int length = log.length; length >= 0; length--) {
-            int[] part = Arrays.copyOf(log, length);
-            c.same("a log of " + length, Checks.replay(x, 0, part), Checks.replay(c.booted("nop"), 0, part));
+        byte[] log = Checks.bytes(4, 0x03, 0x81, 0x01, 7, 0x05, 1, 0x31, 2, 65, 66, 67, 0x0c, 1, 2, 3, 4, 0x13, 1, 0);
+        for (int n = 0; n <= 20; n++) {
+            TimeMachine x = c.booted("nop");
+            feedPart(x, log, n);
+            TimeMachine fresh = c.booted("nop");
+            Checks.feed(fresh, Arrays.copyOf(log, n));
+            c.same("a log of " + n, x.replay(0), fresh.replay(0));
         }
     }
 

@@ -189,20 +189,26 @@ public final class EdgeProcessTest {
         c.same("frames", x.count(10), 6 + 2 + 1);
     }
 
-    /** What PIPE and READ put into memory comes into frames of the process's own, on both of two pages. */
+    /** What PIPE and READ put into memory comes into frames of the process's own: those of the bytes, and no others. */
     private static void writtenByKernel() {
-        Script s = new Script().data("p: .word 0, 0").call(Script.GROW, 5120).call(Script.PIPE, "p")
-                .call(Script.WRITE, 3, 0, 8);
-        s.call(Script.FORK).add("bnez a0, 9f").call(Script.PIPE, 3068).call(Script.READ, 2, 4094, 4).add("9: ").stay();
+        Script s = new Script().data("p: .word 0, 0").data("n: .asciz \"f\"").call(Script.GROW, 12288)
+                .call(Script.PIPE, "p");
+        s.call(Script.OPEN, "n", 9).call(Script.WRITE, 3, 0, 8).call(Script.FORK).add("bnez a0, 9f")
+                .call(Script.PIPE, 3068);
+        s.call(Script.READ, 2, 5119, 2).call(Script.READ, 2, 7166, 2).call(Script.READ, 2, 8200, 1)
+                .call(Script.READ, 4, 9300, 5);
+        s.add("9: ").stay();
         TimeMachine x = s.booted(c);
         x.run(100);
-        c.same("PIPE's words, on two pages", Checks.word(x, 1, 3068) * 10 + Checks.word(x, 1, 3072), 45);
+        c.same("the child waits", x.process(1, 7), 21);
+        c.same("PIPE's words, on two pages", Checks.word(x, 1, 3068) * 10 + Checks.word(x, 1, 3072), 56);
         c.same("the parent's", Checks.word(x, 0, 3068) | Checks.word(x, 0, 3072), 0);
-        for (int i = 0; i < 4; i++) {
-            c.same("READ's byte " + i, x.peek(1, 4094 + i), x.peek(1, i));
-            c.same("the parent's", x.peek(0, 4094 + i), 0);
+        int[] at = {5119, 5120, 7166, 7167, 8200};
+        for (int i = 0; i < at.length; i++) {
+            c.same("READ's byte " + i, x.peek(1, at[i]), x.peek(1, i));
+            c.same("the parent's", x.peek(0, at[i]), 0);
         }
-        c.same("frames", x.count(10), 6 + 3 + 3);
+        c.same("frames", x.count(10), 16 + 2 + 2 + 1 + 1);
     }
 
     private static void frames() {

@@ -388,6 +388,7 @@ public final class EdgeThingsTest {
             c.same("without a writing end", x.process(0, 7) * 10 + x.register(0, 8), 210);
             x = run(script().add(lines).call(Script.WRITE, 3 + 2 * k, "b", 512).call(Script.WRITE, 3 + 2 * k, "b", 1));
             c.same("WRITE to pipe " + k, x.process(0, 7), 7);
+            c.same("all but the last byte", x.descriptor(0, 3 + 2 * k, 2), 512);
             x = run(script().add(lines).call(Script.CLOSE, 2 + 2 * k).call(Script.WRITE, 3 + 2 * k, "b", 1)
                     .add("mv s0, a0"));
             c.same("without a reading end", x.process(0, 7) * 10 + x.register(0, 8), 210 + BROKEN);
