@@ -585,6 +585,13 @@ public final class EdgeBreakTest {
         fault(1, 3, "old");
         fault(1, 5, "old(1");
         fault(1, 120, "1 + " + " ".repeat(116));
+        for (String sign : new String[] {"||", "&&", "==", "!=", "<=", ">=", "<<", ">>"}) {
+            fault(1, 3, "1" + sign);
+            fault(1, 4, "1 " + sign);
+        }
+        for (String sign : new String[] {"<", ">", "|", "^", "&", "+", "-", "*", "/", "%"}) {
+            fault(1, 2, "1" + sign);
+        }
     }
 
     private static void faultTwo() {
