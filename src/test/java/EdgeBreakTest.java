@@ -808,18 +808,25 @@ public final class EdgeBreakTest {
                 + " is not there, or nothing is booted.");
         TimeMachine none = new TimeMachine();
         TimeMachine x = machine();
-        for (int k : new int[] {-1, 8, Integer.MIN_VALUE, Integer.MAX_VALUE}) {
+        int[] wrong = {-1, 8, Integer.MIN_VALUE, Integer.MAX_VALUE};
+        for (int k : wrong) {
             c.argument("value(" + k + ")", () -> none.value(k));
-            c.argument("backTo(" + k + ")", () -> none.backTo(k));
             c.argument("value(" + k + ")", () -> x.value(k));
-            c.argument("backTo(" + k + ")", () -> x.backTo(k));
         }
         for (int k = 0; k < 8; k++) {
             int it = k;
             c.state("value(" + k + ")", () -> x.value(it));
-            c.state("backTo(" + k + ")", () -> x.backTo(it));
             Checks.watch(none, k, "1");
             c.state("value(" + k + "), nothing booted", () -> none.value(it));
+        }
+        c.sentence("promise 20", "Throws as value.");
+        for (int k : wrong) {
+            c.argument("backTo(" + k + ")", () -> none.backTo(k));
+            c.argument("backTo(" + k + ")", () -> x.backTo(k));
+        }
+        for (int k = 0; k < 8; k++) {
+            int it = k;
+            c.state("backTo(" + k + ")", () -> x.backTo(it));
             c.state("backTo(" + k + "), nothing booted", () -> none.backTo(it));
         }
         c.same("NOW stays", x.count(0), 7);

@@ -23,6 +23,7 @@ public final class EdgeHartTest {
         conditionals();
         retired();
         evenPlaces();
+        nextPlaces();
         uppers();
         jumps();
         places();
@@ -312,6 +313,17 @@ public final class EdgeHartTest {
         t.gives("la a0, 1f + 2\njalr a2, -1(a0)\nnop\n1: li a2, 6", 6);
     }
 
+    private static void nextPlaces() {
+        c.sentence("the hart", "Behind it the place is 2 or 4 more,");
+        TimeMachine x = c.booted("c.nop\nnop\nc.li a0, 1\nbeq zero, a0, 0\nc.beqz a0, 0\nlw a1, 0(zero)\n"
+                + "sw a1, -4(sp)\nfence");
+        int[] due = {2, 6, 8, 12, 14, 18, 22, 26};
+        for (int place : due) {
+            x.run(1);
+            c.same("the place", x.register(0, 32), place);
+        }
+    }
+
     private static void uppers() {
         c.sentence("long ones", "0x37 d = the bits 12 .. 31 with twelve 0 below. 0x17 d = place + such a number.");
         t.gives("lui a2, 0", 0);
@@ -544,6 +556,13 @@ public final class EdgeHartTest {
             atomic("amomax.w", w, b, Math.max(w, b));
             atomic("amominu.w", w, b, Integer.compareUnsigned(w, b) < 0 ? w : b);
             atomic("amomaxu.w", w, b, Integer.compareUnsigned(w, b) > 0 ? w : b);
+        }
+        c.sentence("long ones", "0x2f, F 2, with K the upper five bits of G (the lower two may be any), at a");
+        for (String order : new String[] {"", ".aq", ".rl", ".aqrl"}) {
+            t.gives("la a0, d\nlr.w" + order + " a2, (a0)", 0x818283f4);
+            t.gives(RESERVE + "sc.w" + order + " a2, a1, (a0)", 0);
+            t.gives("la a0, d\nli a1, 1\namoadd.w" + order + " a3, a1, (a0)\nlw a2, 0(a0)", 0x818283f5);
+            t.gives("la a0, d\nli a1, 1\namomaxu.w" + order + " a2, a1, (a0)", 0x818283f4);
         }
     }
 

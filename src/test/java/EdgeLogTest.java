@@ -156,6 +156,7 @@ public final class EdgeLogTest {
         x.outside(CLOCK, 4, 0);
         x.run(3);
         x.outside(CLOCK, 5, 0);
+        c.sentence("packing", "any other one is an entry, SAME if it can be");
         packed("SAME if it can be", x, "05" + "030301" + "0b02" + "030003" + "0b04" + "030305");
     }
 
@@ -277,6 +278,12 @@ public final class EdgeLogTest {
             for (int what = 0; what < 4; what++) {
                 c.same("event(" + k + ", " + what + ")", x.event(k, what), due[k][what]);
             }
+        }
+        c.sentence("the log", "RANDOM: X is 0; four bytes, the highest first.");
+        x = read(3, "03" + "0c01020304" + "0c00000000" + "0cfffffffe");
+        long[] words = {0x01020304L, 0, 0xfffffffeL};
+        for (int k = 0; k < words.length; k++) {
+            c.same("word " + k, x.event(k, 2), words[k]);
         }
         c.sentence("the log", "SIGNAL: a byte, the number; X is the process.");
         for (int p = 0; p < 16; p++) {

@@ -101,6 +101,7 @@ public final class EdgeProcessTest {
         x.run(2);
         c.same("WAITING", x.process(0, 0), 2);
         c.same("none", x.count(2), -1);
+        c.sentence("processes", "(asked behind each tick, and each event)");
         x.outside(4, 1, 0);
         c.same("READY by an event", x.process(0, 0), 1);
         c.same("it is the current one", x.count(2), 0);
@@ -1244,6 +1245,29 @@ public final class EdgeProcessTest {
             c.same("not booted, " + what, none.process(0, what), -1);
         }
         c.same("the code of one that is READY", x.process(0, 2), 0);
+        waitedIn();
+    }
+
+    private static void waitedIn() {
+        c.sentence("promise 23", "7 the call that it waits in (-1).");
+        String[] lines = {"li a7, 1\necall\nbeqz a0, 1f\nli a7, 3\necall\n1: j 1b",
+            "li a0, 0\nli a1, 61440\nli a2, 1\nli a7, 6\necall",
+            "li a0, 61440\nli a7, 5\necall\nli a0, 3\nli a1, 61440\nli a2, 512\nli a7, 7\necall\nli a0, 3\necall",
+            "li a0, 1\nli a7, 19\necall",
+            "li a7, 21\necall"};
+        int[] calls = {3, 6, 7, 19, 21};
+        for (int i = 0; i < calls.length; i++) {
+            TimeMachine x = c.booted(lines[i]);
+            c.same("before", x.process(0, 7), -1);
+            for (int ticks = 0; ticks < 100 && x.process(0, 0) == 1; ticks++) {
+                c.same("READY", x.process(0, 7), -1);
+                x.run(1);
+            }
+            c.same("WAITING", x.process(0, 0), 2);
+            c.same("the call", x.process(0, 7), calls[i]);
+            x.outside(2, 0, 9);
+            c.same("READY by a signal", x.process(0, 7), -1);
+        }
     }
 
     private static void peeks() {

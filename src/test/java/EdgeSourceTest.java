@@ -267,6 +267,14 @@ public final class EdgeSourceTest {
         }
         TimeMachine x = t.fine(many + "a: .byte 7b");
         c.same("labels with names", x.program(0, 3), 1);
+        c.sentence("quoted", "or a digit, and : behind it; then nothing or a STATEMENT: a name, and its OPERANDS,"
+                + " with , between them.");
+        for (int digit = 0; digit <= 9; digit++) {
+            t.makes("nop\n" + digit + ": .byte " + digit + "b", "13000000" + "04");
+        }
+        t.allFine("1:", "1: ", "1: nop", "add a0, a1, a2", "add a0,a1,a2", "nop", ".byte 1, 2");
+        t.faults(1, "1 : : nop", "add a0 a1, a2", "add a0, a1 a2", "nop,",
+                ".byte 1,, 2", ".byte ,1", ".equ a 1", "lw a0 4(a1)", "00: nop", "01: nop");
     }
 
     private static void pointLabels() {

@@ -261,7 +261,8 @@ public final class EdgeThingsTest {
         s.kept(Script.SEEK, 2, 0, 0);
         s.kept(Script.WRITE, 2, "b", 512);
         TimeMachine x = run(s);
-        c.answers("ROOM: a file would be too long", x, 0, 0, 511, ROOM, 1, ROOM, 1, ROOM, 511, 0, 512);
+        c.sentence("open things", "ROOM: a file would be too long.");
+        c.answers("answers", x, 0, 0, 511, ROOM, 1, ROOM, 1, ROOM, 511, 0, 512);
         c.same("bytes", x.descriptor(0, 2, 2), 512);
         c.same("position", x.descriptor(0, 2, 3), 512);
     }
@@ -629,6 +630,13 @@ public final class EdgeThingsTest {
         s.kept(Script.OPEN, "n", 4 + 2);
         TimeMachine x = run(s);
         c.answers("answers", x, 0, 0, MISSING, MISSING, MISSING, 2, THERE, 3, 4);
+        c.sentence("open things", "MISSING: no file of that name. THERE: one already.");
+        Script t = script().call(Script.OPEN, "n", 9).call(Script.UNLINK, "n");
+        t.kept(Script.OPEN, "n", 1);
+        t.kept(Script.OPEN, "k", 1);
+        t.kept(Script.OPEN, "n", 25);
+        t.kept(Script.OPEN, "n", 25);
+        c.answers("one that lost its name is none", run(t), 0, 0, MISSING, MISSING, 3, THERE);
         c.same("rights", x.descriptor(0, 2, 4) * 100 + x.descriptor(0, 3, 4) * 10 + x.descriptor(0, 4, 4), 116);
         c.same("position", x.descriptor(0, 4, 3), 0);
         c.same("files", x.count(12), 1);

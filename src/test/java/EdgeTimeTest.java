@@ -351,6 +351,7 @@ public final class EdgeTimeTest {
             c.same("once", x.run(3), 3);
             c.same("reason", x.reason(), 0);
         }
+        c.sentence("promise 13", "(5, without a tick, also when it was one of count 0;");
         TimeMachine x = c.booted(LOOP);
         Checks.replay(x, 0, 1, 0x38);
         c.argument("a refused run", () -> x.run(-1));
@@ -408,6 +409,8 @@ public final class EdgeTimeTest {
             c.argument(what, () -> none.outside((int) it[0], it[1], (int) it[2]));
             c.argument(what, () -> booted.outside((int) it[0], it[1], (int) it[2]));
         }
+        c.sentence("the recording", "0 SWITCH: a process 0 .. 15. 1 TYPED: 1 to 8 bytes 0 .. 255. 2 SIGNAL: a process"
+                + " 0 .. 15 and a number 1 .. 31. 3 CLOCK: how far it goes, 0 .. 2^40. 4 RANDOM: a word of 32 bits.");
         long[][] good = {{0, 0, -1}, {0, 15, 99}, {1, -1, 1}, {1, 5, 8}, {2, 0, 1}, {2, 15, 31}, {3, 0, -5},
             {3, 1L << 40, 0},
             {4, Long.MIN_VALUE, -1}, {4, -1, 77}};
@@ -905,6 +908,35 @@ public final class EdgeTimeTest {
         long[] due = {0, 0, 0, 0, 0, 0, 0, 0, 0, 0, 5, 1, 0, 1, 0, 0, 0};
         for (int what = 0; what < due.length; what++) {
             c.same("booted, count(" + what + ")", y.count(what), due[what]);
+        }
+        allCounts();
+    }
+
+    private static void allCounts() {
+        c.sentence("promise 29", "what = 0 NOW, 1 END, 2 the current process (-1), 3 events of the recording, 4 those"
+                + " that came up to NOW, 5 events that are scheduled, 6 the CLOCK, 7 random words that wait, 8 bytes"
+                + " shown in all, 9 bytes typed that wait, 10 frames in use by spaces, 11"
+                + " processes that are not ABSENT, 12 files with names, 13 openings, 14 instructions that were"
+                + " retired, 15 the length of the tape,");
+        Script s = new Script().data("n: .asciz \"f\"").call(Script.GROW, 7168).call(Script.OPEN, "n", 9)
+                .call(Script.OPEN, "n", 9);
+        s.call(Script.WRITE, 1, "n", 8).call(Script.FORK).call(Script.FORK).call(Script.FORK).add("1: j 1b");
+        TimeMachine x = s.booted(c);
+        // At 0 a CLOCK by 99, two words and seven bytes; at 30 a SWITCH to 2, which forks; at 36 a CLOCK, and four more beyond.
+        c.same("replay", Checks.replay(x, 0, 10, 0x0b, 99, 0x0c, 1, 2, 3, 4, 0x15, 0x79, 1, 2, 3, 4, 5, 6, 7, 0x20, 30,
+                0x03, 6, 1, 0x13, 100,
+                0x35), 10);
+        c.same("run", x.run(40), 40);
+        x.go(33);
+        Checks.feed(x, "abc");
+        long[] due = {33, 40, 2, 6, 5, 4, 99, 2, 8, 7, 11, 5, 1, 3, 25, 3, 0};
+        for (int what = 0; what < due.length; what++) {
+            c.same("count(" + what + ")", x.count(what), due[what]);
+        }
+        long[] first = {0, 40, 0, 6, 4, 4, 99, 2, 0, 7, 6, 1, 0, 1, 0, 3, 0};
+        x.go(0);
+        for (int what = 0; what < first.length; what++) {
+            c.same("count(" + what + ") at 0", x.count(what), first[what]);
         }
     }
 
