@@ -922,7 +922,7 @@ public final class EdgeTimeTest {
                 .call(Script.OPEN, "n", 9);
         s.call(Script.WRITE, 1, "n", 8).call(Script.FORK).call(Script.FORK).call(Script.FORK).add("1: j 1b");
         TimeMachine x = s.booted(c);
-        // At 0 a CLOCK by 99, two words and seven bytes; at 30 a SWITCH to 2, which forks; at 36 a CLOCK, and four more beyond.
+        // At 0 a CLOCK by 99, two words, seven bytes; at 30 a SWITCH to 2, which forks; at 36 a CLOCK; four more beyond.
         c.same("replay", Checks.replay(x, 0, 10, 0x0b, 99, 0x0c, 1, 2, 3, 4, 0x15, 0x79, 1, 2, 3, 4, 5, 6, 7, 0x20, 30,
                 0x03, 6, 1, 0x13, 100,
                 0x35), 10);
