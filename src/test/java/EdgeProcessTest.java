@@ -1143,6 +1143,12 @@ public final class EdgeProcessTest {
         c.same("READ of a page's last byte", crowd.code(6, "li a0, 2\nli a1, 16383\n" + read + "1\necall" + end), 1);
         c.same("READ of both, with one", crowd.code(6, "li a0, 2\nli a1, 16383\n" + read + "2\necall" + end), 128 + 7);
         c.same("READ of both, with two", crowd.code(5, "li a0, 2\nli a1, 16383\n" + read + "2\necall" + end), 2);
+        // A page that is its own, next to one that is still a copy.
+        String own = "li t0, 1024\nsb t0, 0(t0)\nli a0, 2\n";
+        c.same("READ to its own page", crowd.code(6, own + "li a1, 2040\n" + read + "8\necall" + end), 8);
+        c.same("READ to the copy", crowd.code(6, own + "li a1, 2048\n" + read + "8\necall" + end), 128 + 7);
+        c.same("READ to both", crowd.code(6, own + "li a1, 2044\n" + read + "8\necall" + end), 128 + 7);
+        c.same("READ to both, with a frame", crowd.code(5, own + "li a1, 2044\n" + read + "8\necall" + end), 8);
     }
 
     private static void wrongBoots() {
