@@ -26,6 +26,8 @@ public final class AgainTest {
         programs();
         shorterTexts();
         breaks();
+        allBreaks();
+        allPrograms();
         boots();
         bootsBehindLongRuns();
         branches();
@@ -129,6 +131,59 @@ public final class AgainTest {
             Checks.watch(x, i % 3, "old(1 + (2 || changed(x1");
             c.same("value", x.value(i % 3), 6L * i + 1 + 9);
         }
+    }
+
+    /** All eight are there; then faults, and others in their places, from each one on. */
+    private static void allBreaks() {
+        c.about("eight conditions");
+        TimeMachine x = c.booted("1: addi s0, s0, 3\nj 1b");
+        x.run(7);
+        long[] due = new long[8];
+        for (int i = 0; i < 40; i++) {
+            int k = (5 * i + i / 8) % 8;
+            due[k] = 100L * i + 6;
+            c.same("watch", Checks.watch(x, k, "old(count) + 100 * " + i), 0);
+            for (int j = 0; j < 8; j++) {
+                c.same("watch with a fault", Checks.watch(x, j, "1 + old(x1 + 2) + ]"), 1 + 8 * 18);
+            }
+            for (int j = 0; j < 8 && i >= 8; j++) {
+                c.same("value of break " + j, x.value(j), due[j]);
+            }
+        }
+        c.same("breaks", x.count(16), 8);
+    }
+
+    /** The machine has four programs, and there are four others: faults and still others change none of these. */
+    private static void allPrograms() {
+        c.about("eight programs");
+        for (int first = 0; first < 4; first++) {
+            TimeMachine x = new TimeMachine();
+            for (int p = 0; p < 4; p++) {
+                c.same("assemble", Checks.assemble(x, p, "li s0, " + (64 + p) + "\nli a0, " + (p + 1) + "\nli a7, 2\necall"), 0);
+            }
+            x.boot(0);
+            for (int i = 0; i < 12; i++) {
+                int p = (first + i) % 4;
+                c.same("assemble", Checks.assemble(x, p, ".word " + (1000 * i + p)), 0);
+                c.same("assemble with a fault", Checks.assemble(x, (p + 1) % 4, ".word 7, 7\nj foo"), 8 + 16 * 2);
+                for (int q = 0; q < 4 && i >= 4; q++) {
+                    int latest = i - Math.floorMod(i - q + first, 4);
+                    c.same("image of program " + q, Checks.image(x, q), Checks.image(with(1000 * latest + q), 0));
+                }
+            }
+            for (int p = 0; p < 4; p++) {
+                x.run(1);
+                c.same("the booted program " + p, x.register(0, 8), 64 + p);
+                x.run(3);
+            }
+            c.same("no program 4", x.register(0, 10), -2);
+        }
+    }
+
+    private static TimeMachine with(int word) {
+        TimeMachine x = new TimeMachine();
+        Checks.assemble(x, 0, ".word " + word);
+        return x;
     }
 
     /** Something comes from outside, or some ticks are made. */

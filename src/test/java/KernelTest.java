@@ -31,6 +31,7 @@ public final class KernelTest {
         noFramesForCalls();
         lastFrames();
         manyProcesses();
+        sixteenAlike();
         outsideEvents();
         endedOnes();
         c.finish();
@@ -614,6 +615,57 @@ public final class KernelTest {
         x.run(1);
         c.same("ended", x.process(7, 0), 3);
         c.same("not absent", x.count(11), 16);
+    }
+
+    /** Each of sixteen has things of its own, and becomes another program: none disturbs its neighbours. */
+    private static void sixteenAlike() {
+        c.about("sixteen processes");
+        Script script = new Script();
+        for (int i = 0; i < 4; i++) {
+            script.call(Script.FORK);
+        }
+        script.call(Script.SELF).add("mv s1, a0\nla t0, own\nsw s1, 0(t0)\nslli s2, s1, 2");
+        for (int signal : new int[] {1, 15}) {
+            script.add("li a0, " + signal + "\naddi a1, s2, 64\nli a7, 17\necall");
+        }
+        script.call(Script.GROW, 4096 + 100).call(Script.DUP, 1, 15).call(Script.YIELD);
+        script.add("la t0, own\nlw s3, 0(t0)\nli t1, 4096\nsw s1, 0(t1)").call(Script.YIELD);
+        script.add("li a0, 15\nli a1, 0\nli a7, 17\necall\nmv s4, a0").call(Script.RANDOM);
+        script.call(Script.EXEC, 1).data("own: .word 0");
+        TimeMachine x = new TimeMachine();
+        c.same("assemble", Checks.assemble(x, 0, script.source()), 0);
+        c.same("assemble", Checks.assemble(x, 1, "li a7, 15\necall\nli a7, 21\necall\nj .-8\n.data\n.word 5"), 0);
+        x.boot(0);
+        x.run(60000);
+        c.same("all wait", x.reason(), 1);
+        for (int p = 0; p < 16; p++) {
+            c.same("SELF of " + p, x.register(p, 9), p);
+            c.same("its word, " + p, x.register(p, 19), p);
+            c.same("its heap, " + p, x.peek(p, 4096), p);
+            c.same("its handler, " + p, x.register(p, 20), 4 * p + 64);
+            c.same("its pages, " + p, x.process(p, 5), 1 + 1 + 3 + 4);
+            c.same("its descriptor 15, " + p, x.descriptor(p, 15, 1), 3 * 16);
+        }
+        for (int p = 15; p >= 0; p--) {
+            x.outside(4, p, 0);
+        }
+        x.run(60000);
+        for (int p = 0; p < 16; p++) {
+            c.same("it is another program, " + p, x.process(p, 5), 1 + 1 + 4);
+            c.same("its heap, " + p, x.process(p, 6), 2048);
+            c.same("it waits, " + p, x.process(p, 7), Script.RANDOM);
+            c.same("its stack, " + p, x.register(p, 2), 65536);
+            c.same("s1, " + p, x.register(p, 9), 0);
+            c.same("its data, " + p, x.peek(p, 1024), 5);
+        }
+        c.same("frames", x.count(10), 16 * 6);
+        for (int p = 0; p < 16; p++) {
+            c.same("signal for " + p, x.outside(2, p, 1), 0);
+        }
+        x.run(60000);
+        c.same("none had a handler any more", x.reason(), 2);
+        c.same("frames", x.count(10), 0);
+        c.same("openings", x.count(13), 0);
     }
 
     private static void outsideEvents() {

@@ -30,12 +30,15 @@ public final class ModelTest {
     public static void main(String[] args) {
         int from = args.length > 0 ? Integer.parseInt(args[0]) : 1;
         int to = args.length > 1 ? Integer.parseInt(args[1]) : 1500;
-        for (int seed = from; seed <= to; seed++) {
+        // A few stories are enough to see what is wrong.
+        int left = 3;
+        for (int seed = from; seed <= to && left > 0; seed++) {
             c.about("seed " + seed);
             ModelTest it = new ModelTest(seed);
             it.calls(seed);
             if (it.differs) {
                 System.out.println("seed " + seed + ":\n" + it.story);
+                left--;
             }
         }
         c.finish();
