@@ -173,6 +173,30 @@ public final class EdgeThingsTest {
         c.answers("answers", x, 0, 0, 0, 0, 7, 3, 0, 2, 4);
         c.same("reading", x.register(0, 8), 0);
         c.same("writing", x.register(0, 9), 2);
+        leastOfAll();
+    }
+
+    /** Each descriptor in its turn is the least that is free, for each call that makes one. */
+    private static void leastOfAll() {
+        for (int d = 0; d < 16; d++) {
+            Script s = script();
+            for (int i = 2; i < 16; i++) {
+                s.call(Script.DUP, 1, i);
+            }
+            int other = d == 1 ? 0 : 1;
+            int second = Math.min(15, d + 2);
+            s.call(Script.CLOSE, d).call(Script.CLOSE, second);
+            s.kept(Script.DUP, other, -1);
+            s.call(Script.CLOSE, d);
+            s.kept(Script.OPEN, "n", 11);
+            s.call(Script.CLOSE, d);
+            s.kept(Script.PIPE, "p");
+            s.add("la t0, p\nlw s0, 0(t0)\nlw s1, 4(t0)");
+            TimeMachine x = run(s);
+            c.answers("the least is " + d, x, 0, 0, d, d, d < second ? 0 : FULL);
+            c.same("reading", x.register(0, 8), d < second ? d : 0);
+            c.same("writing", x.register(0, 9), d < second ? second : 0);
+        }
     }
 
     private static void pipesHeld() {
