@@ -168,7 +168,10 @@ public final class EdgeSourceTest {
         for (String number : new String[] {"12", "0x1", "0b1", "'a'"}) {
             for (String more : new String[] {"_", ".", "$", "z", "Z"}) {
                 t.faults(1, ".byte " + number + more, ".byte 1, " + number + more + "+1");
+                // It is no token, so the e does not end before it: the fault is not that the e isn't fixed.
+                t.faults(1, ".space foo + " + number + more, "li a0, foo + " + number + more);
             }
+            t.faults(5, ".space foo + " + number + " z", "li a0, foo + " + number + " z");
             t.fine(".byte " + number + "+1");
         }
         t.faults(1, ".byte 'a'1", ".byte 'a'a");
