@@ -29,6 +29,10 @@ public final class LinesTest {
         check(".equ", Arrays.asList("name", ",", "I"));
         check(".text", List.of());
         check(".data", List.of());
+        for (String text : new String[] {"li a0, 5", "li a0, 500", "li a0, 0x12000", "li a0, 0x12345", "li zero, -1",
+            "beq a0, a1, . + 6000", "beqz a0, . + 600", "beqz a0, . + 6000", "j . + 6000", "jal . - 6000", ".asciz \"abc\""}) {
+            nothingBehind(text);
+        }
         c.finish();
     }
 
@@ -66,12 +70,21 @@ public final class LinesTest {
         c.same("assemble of <" + text + ">", Checks.assemble(x, 0, "nop\n" + text), due == 0 ? 0 : due + 16 * 2);
     }
 
+    /** The bytes of a statement are all that it puts. */
+    private static void nothingBehind(String text) {
+        TimeMachine x = new TimeMachine();
+        c.same("assemble of <" + text + ">", Checks.assemble(x, 0, text + "\n.space 9"), 0);
+        String image = Checks.image(x, 0);
+        c.same("bytes behind <" + text + ">", image.substring(image.length() - 18), "0".repeat(18));
+    }
+
     private static void check(String name, List<String> tokens) {
         List<String> line = new ArrayList<>();
         for (String token : tokens) {
             line.add(good(token));
         }
         fault(joined(name, line), 0);
+        nothingBehind(joined(name, line));
         for (String more : new String[] {"a3", "8", ",", ")", "@", "\"b\"", "nop"}) {
             fault(joined(name, line) + " " + more, 1);
         }
